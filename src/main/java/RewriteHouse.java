@@ -218,7 +218,7 @@ public final class RewriteHouse {
             return BAD;
         }
         begin();
-        int term = runner.toRest(handles[h], 0);
+        int term = runner.toRest(handles[h]);
         latestSteps = counts.steps;
         return term < 0 ? stopped() : newHandle(term);
     }
@@ -228,7 +228,7 @@ public final class RewriteHouse {
             return BAD;
         }
         begin();
-        int term = runner.toRest(handles[h], 0);
+        int term = runner.toRest(handles[h]);
         boolean done = term >= 0 && ways.listSteps(term, Ways.ANY_LABEL);
         latestSteps = counts.steps;
         if (!done) {
@@ -269,7 +269,7 @@ public final class RewriteHouse {
             return BAD;
         }
         begin();
-        int term = runner.toRest(handles[h], 0);
+        int term = runner.toRest(handles[h]);
         boolean done = term >= 0 && ways.explore(term, draft);
         latestSteps = counts.steps;
         return done ? keepDraft() : stopped();
@@ -321,7 +321,7 @@ public final class RewriteHouse {
             return -10 - syntax.faultCode;
         }
         begin();
-        int term = runner.toRest(handles[h], 0);
+        int term = runner.toRest(handles[h]);
         int found = term < 0 ? -1 : ways.answers(plan, term);
         latestSteps = counts.steps;
         if (found < 0) {
@@ -2085,10 +2085,10 @@ public final class RewriteHouse {
 
     /** All terms, each once: those that are the same under the axioms have one number. */
     static final class Terms {
-        static final int MOST = 65536, MOST_SIZE = 40;
+        static final int MOST = 98304, MOST_SIZE = 40;
         /** The head of a variable is its number, that of an operator is this much higher: heads are in ORDER. */
         static final int OPERATOR = 60;
-        private static final int MOST_CELLS = 262144, CHAINS = 16384, MOST_ARGS = 8192;
+        private static final int MOST_CELLS = 393216, CHAINS = 16384, MOST_ARGS = 8192;
         /** What info has of a term: SIZE, least sort (and 1), assoc rows, comm rows that are not assoc. */
         private static final int LEAST_SHIFT = 6, ASSOC_SHIFT = 11, COMM_SHIFT = 17, LIVE = 1 << 30;
 
@@ -2316,6 +2316,10 @@ public final class RewriteHouse {
 
         /** ORDER of two terms. */
         int compare(int a, int b) {
+            return compareInside(a, b);
+        }
+
+        private int compareInside(int a, int b) {
             if (a == b) {
                 return 0;
             }
@@ -2327,7 +2331,7 @@ public final class RewriteHouse {
                 return n < rowSize(b) ? -1 : 1;
             }
             for (int k = 0; k < n; k++) {
-                int found = compare(rowAt(a, k), rowAt(b, k));
+                int found = compareInside(rowAt(a, k), rowAt(b, k));
                 if (found != 0) {
                     return found;
                 }
@@ -2337,6 +2341,10 @@ public final class RewriteHouse {
 
         /** A term with what stands for its variables (those without stay); -1: it is too big. */
         int fill(int term, int[] values, int base) {
+            return fillInside(term, values, base);
+        }
+
+        private int fillInside(int term, int[] values, int base) {
             if (vars[term] == 0L) {
                 return term;
             }
@@ -2346,7 +2354,7 @@ public final class RewriteHouse {
             int from = argTop;
             int many = rowSize(term);
             for (int k = 0; k < many; k++) {
-                int inner = fill(rowAt(term, k), values, base);
+                int inner = fillInside(rowAt(term, k), values, base);
                 if (inner < 0) {
                     argTop = from;
                     return -1;
@@ -2636,11 +2644,7 @@ public final class RewriteHouse {
             choiceTop = 0;
             int goal = newGoal(root, whole, WHOLE, 0, NIL);
             int alternative = 0;
-            for (int work = 0; counts.stop == 0; work++) {
-                if (work >= MOST_WORK) {
-                    counts.halt(4);
-                    return;
-                }
+            for (int work = 0; work < MOST_WORK && counts.stop == 0; work++) {
                 int goalMark = goalTop;
                 int trailMark = trailTop;
                 more = -1;
@@ -2666,6 +2670,7 @@ public final class RewriteHouse {
                     undo(choices[choiceTop + 3]);
                 }
             }
+            counts.halt(4);
         }
 
         private void addChoice(int goal, int goalMark, int trailMark) {
@@ -3120,8 +3125,13 @@ public final class RewriteHouse {
             return term;
         }
 
-        /** What a term is REDUCED to, or HALTED. */
-        int toRest(int term, int depth) {
+        /** What a call REDUCES, or a rule makes, or a pair is, REDUCED; or HALTED. */
+        int toRest(int term) {
+            return restFrom(term, 0);
+        }
+
+        /** What a term is REDUCED to so deep in REDUCING, or HALTED. */
+        private int restFrom(int term, int depth) {
             int known = knownRest(term, depth);
             if (known != UNKNOWN) {
                 return known;
@@ -3133,7 +3143,7 @@ public final class RewriteHouse {
                 int args = terms.argTop;
                 int many = terms.rowSize(current);
                 for (int k = 0; k < many; k++) {
-                    int inner = toRest(terms.rowAt(current, k), depth + 1);
+                    int inner = restFrom(terms.rowAt(current, k), depth + 1);
                     if (inner < 0) {
                         return HALTED;
                     }
@@ -3149,7 +3159,7 @@ public final class RewriteHouse {
                     chainUp(current);
                     openEquations(depth);
                     for (int m = 0; m < MOST_WAYS && !goes && nextMatcher(current, depth); m++) {
-                        goes = nextWay(frame[depth * FIELDS + STATEMENT], depth, depth + 1, true);
+                        goes = findWay(frame[depth * FIELDS + STATEMENT], depth, depth + 1, true);
                     }
                     end = current;
                 }
@@ -3276,8 +3286,12 @@ public final class RewriteHouse {
             return made < 0 ? counts.halt(6) : made;
         }
 
-        /** Goes on to the first way in which C holds with a slot's matcher, or to the next one. */
-        boolean nextWay(int s, int slot, int depth, boolean fromStart) {
+        /** Goes on to the first way in which a rule's C holds with its matcher, or to the next one. */
+        boolean nextWay(int s, boolean fromStart) {
+            return findWay(s, RULE_SLOT, 1, fromStart);
+        }
+
+        private boolean findWay(int s, int slot, int depth, boolean fromStart) {
             int parts = theory.told(s, Theory.PART_COUNT);
             int k = fromStart ? 0 : retry(s, slot, parts);
             for (int n = 0; n < MOST_WAYS && k >= 0 && k < parts; n++) {
@@ -3288,10 +3302,10 @@ public final class RewriteHouse {
                 int first = 0;
                 int second = 0;
                 if (sign != Words.TAKES) {
-                    first = toRest(filled(t, slot, 0), depth);
+                    first = restFrom(filled(t, slot, 0), depth);
                 }
                 if (sign != Words.COLON && counts.stop == 0) {
-                    second = toRest(filled(u, slot, sign == Words.TAKES ? terms.sizeOf(t) : 0), depth);
+                    second = restFrom(filled(u, slot, sign == Words.TAKES ? terms.sizeOf(t) : 0), depth);
                 }
                 boolean holds = false;
                 if (counts.stop != 0) {
@@ -3553,9 +3567,9 @@ public final class RewriteHouse {
                 int found = matcher.list(left, path[level], true, 0L, runner.values, 0);
                 for (int m = 0; m < found; m++) {
                     runner.load(s, base + m * width, Runner.RULE_SLOT);
-                    boolean goes = runner.nextWay(s, Runner.RULE_SLOT, 1, true);
+                    boolean goes = runner.nextWay(s, true);
                     for (int n = 0; n <= Counts.MOST_STEPS + 1 && goes; n++) {
-                        goes = addStep(r, level) && runner.nextWay(s, Runner.RULE_SLOT, 1, false);
+                        goes = addStep(r, level) && runner.nextWay(s, false);
                     }
                     if (counts.stop != 0) {
                         return false;
@@ -3581,7 +3595,7 @@ public final class RewriteHouse {
             if (made < 0 || !counts.addFilled(terms.sizeOf(made))) {
                 return false;
             }
-            int end = runner.toRest(made, 0);
+            int end = runner.toRest(made);
             if (end < 0 || !counts.addStep()) {
                 return false;
             }
@@ -4073,7 +4087,9 @@ public final class RewriteHouse {
 
         /** What is in both rows counts for nothing; each that is left of t's needs one left of s's ABOVE it. */
         private boolean isRowAboveAsBag(int s, int t) {
-            Arrays.fill(gone, false);
+            for (int k = 0; k < gone.length; k++) {
+                gone[k] = false;
+            }
             int left = terms.rowSize(s);
             for (int k = 0; k < terms.rowSize(t); k++) {
                 int same = firstLeft(s, terms.rowAt(t, k));
@@ -4528,8 +4544,8 @@ public final class RewriteHouse {
             if (second < 0) {
                 return false;
             }
-            first = runner.toRest(first, 0);
-            second = first < 0 ? first : runner.toRest(second, 0);
+            first = runner.toRest(first);
+            second = first < 0 ? first : runner.toRest(second);
             if (second < 0 || wanted != JUDGE_ALL) {
                 return false;
             }
