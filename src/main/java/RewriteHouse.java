@@ -2950,7 +2950,8 @@ public final class RewriteHouse {
                 size = sizeIfSame(op, bind[terms.head[item]], t, from);
             } else if (isLoose(item)) {
                 int most = many - from - (unit ? 0 : items - 1);
-                size = Math.max(alternative, items == 1 && !openHere ? most : unit ? 0 : 1);
+                int least = items == 1 && !openHere ? most : 0;
+                size = Math.max(alternative, unit ? least : Math.max(least, 1));
                 more = size < most ? size + 1 : -1;
                 size = size > most ? -1 : size;
             }
@@ -2989,7 +2990,7 @@ public final class RewriteHouse {
                 }
             }
             if (n == 0) {
-                return terms.constant(theory.unit(op));
+                return theory.unit(op) < 0 ? -1 : terms.constant(theory.unit(op));
             }
             return n == 1 ? terms.row[0] : terms.intern(op + Terms.OPERATOR, n);
         }
