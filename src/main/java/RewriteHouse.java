@@ -15,7 +15,7 @@ public final class RewriteHouse {
     private final Syntax syntax = new Syntax(words);
     private final Theory theory = new Theory();
     private final Terms terms = new Terms(theory);
-    private final Language language = new Language(words, theory, terms);
+    private final Language language = new Language(syntax, theory, terms);
     private final Loader loader = new Loader(syntax, theory, terms, language);
     private final Counts counts = new Counts();
     private final Matcher matcher = new Matcher(theory, terms, counts);
@@ -64,7 +64,11 @@ public final class RewriteHouse {
         judge.restart();
         pairing.restart();
         language.forgetPrinted();
-        boolean good = loader.load();
+        loader.clear();
+        boolean good = syntax.readModule() && loader.load();
+        if (!good) {
+            loader.clear();
+        }
         keepFault(good);
         words.length = 0;
         return good ? theory.operators : -10 - syntax.faultCode;
@@ -99,13 +103,13 @@ public final class RewriteHouse {
     public int term() {
         tidy();
         int found = loader.readTape();
-        boolean good = found >= 0 || found == Language.TWO;
+        boolean good = found >= 0 || syntax.faultCode == Language.DOUBTFUL;
         keepFault(good);
         words.length = 0;
         if (!good) {
             return -10 - syntax.faultCode;
         }
-        return found == Language.TWO ? DOUBT : newHandle(found);
+        return found < 0 ? DOUBT : newHandle(found);
     }
 
     public int about(int h, int what) {
@@ -218,7 +222,7 @@ public final class RewriteHouse {
             return BAD;
         }
         begin();
-        int term = runner.toRest(handles[h]);
+        int term = runner.restFrom(handles[h], 0);
         latestSteps = counts.steps;
         return term < 0 ? stopped() : newHandle(term);
     }
@@ -228,8 +232,8 @@ public final class RewriteHouse {
             return BAD;
         }
         begin();
-        int term = runner.toRest(handles[h]);
-        boolean done = term >= 0 && ways.listSteps(term, Ways.ANY_LABEL);
+        int term = runner.restFrom(handles[h], 0);
+        boolean done = term >= 0 && ways.listSteps(term, Runner.ANY_LABEL);
         latestSteps = counts.steps;
         if (!done) {
             return stopped();
@@ -269,10 +273,15 @@ public final class RewriteHouse {
             return BAD;
         }
         begin();
-        int term = runner.toRest(handles[h]);
-        boolean done = term >= 0 && ways.explore(term, draft);
+        int term = runner.restFrom(handles[h], 0);
+        draft.openStates(term);
+        for (int k = 0; k < draft.size && counts.stop == 0; k++) {
+            if (ways.listSteps(draft.term[k], Runner.ANY_LABEL) && !draft.addSteps(k, ways.stepTerm, ways.stepRule, ways.stepCount)) {
+                counts.halt(2);
+            }
+        }
         latestSteps = counts.steps;
-        return done ? keepDraft() : stopped();
+        return counts.stop == 0 ? keepDraft() : stopped();
     }
 
     public int search(int p, int i) {
@@ -321,14 +330,15 @@ public final class RewriteHouse {
             return -10 - syntax.faultCode;
         }
         begin();
-        int term = runner.toRest(handles[h]);
-        int found = term < 0 ? -1 : ways.answers(plan, term);
+        int term = runner.restFrom(handles[h], 0);
+        ways.listTop = 0;
+        boolean done = term >= 0 && ways.answer(plan, term);
         latestSteps = counts.steps;
-        if (found < 0) {
+        if (!done) {
             return stopped();
         }
-        results.keepTerms(Results.ANSWERS, ways.lists, found);
-        return found;
+        results.keepTerms(Results.ANSWERS, ways.lists, ways.listTop);
+        return results.size;
     }
 
     // ---- judged ahead
@@ -363,7 +373,10 @@ public final class RewriteHouse {
         if (!pairing.areLookedAt()) {
             return NONE;
         }
-        if (!judgePairs()) {
+        tidy();
+        pairing.judge(Pairs.JUDGE_ALL);
+        if (pairing.stop != 0) {
+            latestStop = pairing.stop;
             return -20 - latestStop;
         }
         return what == 0 ? pairing.pairCount : what == 1 ? pairing.apart : pairing.open;
@@ -373,7 +386,10 @@ public final class RewriteHouse {
         if (i < 0 || what < 0 || what > 3 || !pairing.areLookedAt()) {
             return BAD;
         }
-        if (!judgePairs()) {
+        tidy();
+        pairing.judge(Pairs.JUDGE_ALL);
+        if (pairing.stop != 0) {
+            latestStop = pairing.stop;
             return -20 - latestStop;
         }
         if (i >= pairing.apart) {
@@ -385,8 +401,8 @@ public final class RewriteHouse {
         if (handleCount >= MOST_HANDLES) {
             return FULL;
         }
-        begin();
-        return newHandle(pairing.termOf(i, what == 2));
+        pairing.judge(pairing.pairAhead(i));
+        return newHandle(what == 2 ? pairing.first : pairing.second);
     }
 
     // ---- what the calls share
@@ -427,18 +443,6 @@ public final class RewriteHouse {
         draft = results;
         results = kept;
         return results.size;
-    }
-
-    private boolean judgePairs() {
-        if (!pairing.judged) {
-            begin();
-            pairing.judgeAll();
-        }
-        if (pairing.stop == 0) {
-            return true;
-        }
-        latestStop = pairing.stop;
-        return false;
     }
 
     private void begin() {
@@ -664,6 +668,8 @@ public final class RewriteHouse {
         final int[] table = new int[MOST_STATEMENTS * FIELDS];
         final int[] parts = new int[MOST_ALL_PARTS * PART_FIELDS];
         private int at;
+        /** The word there, or END, or SPOILT. */
+        int word;
         private int limit;
         private int partCount;
         private int sorts;
@@ -679,27 +685,19 @@ public final class RewriteHouse {
         /** The tape's words are gone through from the first one on. */
         void open(boolean add, int mostWords) {
             words.split(add);
-            at = 0;
             limit = mostWords;
             faultCode = 0;
             faultPlace = 0;
-        }
-
-        int here() {
-            if (at >= words.count) {
-                return END;
-            }
-            return at == words.badWord ? SPOILT : words.name[at];
+            at = -1;
+            take();
         }
 
         /** A WORD that is not RESERVED, nor a bracket or comma. */
         boolean isPlain() {
-            int word = here();
             return word == Words.UNKNOWN || word > Words.COMMA;
         }
 
         private boolean isRowWord() {
-            int word = here();
             return word == Words.UNKNOWN || word > Words.AND;
         }
 
@@ -710,17 +708,20 @@ public final class RewriteHouse {
         }
 
         boolean wrong() {
-            if (at >= words.count) {
-                return fail(1, words.length);
-            }
-            return fail(1, at == words.badWord ? words.badPlace : words.start[at]);
+            faultCode = 1;
+            faultPlace = at >= words.count ? words.length : at == words.badWord ? words.badPlace : words.start[at];
+            return false;
         }
 
+        /** On to the next word; false: this one is too many. */
         boolean take() {
             if (at >= limit) {
-                return fail(2, placeHere());
+                faultCode = 2;
+                faultPlace = at < words.count ? words.start[at] : words.length;
+                return false;
             }
             at++;
+            word = at >= words.count ? END : at == words.badWord ? SPOILT : words.name[at];
             return true;
         }
 
@@ -728,8 +729,8 @@ public final class RewriteHouse {
             return at < words.count ? words.start[at] : words.length;
         }
 
-        boolean takeWord(int word) {
-            return here() == word ? take() : wrong();
+        boolean takeWord(int wanted) {
+            return word == wanted ? take() : wrong();
         }
 
         private boolean takePlain() {
@@ -765,7 +766,7 @@ public final class RewriteHouse {
             variables = 0;
             equations = 0;
             rules = 0;
-            for (int n = 0; n <= Words.MOST && here() != END; n++) {
+            for (int n = 0; n <= Words.MOST && word != END; n++) {
                 if (!readStatement()) {
                     return false;
                 }
@@ -774,32 +775,32 @@ public final class RewriteHouse {
         }
 
         private boolean readStatement() {
-            int word = here();
+            int kind = word;
             int s = statements * FIELDS;
-            if (statements >= MOST_STATEMENTS || word < Words.SORT || word > Words.RL) {
+            if (statements >= MOST_STATEMENTS || kind < Words.SORT || kind > Words.RL) {
                 return wrong();
             }
-            if (isTooMany(word)) {
+            if (isTooMany(kind)) {
                 return fail(2, placeHere());
             }
-            table[s + KIND] = word;
+            table[s + KIND] = kind;
             table[s + FIRST] = at;
             if (!take()) {
                 return false;
             }
             statements++;
-            switch (word) {
+            switch (kind) {
                 case Words.SORT: return readNames(s, Words.SORT) && takeWord(Words.DOT);
                 case Words.SUBSORT: return readSubsorts(s);
                 case Words.VAR: return readVariables(s);
                 case Words.OP: return readOperator(s);
-                case Words.RL: return readRule(s);
+                case Words.RL: return readLabel(s) && readSides(s, Words.LEADS);
                 default: return readSides(s, Words.EQUAL);
             }
         }
 
-        private boolean isTooMany(int word) {
-            switch (word) {
+        private boolean isTooMany(int kind) {
+            switch (kind) {
                 case Words.OP: rows++; return rows > Theory.MOST_ROWS;
                 case Words.EQ:
                 case Words.OEQ: equations++; return equations > Theory.MOST_EQUATIONS;
@@ -808,10 +809,10 @@ public final class RewriteHouse {
             }
         }
 
-        private boolean readNames(int s, int word) {
+        private boolean readNames(int s, int kind) {
             table[s + FROM] = at;
             for (int n = 0; n <= Words.MOST && isPlain(); n++) {
-                if (word == Words.SORT) {
+                if (kind == Words.SORT) {
                     sorts++;
                 } else {
                     variables++;
@@ -840,7 +841,7 @@ public final class RewriteHouse {
             boolean less = false;
             for (int n = 0; n <= Words.MOST; n++) {
                 int from = at;
-                for (int k = 0; k <= Words.MOST && isPlain() && here() != Words.LESS; k++) {
+                for (int k = 0; k <= Words.MOST && isPlain() && word != Words.LESS; k++) {
                     if (!take()) {
                         return false;
                     }
@@ -848,7 +849,7 @@ public final class RewriteHouse {
                 if (at == from) {
                     return wrong();
                 }
-                if (less && here() == Words.DOT) {
+                if (less && word == Words.DOT) {
                     break;
                 }
                 if (!takeWord(Words.LESS)) {
@@ -889,7 +890,7 @@ public final class RewriteHouse {
                 return false;
             }
             table[s + LIST_FROM] = at;
-            if (here() == Words.OPEN_LIST && !readAttributes()) {
+            if (word == Words.OPEN_LIST && !readAttributes()) {
                 return false;
             }
             table[s + LIST_TO] = at;
@@ -901,14 +902,14 @@ public final class RewriteHouse {
                 return false;
             }
             for (int n = 0; n <= Words.MOST; n++) {
-                int word = here();
-                if (word == Words.CLOSE_LIST && n > 0) {
+                int told = word;
+                if (told == Words.CLOSE_LIST && n > 0) {
                     return take();
                 }
-                if (word < Words.ASSOC || word > Words.GATHER) {
+                if (told < Words.ASSOC || told > Words.GATHER) {
                     return wrong();
                 }
-                if (!take() || !readAttribute(word)) {
+                if (!take() || !readAttribute(told)) {
                     return false;
                 }
             }
@@ -916,15 +917,15 @@ public final class RewriteHouse {
         }
 
         /** What stands behind the WORD of an ATTRIBUTE. */
-        private boolean readAttribute(int word) {
-            if (word == Words.ID) {
+        private boolean readAttribute(int told) {
+            if (told == Words.ID) {
                 return takePlain();
             }
-            if (word == Words.PREC) {
-                return here() >= 0 && numberAt(at) >= 0 ? take() : wrong();
+            if (told == Words.PREC) {
+                return word >= 0 && numberAt(at) >= 0 ? take() : wrong();
             }
-            if (word == Words.GATHER) {
-                for (int n = 0; n <= Words.MOST && here() >= Words.LETTER_ALL && here() <= Words.LETTER_LESS; n++) {
+            if (told == Words.GATHER) {
+                for (int n = 0; n <= Words.MOST && word >= Words.LETTER_ALL && word <= Words.LETTER_LESS; n++) {
                     if (!take()) {
                         return false;
                     }
@@ -934,14 +935,14 @@ public final class RewriteHouse {
         }
 
         /** The number that a word of one or two digits is, or -1. */
-        int numberAt(int word) {
-            int many = words.size[word];
+        int numberAt(int place) {
+            int many = words.size[place];
             if (many > 2) {
                 return -1;
             }
             int number = 0;
             for (int k = 0; k < many; k++) {
-                int digit = words.tape[words.start[word] + k] - '0';
+                int digit = words.tape[words.start[place] + k] - '0';
                 if (digit < 0 || digit > 9) {
                     return -1;
                 }
@@ -950,9 +951,9 @@ public final class RewriteHouse {
             return number;
         }
 
-        private boolean readRule(int s) {
+        private boolean readLabel(int s) {
             table[s + LABEL] = at;
-            return takePlain() && takeWord(Words.COLON) && readSides(s, Words.LEADS);
+            return takePlain() && takeWord(Words.COLON);
         }
 
         private boolean readSides(int s, int sign) {
@@ -967,7 +968,7 @@ public final class RewriteHouse {
                 return false;
             }
             table[s + PART_FROM] = partCount;
-            if (here() == Words.IF && !readParts()) {
+            if (word == Words.IF && !readParts()) {
                 return false;
             }
             table[s + PART_TO] = partCount;
@@ -989,7 +990,7 @@ public final class RewriteHouse {
                     return false;
                 }
                 partCount++;
-                if (here() != Words.AND) {
+                if (word != Words.AND) {
                     return true;
                 }
                 if (!take()) {
@@ -1005,7 +1006,7 @@ public final class RewriteHouse {
             if (parts[p + T_TO] < 0) {
                 return false;
             }
-            int sign = here();
+            int sign = word;
             parts[p + SIGN] = sign;
             if (sign != Words.EQUAL && sign != Words.TAKES && sign != Words.COLON) {
                 return wrong();
@@ -1030,7 +1031,8 @@ public final class RewriteHouse {
         static final int HOLES = 0, STRENGTH = 1, FLAGS = 2, UNIT = 3, KIND = 4, FORM_SIZE = 5, FIRST_ROW = 6;
         static final int ROW_COUNT = 7, LETTERS = 8, HOLE_KINDS = 11, FIELDS = 14;
         static final int ASSOC = 1, COMM = 2;
-        static final int TAKES_ALL = 0, TAKES_MOST = 1, TAKES_LESS = 2;
+        static final int TAKES_ALL = 0, TAKES_MOST = 1, TAKES_LESS = 2, HIGHEST = 99;
+        static final int NO_LEAST = -1, NO_ROW = -2;
         /** What is known of a row of op: three SORTS, the SORT, the operator, its next row. */
         static final int RESULT = 3, OWNER = 4, NEXT_ROW = 5, ROW_FIELDS = 6;
         /** What is known of an equation or rule; rules stand behind all equations. */
@@ -1174,45 +1176,41 @@ public final class RewriteHouse {
             return table[op * FIELDS + KIND];
         }
 
-        boolean takes(int op, int hole, int strength) {
-            int letter = table[op * FIELDS + LETTERS + hole];
-            int own = strength(op);
-            return letter == TAKES_ALL || (letter == TAKES_MOST ? strength <= own : strength < own);
-        }
-
-        /** The SORTS, as bits, of all rows of an operator that lie above the sorts given. */
-        int fitting(int op, int a, int b, int c) {
-            int holes = holes(op);
-            boolean turned = isComm(op);
+        /**
+         * The least sort of an operator over least sorts (below 0: none): of all rows that lie above them the one SORT
+         * that is below all others; NO_ROW: there are no such rows, NO_LEAST: no such SORT.
+         */
+        int leastOver(int op, int a, int b, int c) {
+            int holes = table[op * FIELDS + HOLES];
+            if ((holes > 0 && a < 0) || (holes > 1 && b < 0) || (holes > 2 && c < 0)) {
+                return NO_ROW;
+            }
+            boolean turned = (table[op * FIELDS + FLAGS] & COMM) != 0;
+            int ups = holes > 0 ? above[a] : 0;
+            int others = holes > 1 ? above[b] : 0;
+            int thirds = holes > 2 ? above[c] : 0;
             int found = 0;
-            for (int r = field(op, FIRST_ROW), n = 0; r >= 0 && n < rows; r = row[r * ROW_FIELDS + NEXT_ROW], n++) {
+            for (int r = table[op * FIELDS + FIRST_ROW], n = 0; r >= 0 && n < rows; r = row[r * ROW_FIELDS + NEXT_ROW], n++) {
                 int at = r * ROW_FIELDS;
-                boolean fits = (holes < 1 || isBelow(a, row[at])) && (holes < 2 || isBelow(b, row[at + 1]))
-                        && (holes < 3 || isBelow(c, row[at + 2]));
-                if (fits || (turned && isBelow(b, row[at]) && isBelow(a, row[at + 1]))) {
+                boolean fits = (holes < 1 || (ups >> row[at] & 1) != 0) && (holes < 2 || (others >> row[at + 1] & 1) != 0)
+                        && (holes < 3 || (thirds >> row[at + 2] & 1) != 0);
+                if (fits || (turned && (others >> row[at] & 1) != 0 && (ups >> row[at + 1] & 1) != 0)) {
                     found |= 1 << row[at + RESULT];
                 }
             }
-            return found;
-        }
-
-        /** Of sorts, as bits, the one that is below all others, or -1. */
-        int lowest(int mask) {
             for (int s = 0; s < sorts; s++) {
-                if ((mask >> s & 1) != 0 && (mask & ~above[s]) == 0) {
+                if ((found >> s & 1) != 0 && (found & ~above[s]) == 0) {
                     return s;
                 }
             }
-            return -1;
+            return found == 0 ? NO_ROW : NO_LEAST;
         }
 
-        /** The least sort of an operator over least sorts; -1 stands for none. */
-        int leastOver(int op, int a, int b, int c) {
-            int holes = holes(op);
-            if ((holes > 0 && a < 0) || (holes > 1 && b < 0) || (holes > 2 && c < 0)) {
-                return -1;
-            }
-            return lowest(fitting(op, a, b, c));
+        /** The highest STRENGTH that a HOLE takes. */
+        int highestIn(int op, int hole) {
+            int letter = table[op * FIELDS + LETTERS + hole];
+            int own = table[op * FIELDS + STRENGTH];
+            return letter == TAKES_ALL ? HIGHEST : letter == TAKES_MOST ? own : own - 1;
         }
 
         // variables and statements
@@ -1285,37 +1283,37 @@ public final class RewriteHouse {
             this.language = language;
         }
 
-        /** The tape as a module; false: it has a fault, and the module is nothing. */
-        boolean load() {
+        /** A module of nothing. */
+        void clear() {
             theory.clear();
             terms.clear();
             words.tellGiven();
-            boolean good = syntax.readModule() && tellNames() && tellOperators() && readStatements();
-            if (!good) {
-                theory.clear();
-                terms.clear();
-                words.tellGiven();
+        }
+
+        /** A text that has been gone through as a module; false: it has a fault. */
+        boolean load() {
+            boolean good = tellNames() && tellOperators();
+            for (int s = 0; s < syntax.statements && good; s++) {
+                int word = get(s, Syntax.KIND);
+                good = (word != Words.EQ && word != Words.OEQ && word != Words.RL) || readSides(s, word);
             }
+            theory.orderEquations();
             terms.keepAll();
             return good;
         }
 
-        /** The tape as a term: it, or what Language.read says, or -1 with a fault. */
+        /** The tape as a term, or -1 with a fault. */
         int readTape() {
             syntax.open(false, Words.MOST);
             int to = syntax.takeRow();
             if (to < 0) {
-                return Language.NO_READING;
+                return -1;
             }
-            if (syntax.here() != Syntax.END) {
+            if (syntax.word != Syntax.END) {
                 syntax.wrong();
-                return Language.NO_READING;
+                return -1;
             }
-            int found = language.read(0, to, Language.ANY_KIND);
-            if (found < 0 && found != Language.TWO) {
-                syntax.fail(6, words.start[0]);
-            }
-            return found;
+            return language.read(0, to, Language.ANY_KIND);
         }
 
         private int get(int s, int what) {
@@ -1701,19 +1699,8 @@ public final class RewriteHouse {
 
         // equations and rules
 
-        private boolean readStatements() {
-            for (int s = 0; s < syntax.statements; s++) {
-                int word = get(s, Syntax.KIND);
-                if ((word == Words.EQ || word == Words.OEQ || word == Words.RL) && !readSides(s, word)) {
-                    return false;
-                }
-            }
-            theory.orderEquations();
-            return true;
-        }
-
         private boolean readSides(int s, int word) {
-            int left = readRow(get(s, Syntax.FROM), get(s, Syntax.TO), Language.ANY_KIND);
+            int left = language.read(get(s, Syntax.FROM), get(s, Syntax.TO), Language.ANY_KIND);
             if (left < 0) {
                 return false;
             }
@@ -1732,7 +1719,7 @@ public final class RewriteHouse {
                 theory.parts++;
             }
             int from = get(s, Syntax.RIGHT_FROM);
-            int right = readRow(from, get(s, Syntax.RIGHT_TO), terms.kindOf(left));
+            int right = language.read(from, get(s, Syntax.RIGHT_TO), terms.kindOf(left));
             if (right < 0 || !isKnown(right, known, from)) {
                 return false;
             }
@@ -1752,14 +1739,6 @@ public final class RewriteHouse {
             return true;
         }
 
-        private int readRow(int from, int to, int kind) {
-            int found = language.read(from, to, kind);
-            if (found < 0) {
-                syntax.fail(found == Language.TWO ? 7 : 6, words.start[from]);
-            }
-            return found;
-        }
-
         private boolean isKnown(int term, long known, int from) {
             return (terms.vars[term] & ~known) == 0 || syntax.fail(8, words.start[from]);
         }
@@ -1771,13 +1750,13 @@ public final class RewriteHouse {
             int from = syntax.parts[p + Syntax.T_FROM];
             int uFrom = syntax.parts[p + Syntax.U_FROM];
             int sort = sign == Words.COLON ? theory.sortOf(words.name[uFrom]) : -1;
-            int t = readRow(from, syntax.parts[p + Syntax.T_TO], sort < 0 ? Language.ANY_KIND : theory.kindOf[sort]);
+            int t = language.read(from, syntax.parts[p + Syntax.T_TO], sort < 0 ? Language.ANY_KIND : theory.kindOf[sort]);
             if (t < 0 || (sign != Words.TAKES && !isKnown(t, known, from))) {
                 return false;
             }
             int u = sort;
             if (sign != Words.COLON) {
-                u = readRow(uFrom, syntax.parts[p + Syntax.U_TO], terms.kindOf(t));
+                u = language.read(uFrom, syntax.parts[p + Syntax.U_TO], terms.kindOf(t));
                 if (u < 0 || !isKnown(u, known, uFrom)) {
                     return false;
                 }
@@ -1792,16 +1771,19 @@ public final class RewriteHouse {
 
     /** Reads rows of words as terms, and prints terms. */
     static final class Language {
-        static final int NO_READING = -1, TWO = -2, TOO_BIG = -3, ANY_KIND = -1;
+        static final int ANY_KIND = -1, NO_READING = 6, DOUBTFUL = 7;
         private static final int SIDE = Syntax.LONGEST_ROW + 1, MOST_ENTRIES = 40000, MOST_PRINTED = 12000;
         /** Readings are told by operator, or, if they are a variable or in brackets, by KIND from here on. */
         private static final int ATOM = Theory.MOST_ROWS;
+        /** An entry has how many readings there are (one, or two for more), their KIND, STRENGTH, and what they are. */
+        private static final int KIND_SHIFT = 2, STRENGTH_SHIFT = 7, WHAT_SHIFT = 14, MANY = 3, KIND = 31, STRENGTH = 127;
 
+        private final Syntax syntax;
         private final Words words;
         private final Theory theory;
         private final Terms terms;
         private int first;
-        /** For each stretch of words the readings that it has: operator or atom, and one or two (for more). */
+        /** For each stretch of words the entries of its readings. */
         private final int[] spanFrom = new int[SIDE * SIDE];
         private final int[] spanTo = new int[SIDE * SIDE];
         private final int[] entries = new int[MOST_ENTRIES];
@@ -1811,18 +1793,16 @@ public final class RewriteHouse {
         int printedSize;
         private int printedTerm = -1;
 
-        Language(Words words, Theory theory, Terms terms) {
-            this.words = words;
+        Language(Syntax syntax, Theory theory, Terms terms) {
+            this.syntax = syntax;
+            this.words = syntax.words;
             this.theory = theory;
             this.terms = terms;
         }
 
-        /** The term that a row of words is, of a KIND or of any; or why there is none. */
+        /** The term that a row of words is, of a KIND or of any; or -1, with a fault. */
         int read(int from, int to, int kind) {
-            int many = to - from;
-            if (many < 1 || many > Syntax.LONGEST_ROW) {
-                return NO_READING;
-            }
+            int many = Math.min(to - from, Syntax.LONGEST_ROW);
             first = from;
             entryTop = 0;
             for (int size = 1; size <= many; size++) {
@@ -1833,50 +1813,45 @@ public final class RewriteHouse {
             int found = 0;
             int what = -1;
             for (int e = spanFrom[many]; e < spanTo[many]; e++) {
-                if (kind < 0 || kindOfReading(entries[e] >> 2) == kind) {
-                    found += entries[e] & 3;
-                    what = entries[e] >> 2;
+                if (kind == ANY_KIND || (entries[e] >> KIND_SHIFT & KIND) == kind) {
+                    found += entries[e] & MANY;
+                    what = entries[e] >> WHAT_SHIFT;
                 }
             }
-            if (found == 0) {
-                return NO_READING;
+            int term = found == 1 ? build(0, many, what) : -1;
+            if (term < 0) {
+                syntax.fail(found > 1 ? DOUBTFUL : NO_READING, words.start[from]);
             }
-            return found > 1 ? TWO : build(0, many, what);
+            return term;
         }
 
-        private int word(int i) {
-            return words.name[first + i];
-        }
-
-        private int kindOfReading(int what) {
-            return what >= ATOM ? what - ATOM : theory.kindOfOperator(what);
-        }
-
-        private int strengthOfReading(int what) {
-            return what >= ATOM ? 0 : theory.strength(what);
-        }
-
-        private void addEntry(int what, int many) {
+        private void addEntry(int what, int kind, int strength, int many) {
             if (many > 0 && entryTop < MOST_ENTRIES) {
-                entries[entryTop] = what << 2 | Math.min(many, 2);
+                entries[entryTop] = Math.min(many, 2) | kind << KIND_SHIFT | strength << STRENGTH_SHIFT | what << WHAT_SHIFT;
                 entryTop++;
             }
         }
 
         private void fillSpan(int i, int j) {
             int span = i * SIDE + j - i;
+            int head = words.name[first + i];
+            int last = words.name[first + j - 1];
             spanFrom[span] = entryTop;
             if (j - i == 1) {
-                int variable = theory.variableOf(word(i));
-                if (variable >= 0) {
-                    addEntry(ATOM + theory.kindOf[theory.variableSort[variable]], 1);
-                }
-            } else if (j - i > 2 && word(i) == Words.OPEN && word(j - 1) == Words.CLOSE) {
+                int variable = theory.variableOf(head);
+                int kind = variable < 0 ? 0 : theory.kindOf[theory.variableSort[variable]];
+                addEntry(ATOM + kind, kind, 0, variable < 0 ? 0 : 1);
+            } else if (j - i > 2 && head == Words.OPEN && last == Words.CLOSE) {
                 addBracketed(span + SIDE - 2);
             }
             for (int op = 0; op < theory.operators; op++) {
-                if (canStand(op, i, j)) {
-                    addEntry(op, waysFrom(op, 0, 0, i, j));
+                // a look at the ends spares most operators
+                int size = theory.field(op, Theory.FORM_SIZE);
+                int at = op * Theory.MOST_FORM;
+                boolean opens = theory.form[at] == Theory.HOLE || theory.form[at] == head;
+                boolean closes = theory.form[at + size - 1] == Theory.HOLE || theory.form[at + size - 1] == last;
+                if (size <= j - i && opens && closes) {
+                    addEntry(op, theory.kindOfOperator(op), theory.strength(op), waysFrom(op, 0, 0, i, j));
                 }
             }
             spanTo[span] = entryTop;
@@ -1885,23 +1860,11 @@ public final class RewriteHouse {
         private void addBracketed(int inner) {
             Arrays.fill(ofKind, 0);
             for (int e = spanFrom[inner]; e < spanTo[inner]; e++) {
-                ofKind[kindOfReading(entries[e] >> 2)] += entries[e] & 3;
+                ofKind[entries[e] >> KIND_SHIFT & KIND] += entries[e] & MANY;
             }
             for (int k = 0; k < theory.kinds; k++) {
-                addEntry(ATOM + k, ofKind[k]);
+                addEntry(ATOM + k, k, 0, ofKind[k]);
             }
-        }
-
-        /** A look at the ends of a stretch, that spares most operators. */
-        private boolean canStand(int op, int i, int j) {
-            int size = theory.field(op, Theory.FORM_SIZE);
-            int at = op * Theory.MOST_FORM;
-            if (size > j - i) {
-                return false;
-            }
-            int head = theory.form[at];
-            int last = theory.form[at + size - 1];
-            return (head == Theory.HOLE || head == word(i)) && (last == Theory.HOLE || last == word(j - 1));
         }
 
         /** In how many ways (up to two) the form from element e on stands in the words i .. j. */
@@ -1911,7 +1874,7 @@ public final class RewriteHouse {
             int here = i;
             int k = e;
             for (; k < size && theory.form[at + k] != Theory.HOLE; k++) {
-                if (here >= j || word(here) != theory.form[at + k]) {
+                if (here >= j || words.name[first + here] != theory.form[at + k]) {
                     return 0;
                 }
                 here++;
@@ -1923,7 +1886,7 @@ public final class RewriteHouse {
             int next = behind > 0 ? theory.form[at + k + 1] : Theory.HOLE;
             int found = 0;
             for (int m = behind == 0 ? Math.max(j, here + 1) : here + 1; m <= j - behind && found < 2; m++) {
-                if (next == Theory.HOLE || word(m) == next) {
+                if (next == Theory.HOLE || words.name[first + m] == next) {
                     int many = readingsTaken(op, hole, here, m);
                     found += many == 0 ? 0 : many * waysFrom(op, k + 1, hole + 1, m, j);
                 }
@@ -1931,29 +1894,27 @@ public final class RewriteHouse {
             return Math.min(found, 2);
         }
 
-        private boolean isTaken(int what, int op, int hole) {
-            return kindOfReading(what) == theory.field(op, Theory.HOLE_KINDS + hole)
-                    && theory.takes(op, hole, strengthOfReading(what));
-        }
-
+        /** How many readings of words i .. j a HOLE takes. */
         private int readingsTaken(int op, int hole, int i, int j) {
             int span = i * SIDE + j - i;
+            int kind = theory.field(op, Theory.HOLE_KINDS + hole);
+            int highest = theory.highestIn(op, hole);
             int found = 0;
             for (int e = spanFrom[span]; e < spanTo[span]; e++) {
-                if (isTaken(entries[e] >> 2, op, hole)) {
-                    found += entries[e] & 3;
+                if ((entries[e] >> KIND_SHIFT & KIND) == kind && (entries[e] >> STRENGTH_SHIFT & STRENGTH) <= highest) {
+                    found += entries[e] & MANY;
                 }
             }
             return found;
         }
 
-        /** The term of the one reading of words i .. j with this operator, or as this atom. */
+        /** The term of the one reading of words i .. j with this operator, or as this atom; -1: it is too big. */
         private int build(int i, int j, int what) {
             if (what >= ATOM) {
                 if (j - i == 1) {
-                    return terms.variable(theory.variableOf(word(i)));
+                    return terms.intern(theory.variableOf(words.name[first + i]), 0);
                 }
-                return build(i + 1, j - 1, onlyOfKind(i + 1, j - 1, what - ATOM));
+                return build(i + 1, j - 1, onlyReading(i + 1, j - 1, what - ATOM, Theory.HIGHEST));
             }
             int size = theory.field(what, Theory.FORM_SIZE);
             int base = terms.argTop;
@@ -1965,10 +1926,11 @@ public final class RewriteHouse {
                     continue;
                 }
                 int end = holeEnd(what, k, hole, here, j);
-                int inner = build(here, end, onlyTaken(what, hole, here, end));
+                int kind = theory.field(what, Theory.HOLE_KINDS + hole);
+                int inner = build(here, end, onlyReading(here, end, kind, theory.highestIn(what, hole)));
                 if (inner < 0) {
                     terms.argTop = base;
-                    return inner;
+                    return -1;
                 }
                 terms.push(inner);
                 hole++;
@@ -1976,7 +1938,7 @@ public final class RewriteHouse {
             }
             int made = terms.make(what, base, hole);
             terms.argTop = base;
-            return made < 0 ? TOO_BIG : made;
+            return made;
         }
 
         private int holeEnd(int op, int k, int hole, int from, int j) {
@@ -1988,21 +1950,12 @@ public final class RewriteHouse {
             return j;
         }
 
-        private int onlyTaken(int op, int hole, int i, int j) {
+        /** What the one reading of words i .. j is that has a KIND, and no more than a STRENGTH. */
+        private int onlyReading(int i, int j, int kind, int highest) {
             int span = i * SIDE + j - i;
             for (int e = spanFrom[span]; e < spanTo[span]; e++) {
-                if (isTaken(entries[e] >> 2, op, hole)) {
-                    return entries[e] >> 2;
-                }
-            }
-            return 0;
-        }
-
-        private int onlyOfKind(int i, int j, int kind) {
-            int span = i * SIDE + j - i;
-            for (int e = spanFrom[span]; e < spanTo[span]; e++) {
-                if (kindOfReading(entries[e] >> 2) == kind) {
-                    return entries[e] >> 2;
+                if ((entries[e] >> KIND_SHIFT & KIND) == kind && (entries[e] >> STRENGTH_SHIFT & STRENGTH) <= highest) {
+                    return entries[e] >> WHAT_SHIFT;
                 }
             }
             return 0;
@@ -2072,7 +2025,7 @@ public final class RewriteHouse {
 
         private void putInHole(int op, int hole, int term, int n) {
             int strength = terms.isVariable(term) ? 0 : theory.strength(terms.operatorOf(term));
-            boolean bare = theory.takes(op, hole, strength);
+            boolean bare = strength <= theory.highestIn(op, hole);
             if (!bare) {
                 putName(Words.OPEN);
             }
@@ -2090,7 +2043,7 @@ public final class RewriteHouse {
         static final int OPERATOR = 60;
         private static final int MOST_CELLS = 393216, CHAINS = 16384, MOST_ARGS = 8192;
         /** What info has of a term: SIZE, least sort (and 1), assoc rows, comm rows that are not assoc. */
-        private static final int LEAST_SHIFT = 6, ASSOC_SHIFT = 11, COMM_SHIFT = 17, LIVE = 1 << 30;
+        private static final int SIZE = 63, LEAST = 31, LEAST_SHIFT = 6, ASSOC_SHIFT = 11, COMM_SHIFT = 17, LIVE = 1 << 30;
 
         private final Theory theory;
         final int[] head = new int[MOST];
@@ -2107,6 +2060,10 @@ public final class RewriteHouse {
         final int[] row = new int[MOST_SIZE + 2];
         private final int[] args = new int[MOST_ARGS];
         int argTop;
+        /** The way down to the place that is looked at: terms, and where the next one stands in each. */
+        private final int[] path = new int[MOST_SIZE + 2];
+        private final int[] place = new int[MOST_SIZE + 2];
+        private int level;
 
         Terms(Theory theory) {
             this.theory = theory;
@@ -2143,20 +2100,20 @@ public final class RewriteHouse {
         }
 
         int sizeOf(int term) {
-            return info[term] & 63;
+            return info[term] & SIZE;
         }
 
         /** The least sort, or -1. */
         int leastOf(int term) {
-            return (info[term] >> LEAST_SHIFT & 31) - 1;
+            return (info[term] >> LEAST_SHIFT & LEAST) - 1;
         }
 
         int assocRows(int term) {
-            return info[term] >> ASSOC_SHIFT & 63;
+            return info[term] >> ASSOC_SHIFT & SIZE;
         }
 
         int commRows(int term) {
-            return info[term] >> COMM_SHIFT & 63;
+            return info[term] >> COMM_SHIFT & SIZE;
         }
 
         int kindOf(int term) {
@@ -2175,14 +2132,6 @@ public final class RewriteHouse {
 
         int pushedAt(int k) {
             return k >= 0 && k < MOST_ARGS ? args[k] : -1;
-        }
-
-        int variable(int number) {
-            return intern(number, 0);
-        }
-
-        int constant(int op) {
-            return intern(OPERATOR + op, 0);
         }
 
         /** The term of an operator over terms that were pushed, under its axioms; -1: it is too big. */
@@ -2220,18 +2169,6 @@ public final class RewriteHouse {
             return intern(op + OPERATOR, n);
         }
 
-        /** A term with another one in its row at place k; -1: it is too big. */
-        int replaced(int term, int k, int by) {
-            int base = argTop;
-            int many = rowSize(term);
-            for (int i = 0; i < many; i++) {
-                push(i == k ? by : rowAt(term, i));
-            }
-            int made = make(operatorOf(term), base, many);
-            argTop = base;
-            return made;
-        }
-
         private void sortRow(int n) {
             for (int k = 1; k < n; k++) {
                 int term = row[k];
@@ -2257,17 +2194,24 @@ public final class RewriteHouse {
             }
             int fresh = count;
             int at = start[fresh];
-            long in = top < OPERATOR ? 1L << top : 0L;
-            int sum = 1;
+            int op = top - OPERATOR;
+            int flags = op < 0 ? 0 : theory.field(op, Theory.FLAGS);
+            int least = op < 0 ? theory.variableSort[top % Theory.MOST_VARIABLES]
+                    : theory.leastOver(op, leastIn(0, n), leastIn(1, n), leastIn(2, n));
+            for (int k = 2; k < n && (flags & Theory.ASSOC) != 0; k++) {
+                least = theory.leastOver(op, least, leastIn(k, n), -1);
+            }
+            long in = op < 0 ? 1L << top : 0L;
+            int sum = 1 + ((flags & Theory.ASSOC) != 0 ? 1 << ASSOC_SHIFT : flags != 0 ? 1 << COMM_SHIFT : 0);
             for (int k = 0; k < n; k++) {
                 cells[at + k] = row[k];
                 in |= vars[row[k]];
-                sum += info[row[k]] & ~(31 << LEAST_SHIFT);
+                sum += info[row[k]] & ~(LEAST << LEAST_SHIFT);
             }
             head[fresh] = top;
             start[fresh + 1] = at + n;
             vars[fresh] = in;
-            info[fresh] = sum + ownInfo(top, n);
+            info[fresh] = sum + (Math.max(least, -1) + 1 << LEAST_SHIFT);
             next[fresh] = chains[chain];
             chains[chain] = fresh;
             count++;
@@ -2283,43 +2227,24 @@ public final class RewriteHouse {
         }
 
         private boolean hasRow(int term, int n) {
-            if (rowSize(term) != n) {
+            int at = start[term];
+            if (start[term + 1] - at != n) {
                 return false;
             }
             for (int k = 0; k < n; k++) {
-                if (cells[start[term] + k] != row[k]) {
+                if (cells[at + k] != row[k]) {
                     return false;
                 }
             }
             return true;
         }
 
-        /** What the head itself adds to info. */
-        private int ownInfo(int top, int n) {
-            if (top < OPERATOR) {
-                return theory.variableSort[top % Theory.MOST_VARIABLES] + 1 << LEAST_SHIFT;
-            }
-            int op = top - OPERATOR;
-            int least = theory.leastOver(op, leastIn(0, n), leastIn(1, n), leastIn(2, n));
-            if (!theory.isAssoc(op)) {
-                return (theory.isComm(op) ? 1 << COMM_SHIFT : 0) + (least + 1 << LEAST_SHIFT);
-            }
-            for (int k = 2; k < n; k++) {
-                least = theory.leastOver(op, least, leastOf(row[k]), -1);
-            }
-            return (1 << ASSOC_SHIFT) + (least + 1 << LEAST_SHIFT);
-        }
-
         private int leastIn(int k, int n) {
-            return k < n ? leastOf(row[k]) : -1;
+            return k < n ? (info[row[k]] >> LEAST_SHIFT & LEAST) - 1 : -1;
         }
 
         /** ORDER of two terms. */
-        int compare(int a, int b) {
-            return compareInside(a, b);
-        }
-
-        private int compareInside(int a, int b) {
+        private int compare(int a, int b) {
             if (a == b) {
                 return 0;
             }
@@ -2331,7 +2256,7 @@ public final class RewriteHouse {
                 return n < rowSize(b) ? -1 : 1;
             }
             for (int k = 0; k < n; k++) {
-                int found = compareInside(rowAt(a, k), rowAt(b, k));
+                int found = compare(rowAt(a, k), rowAt(b, k));
                 if (found != 0) {
                     return found;
                 }
@@ -2340,11 +2265,7 @@ public final class RewriteHouse {
         }
 
         /** A term with what stands for its variables (those without stay); -1: it is too big. */
-        int fill(int term, int[] values, int base) {
-            return fillInside(term, values, base);
-        }
-
-        private int fillInside(int term, int[] values, int base) {
+        private int fill(int term, int[] values, int base) {
             if (vars[term] == 0L) {
                 return term;
             }
@@ -2354,7 +2275,7 @@ public final class RewriteHouse {
             int from = argTop;
             int many = rowSize(term);
             for (int k = 0; k < many; k++) {
-                int inner = fillInside(rowAt(term, k), values, base);
+                int inner = fill(rowAt(term, k), values, base);
                 if (inner < 0) {
                     argTop = from;
                     return -1;
@@ -2363,6 +2284,54 @@ public final class RewriteHouse {
             }
             int made = make(operatorOf(term), from, many);
             argTop = from;
+            return made;
+        }
+
+        // places in a term
+
+        /** The first place in a term is the whole. */
+        void openPlaces(int term) {
+            level = 0;
+            path[0] = term;
+            place[0] = -1;
+        }
+
+        /** The term at the place that is looked at; they come each wholly before the next. */
+        int termHere() {
+            return path[level];
+        }
+
+        boolean isWholeHere() {
+            return level == 0;
+        }
+
+        /** On to the next place; false: there is none. */
+        boolean nextPlace() {
+            for (int n = 0; n <= MOST_SIZE && level >= 0; n++) {
+                place[level]++;
+                if (place[level] < rowSize(path[level]) && level <= MOST_SIZE) {
+                    path[level + 1] = rowAt(path[level], place[level]);
+                    level++;
+                    place[level] = -1;
+                    return true;
+                }
+                level--;
+            }
+            return false;
+        }
+
+        /** The whole with another term at the place that is looked at; -1: it is too big. */
+        int wholeWith(int term) {
+            int made = term;
+            for (int l = level - 1; l >= 0 && made >= 0; l--) {
+                int base = argTop;
+                int many = rowSize(path[l]);
+                for (int k = 0; k < many; k++) {
+                    push(k == place[l] ? made : rowAt(path[l], k));
+                }
+                made = make(operatorOf(path[l]), base, many);
+                argTop = base;
+            }
             return made;
         }
 
@@ -2501,7 +2470,8 @@ public final class RewriteHouse {
         private static final int NIL = -1, FAILS = -2;
         /** A goal: a pattern that is to become a term, or the rest of a pattern's row to become a rest of a row. */
         private static final int PATTERN = 0, TERM = 1, ITEMS = 2, REST = 3, NEXT = 4, GOAL = 5, MOST_GOALS = 800;
-        private static final int WHOLE = -1;
+        /** ITEMS tells how many items of the pattern's row are left; or that the term counts as a whole, or in part. */
+        private static final int WHOLE = -1, PART_OF = -2;
         /** A choice that was left open: its goal, the next thing to try, and what was there before it. */
         private static final int CHOICE = 4, MOST_CHOICES = 400;
 
@@ -2528,6 +2498,9 @@ public final class RewriteHouse {
         private boolean open;
         private int aheadSize;
         private int left;
+        /** The row of which items take some. */
+        private final int[] line = new int[WIDEST];
+        private int lineSize;
         private final int[] longest = new int[Theory.MOST_ROWS];
 
         Matcher(Theory theory, Terms terms, Counts counts) {
@@ -2551,18 +2524,54 @@ public final class RewriteHouse {
             whole = term;
             boolean operator = !terms.isVariable(pattern);
             open = within && operator && theory.isAssoc(terms.operatorOf(pattern)) && terms.head[term] == terms.head[pattern];
-            if (!operator || terms.head[term] == terms.head[pattern] || theory.unit(terms.operatorOf(pattern)) >= 0) {
-                long bound = known & terms.vars[pattern];
-                for (int v = 0; v < VARIABLES; v++) {
-                    bind[v] = (bound >> v & 1L) != 0L ? values[at + v] : -1;
-                }
-                solve();
+            long bound = known & terms.vars[pattern];
+            for (int v = 0; v < VARIABLES; v++) {
+                bind[v] = (bound >> v & 1L) != 0L ? values[at + v] : -1;
             }
-            if (counts.stop != 0 || !counts.addMatchers(found)) {
-                return Counts.HALTED;
+            boolean can = !operator || terms.head[term] == terms.head[pattern] || theory.unit(terms.operatorOf(pattern)) >= 0;
+            trailTop = 0;
+            goalTop = 0;
+            choiceTop = 0;
+            int goal = newGoal(pattern, term, WHOLE, 0, NIL);
+            int alternative = 0;
+            for (int work = 0; work < MOST_WORK && can && counts.stop == 0; work++) {
+                int goalMark = goalTop;
+                int trailMark = trailTop;
+                more = -1;
+                int next = FAILS;
+                if (goal == NIL) {
+                    note();
+                    insert(widthOf(pattern));
+                } else {
+                    next = advance(goal, alternative);
+                }
+                if (more >= 0) {
+                    addChoice(goal, goalMark, trailMark);
+                }
+                can = next != FAILS || choiceTop > 0;
+                goal = next != FAILS ? next : back();
+                alternative = next != FAILS ? 0 : more;
+            }
+            if (can || counts.stop != 0 || !counts.addMatchers(found)) {
+                return counts.halt(4);
             }
             top += found * widthOf(pattern);
             return found;
+        }
+
+        /** Back to the choice that was left open last: its goal; more is what is to be tried then. */
+        private int back() {
+            if (choiceTop == 0) {
+                return FAILS;
+            }
+            choiceTop -= CHOICE;
+            more = choices[choiceTop + 1];
+            goalTop = choices[choiceTop + 2];
+            for (int n = trailTop; n > choices[choiceTop + 3]; n--) {
+                bind[trail[n - 1]] = -1;
+            }
+            trailTop = choices[choiceTop + 3];
+            return choices[choiceTop];
         }
 
         // what a list costs
@@ -2638,41 +2647,6 @@ public final class RewriteHouse {
 
         // solving
 
-        private void solve() {
-            trailTop = 0;
-            goalTop = 0;
-            choiceTop = 0;
-            int goal = newGoal(root, whole, WHOLE, 0, NIL);
-            int alternative = 0;
-            for (int work = 0; work < MOST_WORK && counts.stop == 0; work++) {
-                int goalMark = goalTop;
-                int trailMark = trailTop;
-                more = -1;
-                int next = FAILS;
-                if (goal == NIL) {
-                    record();
-                } else {
-                    next = advance(goal, alternative);
-                }
-                if (more >= 0) {
-                    addChoice(goal, goalMark, trailMark);
-                }
-                if (next != FAILS) {
-                    goal = next;
-                    alternative = 0;
-                } else if (choiceTop == 0) {
-                    return;
-                } else {
-                    choiceTop -= CHOICE;
-                    goal = choices[choiceTop];
-                    alternative = choices[choiceTop + 1];
-                    goalTop = choices[choiceTop + 2];
-                    undo(choices[choiceTop + 3]);
-                }
-            }
-            counts.halt(4);
-        }
-
         private void addChoice(int goal, int goalMark, int trailMark) {
             if (choiceTop + CHOICE > choices.length) {
                 counts.halt(4);
@@ -2685,16 +2659,9 @@ public final class RewriteHouse {
             choiceTop += CHOICE;
         }
 
-        private void undo(int mark) {
-            for (int n = trailTop; n > mark; n--) {
-                bind[trail[n - 1]] = -1;
-            }
-            trailTop = mark;
-        }
-
         private int newGoal(int pattern, int term, int items, int rest, int next) {
-            if (goalTop + GOAL > goals.length || term < 0) {
-                counts.halt(4);
+            if (goalTop + GOAL > goals.length) {
+                counts.stop = 4;
                 return FAILS;
             }
             int goal = goalTop;
@@ -2710,24 +2677,34 @@ public final class RewriteHouse {
         /** Tries an alternative of a goal, or the next one that there is: the goals that are left, or FAILS. */
         private int advance(int goal, int alternative) {
             int p = goals[goal + PATTERN];
-            int t = goals[goal + TERM];
+            int items = goals[goal + ITEMS];
             int next = goals[goal + NEXT];
+            int op = terms.operatorOf(p);
+            if (items >= 0) {
+                loadLine(op, goals[goal + TERM]);
+                return theory.isComm(op) ? dealAny(goal, alternative) : dealInRow(goal, alternative);
+            }
+            int t = goals[goal + TERM];
+            if (items <= PART_OF) {
+                loadLine(PART_OF - items, t);
+                t = taken(PART_OF - items, goals[goal + REST]);
+                if (t < 0) {
+                    counts.halt(4);
+                    return FAILS;
+                }
+            }
             if (terms.isVariable(p)) {
                 return isBoundTo(terms.head[p], t) ? next : FAILS;
-            }
-            int op = terms.operatorOf(p);
-            if (goals[goal + ITEMS] >= 0) {
-                return theory.isComm(op) ? dealAny(goal, alternative) : dealInRow(goal, alternative);
             }
             boolean openHere = open && p == root;
             if (terms.vars[p] == 0L && !openHere) {
                 return p == t ? next : FAILS;
             }
             if (theory.isAssoc(op)) {
-                return startRow(goal, op, alternative, openHere);
+                return startRow(p, t, next, alternative);
             }
             if (theory.unit(op) >= 0) {
-                return splitWithUnit(goal, op, alternative);
+                return splitWithUnit(p, t, next, alternative);
             }
             if (terms.head[t] != terms.head[p]) {
                 return FAILS;
@@ -2763,14 +2740,11 @@ public final class RewriteHouse {
         }
 
         /** A row of two whose operator has an id, but is not assoc: in this order, turned, or one of them is the id. */
-        private int splitWithUnit(int goal, int op, int alternative) {
-            int p = goals[goal + PATTERN];
-            int t = goals[goal + TERM];
-            int next = goals[goal + NEXT];
-            int id = terms.constant(theory.unit(op));
-            boolean same = terms.head[t] == terms.head[p];
+        private int splitWithUnit(int p, int t, int next, int alternative) {
+            int op = terms.operatorOf(p);
+            int id = terms.intern(theory.unit(op) + Terms.OPERATOR, 0);
             int now = alternative;
-            if (now == 0 && !same) {
+            if (now == 0 && terms.head[t] != terms.head[p]) {
                 now = 2;
             }
             if (now == 1 && !theory.isComm(op)) {
@@ -2787,34 +2761,37 @@ public final class RewriteHouse {
 
         // rows of assoc operators
 
-        /** How many of a row of this operator a term is: none, if it is the id, one, if it is another term. */
-        private int countIn(int op, int term) {
+        /** A term as a row of this operator stands in line: none, if it is the id, one, if it is another term. */
+        private void loadLine(int op, int term) {
+            lineSize = 0;
             if (terms.head[term] == op + Terms.OPERATOR) {
-                return terms.rowSize(term);
+                int many = Math.min(terms.rowSize(term), line.length);
+                for (int k = 0; k < many; k++) {
+                    line[k] = terms.rowAt(term, k);
+                }
+                lineSize = many;
+            } else if (theory.unit(op) < 0 || terms.head[term] != theory.unit(op) + Terms.OPERATOR) {
+                line[0] = term;
+                lineSize = 1;
             }
-            return theory.unit(op) >= 0 && terms.head[term] == theory.unit(op) + Terms.OPERATOR ? 0 : 1;
         }
 
-        private int elementOf(int op, int term, int k) {
-            return terms.head[term] == op + Terms.OPERATOR ? terms.rowAt(term, k) : term;
-        }
-
-        private int startRow(int goal, int op, int alternative, boolean openHere) {
-            int p = goals[goal + PATTERN];
-            int t = goals[goal + TERM];
+        private int startRow(int p, int t, int next, int alternative) {
+            int op = terms.operatorOf(p);
             int items = terms.rowSize(p);
-            int many = countIn(op, t);
-            if (theory.unit(op) < 0 && many < items) {
+            loadLine(op, t);
+            if (theory.unit(op) < 0 && lineSize < items) {
                 return FAILS;
             }
             if (theory.isComm(op)) {
-                return newGoal(p, t, items, (1 << many) - 1, goals[goal + NEXT]);
+                return newGoal(p, t, items, (1 << lineSize) - 1, next);
             }
+            boolean openHere = open && p == root;
             if (openHere) {
                 aheadSize = alternative;
-                more = alternative + 1 < many ? alternative + 1 : -1;
+                more = alternative + 1 < lineSize ? alternative + 1 : -1;
             }
-            return newGoal(p, t, items, openHere ? alternative : 0, goals[goal + NEXT]);
+            return newGoal(p, t, items, openHere ? alternative : 0, next);
         }
 
         /** Whether an item of a row may stand for none or many of a row. */
@@ -2826,44 +2803,54 @@ public final class RewriteHouse {
             return terms.isVariable(item) && bind[terms.head[item]] >= 0;
         }
 
-        /** The last of the items that are left takes any of what is left (as bits) of the row. */
-        private int dealAny(int goal, int alternative) {
+        /** What is left to do when an item of a row has taken some of the line, as bits; a bound item is done. */
+        private int afterItem(int goal, int item, int bits, int rest, boolean bound) {
             int p = goals[goal + PATTERN];
             int t = goals[goal + TERM];
+            int list = newGoal(p, t, goals[goal + ITEMS] - 1, rest, goals[goal + NEXT]);
+            if (list == FAILS || bound) {
+                return list;
+            }
+            return newGoal(item, t, PART_OF - terms.operatorOf(p), bits, list);
+        }
+
+        /** The last of the items that are left takes any of what is left, as bits, of the line. */
+        private int dealAny(int goal, int alternative) {
+            int p = goals[goal + PATTERN];
             int items = goals[goal + ITEMS];
             int rest = goals[goal + REST];
-            int op = terms.operatorOf(p);
             boolean openHere = open && p == root;
             if (items == 0) {
                 left = rest;
-                boolean ends = openHere ? rest != (1 << countIn(op, t)) - 1 : rest == 0;
+                boolean ends = openHere ? rest != (1 << lineSize) - 1 : rest == 0;
                 return ends ? goals[goal + NEXT] : FAILS;
             }
             int item = terms.rowAt(p, items - 1);
-            int taken;
-            if (isBound(item)) {
-                taken = bitsOf(op, bind[terms.head[item]], t, rest);
+            boolean bound = isBound(item);
+            int bits;
+            if (bound) {
+                bits = bitsOf(terms.operatorOf(p), bind[terms.head[item]], rest);
             } else if (!isLoose(item)) {
-                taken = nextOne(op, t, item, rest, alternative);
+                bits = nextOne(item, rest, alternative);
             } else {
-                taken = nextBits(goal, alternative, items == 1 && !openHere);
+                boolean unit = theory.unit(terms.operatorOf(p)) >= 0;
+                bits = nextBits(rest, items == 1 && !openHere ? rest : alternative, unit ? -1 : items - 1);
             }
-            if (taken < 0) {
-                return FAILS;
-            }
-            int list = newGoal(p, t, items - 1, rest & ~taken, goals[goal + NEXT]);
-            if (list == FAILS || isBound(item)) {
-                return list;
-            }
-            return newGoal(item, taken(op, t, taken), WHOLE, 0, list);
+            return bits < 0 ? FAILS : afterItem(goal, item, bits, rest & ~bits, bound);
         }
 
-        /** Where what a variable stands for is in the rest of a row, or -1. */
-        private int bitsOf(int op, int term, int t, int rest) {
-            int many = countIn(op, term);
+        /** Where what a variable stands for is in the rest of the line, or -1. */
+        private int bitsOf(int op, int term, int rest) {
+            boolean opened = terms.head[term] == op + Terms.OPERATOR;
+            boolean none = theory.unit(op) >= 0 && terms.head[term] == theory.unit(op) + Terms.OPERATOR;
+            int many = opened ? terms.rowSize(term) : none ? 0 : 1;
             int bits = 0;
             for (int k = 0; k < many; k++) {
-                int bit = bitOf(op, elementOf(op, term, k), t, rest & ~bits);
+                int element = opened ? terms.rowAt(term, k) : term;
+                int bit = -1;
+                for (int b = 0; b < lineSize && bit < 0; b++) {
+                    bit = ((rest & ~bits) >> b & 1) != 0 && line[b] == element ? b : -1;
+                }
                 if (bit < 0) {
                     return -1;
                 }
@@ -2872,25 +2859,12 @@ public final class RewriteHouse {
             return bits;
         }
 
-        private int bitOf(int op, int element, int t, int rest) {
-            int many = countIn(op, t);
-            for (int b = 0; b < many; b++) {
-                if ((rest >> b & 1) != 0 && elementOf(op, t, b) == element) {
-                    return b;
-                }
-            }
-            return -1;
-        }
-
         /** The next of the rest that an item of one term could be; of the same ones only the first counts. */
-        private int nextOne(int op, int t, int item, int rest, int from) {
-            int many = countIn(op, t);
-            for (int b = from; b < many; b++) {
-                if ((rest >> b & 1) == 0 || isLikeEarlier(op, t, b, rest)) {
-                    continue;
-                }
-                int element = elementOf(op, t, b);
-                if (terms.vars[item] == 0L ? element == item : terms.head[element] == terms.head[item]) {
+        private int nextOne(int item, int rest, int from) {
+            for (int b = from; b < lineSize; b++) {
+                boolean likeEarlier = b > 0 && (rest >> (b - 1) & 1) != 0 && line[b] == line[b - 1];
+                boolean fits = terms.vars[item] == 0L ? line[b] == item : terms.head[line[b]] == terms.head[item];
+                if ((rest >> b & 1) != 0 && fits && !likeEarlier) {
                     more = b + 1;
                     return 1 << b;
                 }
@@ -2898,20 +2872,16 @@ public final class RewriteHouse {
             return -1;
         }
 
-        private boolean isLikeEarlier(int op, int t, int b, int rest) {
-            return b > 0 && (rest >> (b - 1) & 1) != 0 && elementOf(op, t, b) == elementOf(op, t, b - 1);
-        }
-
-        /** The next choice, as bits, of any of the rest; the last item takes all. */
-        private int nextBits(int goal, int from, boolean all) {
-            int t = goals[goal + TERM];
-            int rest = goals[goal + REST];
-            int op = terms.operatorOf(goals[goal + PATTERN]);
-            boolean unit = theory.unit(op) >= 0;
-            int needed = unit ? 0 : goals[goal + ITEMS] - 1;
-            for (int bits = all ? rest : from; bits <= rest; bits++) {
-                if ((bits & ~rest) == 0 && (unit || bits != 0) && Integer.bitCount(rest & ~bits) >= needed
-                        && takesFirstOfSame(op, t, bits, rest)) {
+        /** The next choice, as bits, of any of the rest, that leaves what others need (below 0: none may be taken). */
+        private int nextBits(int rest, int from, int needed) {
+            int same = 0;
+            for (int b = 1; b < lineSize; b++) {
+                same |= line[b] == line[b - 1] ? 1 << b : 0;
+            }
+            for (int bits = needed < 0 ? from : Math.max(from, 1); bits <= rest; bits++) {
+                // of the same ones those ahead are taken first
+                boolean inOrder = (bits & same & rest << 1 & ~(bits << 1)) == 0;
+                if ((bits & ~rest) == 0 && inOrder && Integer.bitCount(rest & ~bits) >= needed) {
                     more = bits < rest ? bits + 1 : -1;
                     return bits;
                 }
@@ -2919,85 +2889,72 @@ public final class RewriteHouse {
             return -1;
         }
 
-        private boolean takesFirstOfSame(int op, int t, int bits, int rest) {
-            int many = countIn(op, t);
-            for (int b = 1; b < many; b++) {
-                if ((bits >> b & 1) != 0 && (bits >> (b - 1) & 1) == 0 && isLikeEarlier(op, t, b, rest)) {
-                    return false;
-                }
-            }
-            return true;
-        }
-
-        /** The first of the items that are left takes some of the row from the place where it is left on. */
+        /** The first of the items that are left takes some of the line from the place where it is left on. */
         private int dealInRow(int goal, int alternative) {
             int p = goals[goal + PATTERN];
-            int t = goals[goal + TERM];
             int items = goals[goal + ITEMS];
             int from = goals[goal + REST];
             int op = terms.operatorOf(p);
-            int many = countIn(op, t);
             boolean openHere = open && p == root;
             if (items == 0) {
                 left = from;
-                boolean ends = openHere ? from > aheadSize : from == many;
+                boolean ends = openHere ? from > aheadSize : from == lineSize;
                 return ends ? goals[goal + NEXT] : FAILS;
             }
             int item = terms.rowAt(p, terms.rowSize(p) - items);
             boolean unit = theory.unit(op) >= 0;
+            boolean bound = isBound(item);
             int size = 1;
-            if (isBound(item)) {
-                size = sizeIfSame(op, bind[terms.head[item]], t, from);
+            if (bound) {
+                size = sizeIfSame(op, bind[terms.head[item]], from);
             } else if (isLoose(item)) {
-                int most = many - from - (unit ? 0 : items - 1);
+                int most = lineSize - from - (unit ? 0 : items - 1);
                 int least = items == 1 && !openHere ? most : 0;
                 size = Math.max(alternative, unit ? least : Math.max(least, 1));
                 more = size < most ? size + 1 : -1;
                 size = size > most ? -1 : size;
             }
-            if (size < 0 || from + size > many) {
+            if (size < 0 || from + size > lineSize) {
                 return FAILS;
             }
-            int list = newGoal(p, t, items - 1, from + size, goals[goal + NEXT]);
-            if (list == FAILS || isBound(item)) {
-                return list;
-            }
-            return newGoal(item, taken(op, t, (1 << (from + size)) - (1 << from)), WHOLE, 0, list);
+            return afterItem(goal, item, (1 << (from + size)) - (1 << from), from + size, bound);
         }
 
-        /** How many of the row what a variable stands for takes from a place on, or -1. */
-        private int sizeIfSame(int op, int term, int t, int from) {
-            int size = countIn(op, term);
-            if (from + size > countIn(op, t)) {
+        /** How many of the line what a variable stands for takes from a place on, or -1. */
+        private int sizeIfSame(int op, int term, int from) {
+            boolean opened = terms.head[term] == op + Terms.OPERATOR;
+            boolean none = theory.unit(op) >= 0 && terms.head[term] == theory.unit(op) + Terms.OPERATOR;
+            int size = opened ? terms.rowSize(term) : none ? 0 : 1;
+            if (from + size > lineSize) {
                 return -1;
             }
             for (int k = 0; k < size; k++) {
-                if (elementOf(op, term, k) != elementOf(op, t, from + k)) {
+                if (line[from + k] != (opened ? terms.rowAt(term, k) : term)) {
                     return -1;
                 }
             }
             return size;
         }
 
-        /** The term that some of a row, as bits, are. */
-        private int taken(int op, int t, int bits) {
-            int many = countIn(op, t);
+        /** The term that some of the line, as bits, are; -1: there is none. */
+        private int taken(int op, int bits) {
             int n = 0;
-            for (int b = 0; b < many; b++) {
+            for (int b = 0; b < lineSize; b++) {
                 if ((bits >> b & 1) != 0) {
-                    terms.row[n] = elementOf(op, t, b);
+                    terms.row[n] = line[b];
                     n++;
                 }
             }
             if (n == 0) {
-                return theory.unit(op) < 0 ? -1 : terms.constant(theory.unit(op));
+                return theory.unit(op) < 0 ? -1 : terms.intern(theory.unit(op) + Terms.OPERATOR, 0);
             }
             return n == 1 ? terms.row[0] : terms.intern(op + Terms.OPERATOR, n);
         }
 
         // the list
 
-        private void record() {
+        /** The matcher that was found stands in fresh then. */
+        private void note() {
             int n = 0;
             for (int v = 0; v < VARIABLES; v++) {
                 if ((terms.vars[root] >> v & 1L) != 0L) {
@@ -3009,16 +2966,16 @@ public final class RewriteHouse {
             fresh[n + 1] = -1;
             if (open) {
                 int op = terms.operatorOf(root);
-                int many = terms.rowSize(whole);
+                loadLine(op, whole);
                 boolean any = theory.isComm(op);
-                int behind = any ? left : (1 << many) - (1 << left);
+                int behind = any ? left : (1 << lineSize) - (1 << left);
                 int ahead = any ? 0 : (1 << aheadSize) - 1;
-                fresh[n] = ahead == 0 ? -1 : taken(op, whole, ahead);
-                fresh[n + 1] = behind == 0 ? -1 : taken(op, whole, behind);
+                fresh[n] = ahead == 0 ? -1 : taken(op, ahead);
+                fresh[n + 1] = behind == 0 ? -1 : taken(op, behind);
             }
-            insert(n + 2);
         }
 
+        /** Puts the matcher that was found into the list, where it belongs, unless it is in it. */
         private void insert(int width) {
             int low = 0;
             int high = found;
@@ -3059,22 +3016,24 @@ public final class RewriteHouse {
 
         /** What stands beside the pattern: fewer come first. */
         private int compareBeside(int a, int b) {
-            int op = terms.operatorOf(root);
-            int many = a < 0 ? 0 : countIn(op, a);
-            int others = b < 0 ? 0 : countIn(op, b);
+            int many = a < 0 ? 0 : terms.head[a] == terms.head[root] ? terms.rowSize(a) : 1;
+            int others = b < 0 ? 0 : terms.head[b] == terms.head[root] ? terms.rowSize(b) : 1;
             return many != others ? Integer.compare(many, others) : terms.compare(a, b);
         }
     }
 
     /** Brings terms to REST by equations, and looks for the ways in which a C holds. */
     static final class Runner {
-        static final int DEEPEST = 60, RULE_SLOT = 61;
+        static final int DEEPEST = 60, RULE_SLOT = 61, ANY_LABEL = -1;
         private static final int HALTED = Counts.HALTED, UNKNOWN = -2;
         private static final int SLOTS = 62, VARIABLES = Theory.MOST_VARIABLES, MOST_CHAIN = 4096, MOST_WAYS = 1000000;
-        /** For each depth: the equation that is tried, its list of matchers, what is beside the one that is tried. */
-        private static final int EQUATION = 0, STATEMENT = 1, BASE = 2, FOUND = 3, AT = 4, AHEAD = 5, BEHIND = 6;
+        /**
+         * For each depth, and for rules, a slot: which statement comes next (of rules with a LABEL), the one that is
+         * tried, its list of matchers, what is beside the one that is tried, and how many parts of its C hold.
+         */
+        private static final int UPCOMING = 0, LABEL = 1, STATEMENT = 2, BASE = 3, FOUND = 4, AT = 5, AHEAD = 6, BEHIND = 7, HELD = 8;
         /** And the lists of the parts of its C: where each one begins, how many it has, the next one. */
-        private static final int LISTS = 7, LIST = 3, FIELDS = LISTS + Syntax.MOST_PARTS * LIST;
+        private static final int LISTS = 9, LIST = 3, FIELDS = LISTS + Syntax.MOST_PARTS * LIST;
 
         private final Theory theory;
         private final Terms terms;
@@ -3126,11 +3085,6 @@ public final class RewriteHouse {
             return term;
         }
 
-        /** What a call REDUCES, or a rule makes, or a pair is, REDUCED; or HALTED. */
-        int toRest(int term) {
-            return restFrom(term, 0);
-        }
-
         /** What a term is REDUCED to so deep in REDUCING, or HALTED. */
         private int restFrom(int term, int depth) {
             int known = knownRest(term, depth);
@@ -3155,18 +3109,15 @@ public final class RewriteHouse {
                     return HALTED;
                 }
                 int end = restOf(current);
-                boolean goes = false;
                 if (end < 0) {
                     chainUp(current);
-                    openEquations(depth);
-                    for (int m = 0; m < MOST_WAYS && !goes && nextMatcher(current, depth); m++) {
-                        goes = findWay(frame[depth * FIELDS + STATEMENT], depth, depth + 1, true);
-                    }
                     end = current;
-                }
-                if (goes) {
-                    current = stepped(depth);
-                    end = current < 0 ? HALTED : terms.isVariable(current) ? current : restOf(current);
+                    openSlot(depth, ANY_LABEL);
+                    if (nextWay(depth, current, depth + 1)) {
+                        current = madeBy(depth);
+                        end = current < 0 || !counts.addStep() ? HALTED : terms.isVariable(current) ? current : restOf(current);
+                    }
+                    matcher.top = frame[depth * FIELDS + BASE];
                 }
                 if (counts.stop != 0) {
                     return HALTED;
@@ -3202,42 +3153,97 @@ public final class RewriteHouse {
             return made < 0 ? counts.halt(6) : made;
         }
 
-        private void openEquations(int depth) {
-            int f = depth * FIELDS;
-            frame[f + EQUATION] = -1;
+        /** Equations are tried in a slot from the first one on; in that of rules the rules (with a LABEL). */
+        private void openSlot(int slot, int label) {
+            int f = slot * FIELDS;
+            frame[f + UPCOMING] = 0;
+            frame[f + LABEL] = label;
             frame[f + BASE] = matcher.top;
             frame[f + FOUND] = 0;
             frame[f + AT] = 0;
+            frame[f + HELD] = 0;
         }
 
-        /** Goes on to the next matcher of an equation with a term, in the order in which they are tried. */
-        private boolean nextMatcher(int term, int depth) {
-            int f = depth * FIELDS;
-            for (int n = 0; n <= Theory.MOST_EQUATIONS && counts.stop == 0; n++) {
-                if (frame[f + AT] < frame[f + FOUND]) {
-                    int s = frame[f + STATEMENT];
-                    load(s, frame[f + BASE] + frame[f + AT] * matcher.widthOf(theory.told(s, Theory.LEFT)), depth);
-                    frame[f + AT]++;
+        /**
+         * Goes on to the next way in which the next matcher of a statement with a term, all in their order, makes its C
+         * hold; T and U of C are so deep. False: there is none, or it is stopped.
+         */
+        private boolean nextWay(int slot, int term, int depth) {
+            int f = slot * FIELDS;
+            int k = retry(slot, frame[f + HELD]);
+            for (int n = 0; n < MOST_WAYS && counts.stop == 0; n++) {
+                if (k < 0 && frame[f + AT] >= frame[f + FOUND]) {
+                    int pattern = nextLeft(slot);
+                    if (pattern < 0) {
+                        return false;
+                    }
+                    frame[f + FOUND] = matcher.list(pattern, term, true, 0L, values, 0);
+                    continue;
+                }
+                if (k < 0) {
+                    load(slot);
+                    k = 0;
+                }
+                int s = frame[f + STATEMENT];
+                frame[f + HELD] = k;
+                if (k >= theory.told(s, Theory.PART_COUNT)) {
                     return true;
                 }
-                matcher.top = frame[f + BASE];
-                frame[f + EQUATION]++;
-                if (frame[f + EQUATION] >= theory.equations) {
+                int p = theory.told(s, Theory.FIRST_PART) + k;
+                int sign = theory.toldPart(p, Theory.SIGN);
+                int t = theory.toldPart(p, Theory.T);
+                int u = theory.toldPart(p, Theory.U);
+                int first = sign == Words.TAKES ? 0 : restFrom(filled(t, slot, 0), depth);
+                int second = sign == Words.COLON || first < 0 ? 0
+                        : restFrom(filled(u, slot, sign == Words.TAKES ? terms.sizeOf(t) : 0), depth);
+                if (first < 0 || second < 0) {
                     return false;
                 }
-                int s = theory.tried[frame[f + EQUATION]];
-                frame[f + STATEMENT] = s;
-                frame[f + FOUND] = matcher.list(theory.told(s, Theory.LEFT), term, true, 0L, values, 0);
-                frame[f + AT] = 0;
+                if (sign == Words.TAKES) {
+                    int list = f + LISTS + k * LIST;
+                    frame[list] = matcher.top;
+                    frame[list + 1] = matcher.list(t, second, false, theory.toldPart(p, Theory.KNOWN), values, slot * VARIABLES);
+                    frame[list + 2] = 0;
+                    k = retry(slot, k + 1);
+                } else {
+                    boolean holds = sign == Words.EQUAL ? first == second : isOfSort(first, u);
+                    k = holds ? k + 1 : retry(slot, k);
+                }
             }
             return false;
         }
 
-        /** A matcher of a statement's left side is the one that is tried in a slot. */
-        void load(int s, int row, int slot) {
-            int next = loadValues(theory.told(s, Theory.LEFT), row, slot);
-            frame[slot * FIELDS + AHEAD] = matcher.rows[next];
-            frame[slot * FIELDS + BEHIND] = matcher.rows[next + 1];
+        private boolean isOfSort(int term, int sort) {
+            return terms.leastOf(term) >= 0 && theory.isBelow(terms.leastOf(term), sort);
+        }
+
+        /** On to the next statement of a slot: its left side, or -1. */
+        private int nextLeft(int slot) {
+            int f = slot * FIELDS;
+            boolean rules = slot == RULE_SLOT;
+            int many = rules ? theory.rules : theory.equations;
+            matcher.top = frame[f + BASE];
+            for (int n = frame[f + UPCOMING]; n < many; n++) {
+                int s = rules ? Theory.MOST_EQUATIONS + n : theory.tried[n];
+                if (frame[f + LABEL] == ANY_LABEL || frame[f + LABEL] == theory.told(s, Theory.LABEL)) {
+                    frame[f + UPCOMING] = n + 1;
+                    frame[f + STATEMENT] = s;
+                    frame[f + AT] = 0;
+                    return theory.told(s, Theory.LEFT);
+                }
+            }
+            frame[f + UPCOMING] = many;
+            return -1;
+        }
+
+        /** The next matcher of the list of a slot's statement is the one that is tried. */
+        private void load(int slot) {
+            int f = slot * FIELDS;
+            int pattern = theory.told(frame[f + STATEMENT], Theory.LEFT);
+            int next = loadValues(pattern, frame[f + BASE] + frame[f + AT] * matcher.widthOf(pattern), slot);
+            frame[f + AHEAD] = matcher.rows[next];
+            frame[f + BEHIND] = matcher.rows[next + 1];
+            frame[f + AT]++;
         }
 
         private int loadValues(int pattern, int row, int slot) {
@@ -3251,15 +3257,29 @@ public final class RewriteHouse {
             return next;
         }
 
-        /** What the equation that was found makes of a term, as a STEP. */
-        private int stepped(int depth) {
-            int made = madeBy(frame[depth * FIELDS + STATEMENT], depth);
-            matcher.top = frame[depth * FIELDS + BASE];
-            return made >= 0 && counts.addStep() ? made : HALTED;
+        /** Back from part k to the last T := U ahead of it that has another matcher: the part behind that, or -1. */
+        private int retry(int slot, int k) {
+            int f = slot * FIELDS;
+            for (int j = k - 1; j >= 0; j--) {
+                int p = theory.told(frame[f + STATEMENT], Theory.FIRST_PART) + j;
+                if (theory.toldPart(p, Theory.SIGN) != Words.TAKES) {
+                    continue;
+                }
+                int list = f + LISTS + j * LIST;
+                int pattern = theory.toldPart(p, Theory.T);
+                if (frame[list + 2] < frame[list + 1]) {
+                    loadValues(pattern, frame[list] + frame[list + 2] * matcher.widthOf(pattern), slot);
+                    frame[list + 2]++;
+                    return j + 1;
+                }
+                matcher.top = frame[list];
+            }
+            return -1;
         }
 
-        /** The right side of a statement with what its slot has, and what was beside it. */
-        int madeBy(int s, int slot) {
+        /** The right side of a slot's statement with its matcher, and with what was beside it; or HALTED. */
+        int madeBy(int slot) {
+            int s = frame[slot * FIELDS + STATEMENT];
             int made = filled(theory.told(s, Theory.RIGHT), slot, 0);
             int ahead = frame[slot * FIELDS + AHEAD];
             int behind = frame[slot * FIELDS + BEHIND];
@@ -3279,6 +3299,7 @@ public final class RewriteHouse {
             return made < 0 ? counts.halt(6) : made;
         }
 
+        /** A side of a statement or part with a slot's matcher; what is filled besides counts, too. */
         private int filled(int term, int slot, int besides) {
             if (!counts.addFilled(terms.sizeOf(term) + besides)) {
                 return HALTED;
@@ -3287,76 +3308,9 @@ public final class RewriteHouse {
             return made < 0 ? counts.halt(6) : made;
         }
 
-        /** Goes on to the first way in which a rule's C holds with its matcher, or to the next one. */
-        boolean nextWay(int s, boolean fromStart) {
-            return findWay(s, RULE_SLOT, 1, fromStart);
-        }
-
-        private boolean findWay(int s, int slot, int depth, boolean fromStart) {
-            int parts = theory.told(s, Theory.PART_COUNT);
-            int k = fromStart ? 0 : retry(s, slot, parts);
-            for (int n = 0; n < MOST_WAYS && k >= 0 && k < parts; n++) {
-                int p = theory.told(s, Theory.FIRST_PART) + k;
-                int sign = theory.toldPart(p, Theory.SIGN);
-                int t = theory.toldPart(p, Theory.T);
-                int u = theory.toldPart(p, Theory.U);
-                int first = 0;
-                int second = 0;
-                if (sign != Words.TAKES) {
-                    first = restFrom(filled(t, slot, 0), depth);
-                }
-                if (sign != Words.COLON && counts.stop == 0) {
-                    second = restFrom(filled(u, slot, sign == Words.TAKES ? terms.sizeOf(t) : 0), depth);
-                }
-                boolean holds = false;
-                if (counts.stop != 0) {
-                    return false;
-                } else if (sign == Words.EQUAL) {
-                    holds = first == second;
-                } else if (sign == Words.COLON) {
-                    holds = terms.leastOf(first) >= 0 && theory.isBelow(terms.leastOf(first), u);
-                } else {
-                    holds = openPart(p, second, slot, k);
-                }
-                k = holds ? k + 1 : retry(s, slot, k);
-            }
-            return k >= parts && counts.stop == 0;
-        }
-
-        /** Lists the matchers of T := U; the first one is tried. */
-        private boolean openPart(int p, int term, int slot, int k) {
-            int pattern = theory.toldPart(p, Theory.T);
-            int base = matcher.top;
-            long known = theory.toldPart(p, Theory.KNOWN);
-            int found = matcher.list(pattern, term, false, known, values, slot * VARIABLES);
-            if (found <= 0) {
-                return false;
-            }
-            int list = slot * FIELDS + LISTS + k * LIST;
-            frame[list] = base;
-            frame[list + 1] = found;
-            frame[list + 2] = 1;
-            loadValues(pattern, base, slot);
-            return true;
-        }
-
-        /** Back from part k to the last T := U ahead of it that has another matcher: the part behind that, or -1. */
-        private int retry(int s, int slot, int k) {
-            for (int j = k - 1; j >= 0; j--) {
-                int p = theory.told(s, Theory.FIRST_PART) + j;
-                if (theory.toldPart(p, Theory.SIGN) != Words.TAKES) {
-                    continue;
-                }
-                int list = slot * FIELDS + LISTS + j * LIST;
-                int pattern = theory.toldPart(p, Theory.T);
-                if (frame[list + 2] < frame[list + 1]) {
-                    loadValues(pattern, frame[list] + frame[list + 2] * matcher.widthOf(pattern), slot);
-                    frame[list + 2]++;
-                    return j + 1;
-                }
-                matcher.top = frame[list];
-            }
-            return -1;
+        /** The rule that is tried. */
+        int ruleTried() {
+            return frame[RULE_SLOT * FIELDS + STATEMENT] - Theory.MOST_EQUATIONS;
         }
     }
 
@@ -3420,13 +3374,40 @@ public final class RewriteHouse {
             return rows[at + Long.bitCount(vars & (1L << v) - 1L)];
         }
 
-        int stateOf(int wanted) {
-            for (int k = 0; k < size; k++) {
-                if (term[k] == wanted) {
-                    return k;
+        /** A term at REST is STATE 0; there is none, if it was stopped. */
+        void openStates(int first) {
+            kind = STATES;
+            size = first < 0 ? 0 : 1;
+            term[0] = first;
+            from[0] = -1;
+            rule[0] = -1;
+            far[0] = 0;
+            edgeAt[0] = 0;
+        }
+
+        /** The steps of state k, the first one that has none yet; false: too many states. */
+        boolean addSteps(int k, int[] steps, int[] rules, int many) {
+            int edge = edgeAt[k];
+            for (int i = 0; i < many; i++) {
+                int state = 0;
+                for (int n = 0; n < size && term[state] != steps[i]; n++) {
+                    state++;
                 }
+                if (state >= MOST_STATES || edge >= MOST_EDGES) {
+                    return false;
+                }
+                if (state == size) {
+                    term[state] = steps[i];
+                    from[state] = k;
+                    rule[state] = rules[i];
+                    far[state] = far[k] + 1;
+                    size++;
+                }
+                edges[edge] = state;
+                edge++;
             }
-            return -1;
+            edgeAt[k + 1] = edge;
+            return true;
         }
 
         /** The state that breaks a law first, or -1. */
@@ -3497,7 +3478,6 @@ public final class RewriteHouse {
 
     /** STEPS BY RULES, STATES, and strategies. */
     static final class Ways {
-        static final int ANY_LABEL = -1;
         private static final int MOST_LISTED = 60, MOST_WORDS = 60, MOST_LIST_CELLS = 16000;
         private static final int OR = 0, THEN = 1, STAR = 2, BANG = 3, NOT = 4, ONE = 5, IDLE = 6, FAIL = 7, STEPS = 8;
         private static final int FAULTY = -1;
@@ -3511,16 +3491,13 @@ public final class RewriteHouse {
         final int[] stepTerm = new int[MOST_LISTED];
         final int[] stepRule = new int[MOST_LISTED];
         int stepCount;
-        /** The way down to the place that is looked at: terms, and where the next one stands in each. */
-        private final int[] path = new int[Terms.MOST_SIZE + 2];
-        private final int[] place = new int[Terms.MOST_SIZE + 2];
         /** A strategy: for each node what it is, and one or two nodes (or a LABEL). */
         private final int[] nodes = new int[3 * (2 * MOST_WORDS + 2)];
         private int nodeTop;
         /** The answers that are being worked out, list behind list; and whether a term had none. */
         final int[] lists = new int[MOST_LIST_CELLS];
         private final boolean[] ended = new boolean[MOST_LIST_CELLS];
-        private int listTop;
+        int listTop;
 
         Ways(Syntax syntax, Theory theory, Terms terms, Runner runner) {
             this.syntax = syntax;
@@ -3536,67 +3513,27 @@ public final class RewriteHouse {
         /** Lists the STEPS BY RULES (with a LABEL) of a term at REST; false: stopped. */
         boolean listSteps(int term, int label) {
             stepCount = 0;
-            int level = 0;
-            path[0] = term;
-            place[0] = -1;
-            for (int n = 0; n <= 2 * Terms.MOST_SIZE && level >= 0; n++) {
-                if (place[level] < 0 && !stepAt(level, label)) {
-                    return false;
+            terms.openPlaces(term);
+            boolean there = true;
+            for (int n = 0; n <= Terms.MOST_SIZE && there; n++) {
+                runner.openSlot(Runner.RULE_SLOT, label);
+                boolean goes = runner.nextWay(Runner.RULE_SLOT, terms.termHere(), 1);
+                for (int m = 0; m <= Counts.MOST_STEPS && goes; m++) {
+                    goes = addStep() && runner.nextWay(Runner.RULE_SLOT, terms.termHere(), 1);
                 }
-                place[level]++;
-                if (place[level] < terms.rowSize(path[level])) {
-                    path[level + 1] = terms.rowAt(path[level], place[level]);
-                    level++;
-                    place[level] = -1;
-                } else {
-                    level--;
-                }
+                there = counts.stop == 0 && terms.nextPlace();
             }
-            return true;
+            return counts.stop == 0;
         }
 
-        /** All rules at the place at the end of the path. */
-        private boolean stepAt(int level, int label) {
-            for (int r = 0; r < theory.rules; r++) {
-                int s = Theory.MOST_EQUATIONS + r;
-                if (label != ANY_LABEL && theory.told(s, Theory.LABEL) != label) {
-                    continue;
-                }
-                int base = matcher.top;
-                int left = theory.told(s, Theory.LEFT);
-                int width = matcher.widthOf(left);
-                int found = matcher.list(left, path[level], true, 0L, runner.values, 0);
-                for (int m = 0; m < found; m++) {
-                    runner.load(s, base + m * width, Runner.RULE_SLOT);
-                    boolean goes = runner.nextWay(s, true);
-                    for (int n = 0; n <= Counts.MOST_STEPS + 1 && goes; n++) {
-                        goes = addStep(r, level) && runner.nextWay(s, false);
-                    }
-                    if (counts.stop != 0) {
-                        return false;
-                    }
-                }
-                if (counts.stop != 0) {
-                    return false;
-                }
-                matcher.top = base;
-            }
-            return true;
-        }
-
-        /** What a rule makes at the end of the path, all of it REDUCED, is a step, unless it is one already. */
-        private boolean addStep(int rule, int level) {
-            int made = runner.madeBy(Theory.MOST_EQUATIONS + rule, Runner.RULE_SLOT);
-            for (int l = level - 1; l >= 0 && made >= 0; l--) {
-                made = terms.replaced(path[l], place[l], made);
-                if (made < 0) {
-                    counts.halt(6);
-                }
-            }
+        /** What a rule makes, all of it REDUCED, is a step, unless it is one already. */
+        private boolean addStep() {
+            int made = runner.madeBy(Runner.RULE_SLOT);
+            made = made < 0 ? made : terms.wholeWith(made);
             if (made < 0 || !counts.addFilled(terms.sizeOf(made))) {
-                return false;
+                return counts.halt(6) >= 0;
             }
-            int end = runner.toRest(made);
+            int end = runner.restFrom(made, 0);
             if (end < 0 || !counts.addStep()) {
                 return false;
             }
@@ -3609,52 +3546,12 @@ public final class RewriteHouse {
                 return counts.halt(2) >= 0;
             }
             stepTerm[stepCount] = end;
-            stepRule[stepCount] = rule;
+            stepRule[stepCount] = runner.ruleTried();
             stepCount++;
             return true;
         }
 
         // states
-
-        /** All STATES from a term at REST; false: stopped. */
-        boolean explore(int term, Results to) {
-            to.kind = Results.STATES;
-            to.size = 0;
-            to.edgeAt[0] = 0;
-            addState(to, term, -1, -1);
-            for (int k = 0; k < to.size; k++) {
-                if (!listSteps(to.term[k], ANY_LABEL)) {
-                    return false;
-                }
-                int edge = to.edgeAt[k];
-                for (int i = 0; i < stepCount; i++) {
-                    int state = to.stateOf(stepTerm[i]);
-                    if (state < 0) {
-                        state = addState(to, stepTerm[i], k, stepRule[i]);
-                    }
-                    if (state < 0 || edge >= Results.MOST_EDGES) {
-                        return counts.halt(2) >= 0;
-                    }
-                    to.edges[edge] = state;
-                    edge++;
-                }
-                to.edgeAt[k + 1] = edge;
-            }
-            return true;
-        }
-
-        private static int addState(Results to, int term, int from, int rule) {
-            int k = to.size;
-            if (k >= Results.MOST_STATES) {
-                return -1;
-            }
-            to.term[k] = term;
-            to.from[k] = from;
-            to.rule[k] = rule;
-            to.far[k] = from < 0 ? 0 : to.far[from] + 1;
-            to.size++;
-            return k;
-        }
 
         /** How many matchers a pattern has with a state; none with one of another KIND; -1: stopped. */
         int matchers(int pattern, int state) {
@@ -3683,7 +3580,7 @@ public final class RewriteHouse {
             syntax.open(false, MOST_WORDS);
             nodeTop = 0;
             int plan = readChoice();
-            if (plan != FAULTY && syntax.here() != Syntax.END) {
+            if (plan != FAULTY && syntax.word != Syntax.END) {
                 syntax.wrong();
                 return FAULTY;
             }
@@ -3704,7 +3601,7 @@ public final class RewriteHouse {
 
         private int readChoice() {
             int node = readSequence();
-            for (int n = 0; n <= MOST_WORDS && node != FAULTY && syntax.here() == Words.OR; n++) {
+            for (int n = 0; n <= MOST_WORDS && node != FAULTY && syntax.word == Words.OR; n++) {
                 node = syntax.take() ? newNode(OR, node, readSequence()) : FAULTY;
             }
             return node;
@@ -3712,7 +3609,7 @@ public final class RewriteHouse {
 
         private int readSequence() {
             int node = readRepeated();
-            for (int n = 0; n <= MOST_WORDS && node != FAULTY && syntax.here() == Words.THEN; n++) {
+            for (int n = 0; n <= MOST_WORDS && node != FAULTY && syntax.word == Words.THEN; n++) {
                 node = syntax.take() ? newNode(THEN, node, readRepeated()) : FAULTY;
             }
             return node;
@@ -3721,7 +3618,7 @@ public final class RewriteHouse {
         private int readRepeated() {
             int node = readSingle();
             for (int n = 0; n <= MOST_WORDS && node != FAULTY; n++) {
-                int word = syntax.here();
+                int word = syntax.word;
                 if (word != Words.STAR && word != Words.BANG) {
                     return node;
                 }
@@ -3731,7 +3628,7 @@ public final class RewriteHouse {
         }
 
         private int readSingle() {
-            int word = syntax.here();
+            int word = syntax.word;
             switch (word) {
                 case Words.IDLE: return syntax.take() ? newNode(IDLE, 0, 0) : FAULTY;
                 case Words.FAIL: return syntax.take() ? newNode(FAIL, 0, 0) : FAULTY;
@@ -3767,13 +3664,7 @@ public final class RewriteHouse {
 
         // strategies at work
 
-        /** The ANSWERS of a strategy for a term at REST, in lists from its start on: how many; -1: stopped. */
-        int answers(int plan, int term) {
-            listTop = 0;
-            return answer(plan, term) ? listTop : -1;
-        }
-
-        /** Puts the answers of a node behind the lists that are there; false: stopped. */
+        /** Puts the ANSWERS of a strategy for a term at REST behind the lists that are there; false: stopped. */
         private boolean answer(int node, int term) {
             int base = listTop;
             int a = nodes[node + 1];
@@ -3937,8 +3828,7 @@ public final class RewriteHouse {
             for (int a = 0; a < sortsFor(op, 0); a++) {
                 for (int b = 0; b < sortsFor(op, 1) && fits(a, op, 0); b++) {
                     for (int c = 0; c < sortsFor(op, 2) && fits(b, op, 1); c++) {
-                        int found = fits(c, op, 2) ? theory.fitting(op, a, b, c) : 0;
-                        if (found != 0 && theory.lowest(found) < 0) {
+                        if (fits(c, op, 2) && theory.leastOver(op, a, b, c) == Theory.NO_LEAST) {
                             return tellWitness(op, a, b, c, theory.holes(op));
                         }
                     }
@@ -3961,7 +3851,7 @@ public final class RewriteHouse {
         }
 
         private int join(int op, int a, int b) {
-            return theory.leastOver(op, a, b, -1);
+            return Math.max(theory.leastOver(op, a, b, -1), -1);
         }
 
         private boolean tellWitness(int op, int a, int b, int c, int sorts) {
@@ -4051,9 +3941,15 @@ public final class RewriteHouse {
         }
 
         private boolean known(int s, int t) {
-            int x = indexOf(uppers, upperCount, s);
-            int y = indexOf(lowers, lowerCount, t);
-            return x >= 0 && y >= 0 && isAbove[x * Terms.MOST_SIZE + y];
+            int x = 0;
+            for (int n = 0; n < upperCount && uppers[x] != s; n++) {
+                x++;
+            }
+            int y = 0;
+            for (int n = 0; n < lowerCount && lowers[y] != t; n++) {
+                y++;
+            }
+            return x < upperCount && y < lowerCount && isAbove[x * Terms.MOST_SIZE + y];
         }
 
         private boolean isAboveByParts(int s, int t) {
@@ -4162,6 +4058,8 @@ public final class RewriteHouse {
         /** How many twos were looked at on this way. */
         private int twos;
         private int nodes;
+        /** The goals with which it goes on; NIL: behind the latest way. */
+        private int upcoming;
         /** How often sorts alone left it OPEN whether there is a way; and PAIRS and OPEN ones together. */
         int open;
         private int together;
@@ -4195,35 +4093,28 @@ public final class RewriteHouse {
             return goal;
         }
 
-        /** The first way of two terms; false: there is none, or it is stopped. */
-        boolean firstWay(int first, int second) {
+        /** Two terms are to become one. */
+        void open(int first, int second) {
             Arrays.fill(bind, -1);
             trailTop = 0;
             goalTop = 0;
             choiceTop = 0;
             twos = 0;
-            return follow(newGoal(first, second, NIL));
+            upcoming = newGoal(first, second, NIL);
         }
 
-        /** The way behind the one that was found last; terms that were made since go. */
+        /** On to the next way; terms that were made since the latest one go. False: there is none, or it is stopped. */
         boolean nextWay() {
-            return follow(back());
-        }
-
-        private boolean follow(int from) {
-            int goal = from;
+            int goal = upcoming == NIL ? back() : upcoming;
             for (int work = 0; work < MOST_WORK && counts.stop == 0; work++) {
                 if (goal == NIL) {
+                    upcoming = NIL;
                     return true;
                 }
-                if (goal == FAILS) {
-                    if (choiceTop == 0) {
-                        return false;
-                    }
-                    goal = back();
-                } else {
-                    goal = look(goal);
+                if (goal == FAILS && choiceTop == 0) {
+                    return false;
                 }
+                goal = goal == FAILS ? back() : look(goal);
             }
             return false;
         }
@@ -4382,29 +4273,27 @@ public final class RewriteHouse {
 
     /** Judges pairs of equations that meet. */
     static final class Pairs {
-        private static final int MOST_PAIRS = 4000, APART = Theory.MOST_VARIABLES, JUDGE_ALL = -1;
-        private static final int FOUND = 3;
+        static final int JUDGE_ALL = -1;
+        private static final int MOST_PAIRS = 4000, APART = Theory.MOST_VARIABLES, FOUND = 3;
 
         private final Theory theory;
         private final Terms terms;
         private final Runner runner;
         private final Counts counts;
         private final Unifier unifier;
-        boolean judged;
+        private boolean judged;
         int pairCount;
         int apart;
         int open;
         int stop;
+        /** How many pairs were gone through. */
+        private int gone;
         /** Of each pair that does not meet: i, j, and how many pairs stand ahead of it. */
         private final int[] found = new int[MOST_PAIRS * FOUND];
-        /** The way down to the place in j's left side: terms, and where the next one stands in each. */
-        private final int[] path = new int[Terms.MOST_SIZE + 2];
-        private final int[] place = new int[Terms.MOST_SIZE + 2];
         private final int[] renamed = new int[Theory.MOST_VARIABLES];
-        /** The pair that is looked for, or JUDGE_ALL; and the terms of the latest one. */
-        private int wanted;
-        private int first;
-        private int second;
+        /** The terms of the latest pair. */
+        int first;
+        int second;
 
         Pairs(Theory theory, Terms terms, Runner runner, Counts counts) {
             this.theory = theory;
@@ -4446,127 +4335,99 @@ public final class RewriteHouse {
             return found[i * FOUND + what];
         }
 
-        void judgeAll() {
-            wanted = JUDGE_ALL;
-            goThrough();
-            open = unifier.open;
-            stop = counts.stop;
-            judged = true;
+        /** How many pairs stand ahead of the i-th one that does not meet. */
+        int pairAhead(int i) {
+            return found[i * FOUND + 2];
         }
 
-        /** One of the two terms of a pair that does not meet; all pairs are gone through again up to it. */
-        int termOf(int i, boolean isFirst) {
-            int keptCount = pairCount;
-            int keptApart = apart;
-            wanted = found[i * FOUND + 2];
-            goThrough();
-            pairCount = keptCount;
-            apart = keptApart;
-            return isFirst ? first : second;
-        }
-
-        private void goThrough() {
+        /** Judges all pairs, once; or goes through them again up to one that does not meet, to have its terms. */
+        void judge(int wanted) {
+            if (wanted == JUDGE_ALL && judged) {
+                return;
+            }
             counts.begin(Counts.MOST_DEALS_OF_PAIRS);
-            pairCount = 0;
-            apart = 0;
+            runner.begin();
             unifier.restart();
-            for (int i = 0; i < theory.equations; i++) {
+            gone = 0;
+            apart = wanted == JUDGE_ALL ? 0 : apart;
+            boolean goes = true;
+            for (int i = 0; i < theory.equations && goes; i++) {
                 int left = putApart(theory.told(i, Theory.LEFT));
                 int right = putApart(theory.told(i, Theory.RIGHT));
-                for (int j = 0; j < theory.equations && left >= 0 && right >= 0; j++) {
-                    if (!goThroughPlaces(i, j, left, right)) {
-                        return;
+                for (int j = 0; j < theory.equations && goes && left >= 0 && right >= 0; j++) {
+                    terms.openPlaces(theory.told(j, Theory.LEFT));
+                    boolean there = true;
+                    for (int n = 0; n <= Terms.MOST_SIZE && there && goes; n++) {
+                        int mark = terms.count;
+                        boolean unified = isLookedAt(i, j, left);
+                        if (unified) {
+                            unifier.open(left, terms.termHere());
+                        }
+                        for (int m = 0; m <= MOST_PAIRS && goes && unified; m++) {
+                            unified = unifier.nextWay();
+                            goes = !unified || addPair(i, j, right, wanted);
+                        }
+                        goes = goes && counts.stop == 0;
+                        if (goes) {
+                            terms.release(mark);
+                        }
+                        there = terms.nextPlace();
                     }
                 }
             }
+            if (wanted == JUDGE_ALL) {
+                judged = true;
+                pairCount = gone;
+                open = unifier.open;
+                stop = counts.stop;
+            }
+        }
+
+        /** Whether i's left side and the place that is looked at in j's count; other operators have no way. */
+        private boolean isLookedAt(int i, int j, int left) {
+            int here = terms.termHere();
+            boolean skipsWhole = i > j || (i == j && terms.commRows(here) == 0);
+            return terms.head[here] == terms.head[left] && !(terms.isWholeHere() && skipsWhole);
         }
 
         private int putApart(int term) {
             for (int v = 0; v < APART; v++) {
-                renamed[v] = (terms.vars[term] >> v & 1L) != 0L ? terms.variable(v + APART) : -1;
+                renamed[v] = (terms.vars[term] >> v & 1L) != 0L ? terms.intern(v + APART, 0) : -1;
             }
             return terms.fill(term, renamed, 0);
         }
 
-        private boolean goThroughPlaces(int i, int j, int left, int right) {
-            int whole = theory.told(j, Theory.LEFT);
-            boolean skipsWhole = i > j || (i == j && terms.commRows(whole) == 0);
-            int level = 0;
-            path[0] = whole;
-            place[0] = -1;
-            for (int n = 0; n <= 2 * Terms.MOST_SIZE && level >= 0; n++) {
-                boolean looked = place[level] < 0 && terms.head[path[level]] == terms.head[left];
-                if (looked && (level > 0 || !skipsWhole) && !goThroughWays(i, j, level, left, right)) {
-                    return false;
-                }
-                place[level]++;
-                if (place[level] < terms.rowSize(path[level])) {
-                    path[level + 1] = terms.rowAt(path[level], place[level]);
-                    level++;
-                    place[level] = -1;
-                } else {
-                    level--;
-                }
-            }
-            return true;
-        }
-
-        /** All ways in which i's left side and the term at the end of the path become one. */
-        private boolean goThroughWays(int i, int j, int level, int left, int right) {
-            int mark = terms.count;
-            boolean goes = unifier.firstWay(left, path[level]);
-            for (int n = 0; n <= MOST_PAIRS && goes; n++) {
-                if (!addPair(i, j, level, right)) {
-                    return false;
-                }
-                goes = unifier.nextWay();
-            }
-            if (counts.stop != 0) {
-                return false;
-            }
-            terms.release(mark);
-            return true;
-        }
-
         /** Judges the pair of the way that was found; false: stopped, or it was the one that is wanted. */
-        private boolean addPair(int i, int j, int level, int right) {
-            pairCount++;
+        private boolean addPair(int i, int j, int right, int wanted) {
+            gone++;
             if (!unifier.countOne()) {
                 return false;
             }
-            if (wanted != JUDGE_ALL && wanted != pairCount - 1) {
+            if (wanted != JUDGE_ALL && wanted != gone - 1) {
                 return true;
             }
             int mark = terms.count;
             counts.beginAnew();
             runner.begin();
+            int whole = terms.wholeWith(right);
             first = unifier.changed(theory.told(j, Theory.RIGHT));
-            second = first < 0 ? first : changedWhole(level, right);
-            if (second < 0) {
+            second = whole < 0 ? counts.halt(6) : unifier.changed(whole);
+            if (first < 0 || second < 0) {
                 return false;
             }
-            first = runner.toRest(first);
-            second = first < 0 ? first : runner.toRest(second);
+            first = runner.restFrom(first, 0);
+            second = first < 0 ? first : runner.restFrom(second, 0);
             if (second < 0 || wanted != JUDGE_ALL) {
                 return false;
             }
             if (first != second && apart < MOST_PAIRS) {
                 found[apart * FOUND] = i;
                 found[apart * FOUND + 1] = j;
-                found[apart * FOUND + 2] = pairCount - 1;
+                found[apart * FOUND + 2] = gone - 1;
                 apart++;
             }
             terms.release(mark);
             return true;
-        }
-
-        /** j's left side with i's right side at the end of the path, so changed. */
-        private int changedWhole(int level, int right) {
-            int made = right;
-            for (int l = level - 1; l >= 0 && made >= 0; l--) {
-                made = terms.replaced(path[l], place[l], made);
-            }
-            return made < 0 ? counts.halt(6) : unifier.changed(made);
         }
     }
 }
