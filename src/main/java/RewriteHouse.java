@@ -9,7 +9,7 @@ public final class RewriteHouse {
     public static final int BAD = -1, NONE = -2, FULL = -3, DOUBT = -4;
 
     private static final int MOST_HANDLES = 200;
-    private static final int TIDY_ABOVE = 16000;
+    private static final int TIDY_ABOVE = 6000;
 
     private final Words words = new Words();
     private final Syntax syntax = new Syntax(words);
@@ -869,9 +869,6 @@ public final class RewriteHouse {
                 }
             }
             table[s + TO] = at;
-            if (at == table[s + FROM]) {
-                return wrong();
-            }
             if (!takeWord(Words.COLON)) {
                 return false;
             }
@@ -1441,7 +1438,7 @@ public final class RewriteHouse {
             if (holes == 0 && sorts > 0) {
                 return to - from == 1 && words.name[from] > Words.COMMA ? callForm(sorts) : NOT_SO;
             }
-            return holes != sorts || (n == 1 && holes == 1) ? NOT_SO : n;
+            return n == 0 || holes != sorts || (n == 1 && holes == 1) ? NOT_SO : n;
         }
 
         /** The word in form stands for itself, and its HOLES in brackets. */
@@ -1772,7 +1769,7 @@ public final class RewriteHouse {
     /** Reads rows of words as terms, and prints terms. */
     static final class Language {
         static final int ANY_KIND = -1, NO_READING = 6, DOUBTFUL = 7;
-        private static final int SIDE = Syntax.LONGEST_ROW + 1, MOST_ENTRIES = 40000, MOST_PRINTED = 12000;
+        private static final int SIDE = Syntax.LONGEST_ROW + 1, FIRST_ENTRIES = 2048, MOST_ENTRIES = 65536, MOST_PRINTED = 12000;
         /** Readings are told by operator, or, if they are a variable or in brackets, by KIND from here on. */
         private static final int ATOM = Theory.MOST_ROWS;
         /** An entry has how many readings there are (one, or two for more), their KIND, STRENGTH, and what they are. */
@@ -1786,7 +1783,7 @@ public final class RewriteHouse {
         /** For each stretch of words the entries of its readings. */
         private final int[] spanFrom = new int[SIDE * SIDE];
         private final int[] spanTo = new int[SIDE * SIDE];
-        private final int[] entries = new int[MOST_ENTRIES];
+        private int[] entries = new int[FIRST_ENTRIES];
         private int entryTop;
         private final int[] ofKind = new int[Theory.MOST_SORTS];
         final byte[] printed = new byte[MOST_PRINTED];
@@ -1826,7 +1823,10 @@ public final class RewriteHouse {
         }
 
         private void addEntry(int what, int kind, int strength, int many) {
-            if (many > 0 && entryTop < MOST_ENTRIES) {
+            if (many > 0 && entryTop >= entries.length && entries.length < MOST_ENTRIES) {
+                entries = Arrays.copyOf(entries, entries.length * 2);
+            }
+            if (many > 0 && entryTop < entries.length) {
                 entries[entryTop] = Math.min(many, 2) | kind << KIND_SHIFT | strength << STRENGTH_SHIFT | what << WHAT_SHIFT;
                 entryTop++;
             }
@@ -2041,18 +2041,21 @@ public final class RewriteHouse {
         static final int MOST = 98304, MOST_SIZE = 40;
         /** The head of a variable is its number, that of an operator is this much higher: heads are in ORDER. */
         static final int OPERATOR = 60;
-        private static final int MOST_CELLS = 393216, CHAINS = 16384, MOST_ARGS = 8192;
+        private static final int FIRST_TERMS = 8192, FIRST_CELLS = 32768, MOST_CELLS = 524288, CHAINS = 8192, MOST_ARGS = 8192;
         /** What info has of a term: SIZE, least sort (and 1), assoc rows, comm rows that are not assoc. */
         private static final int SIZE = 63, LEAST = 31, LEAST_SHIFT = 6, ASSOC_SHIFT = 11, COMM_SHIFT = 17, LIVE = 1 << 30;
 
         private final Theory theory;
-        final int[] head = new int[MOST];
-        private final int[] start = new int[MOST + 1];
-        private final int[] info = new int[MOST];
-        private final int[] next = new int[MOST];
+        int[] head = new int[FIRST_TERMS];
+        private int[] start = new int[FIRST_TERMS + 1];
+        private int[] info = new int[FIRST_TERMS];
+        private int[] next = new int[FIRST_TERMS];
         /** The variables in a term, as bits. */
-        final long[] vars = new long[MOST];
-        private final int[] cells = new int[MOST_CELLS];
+        long[] vars = new long[FIRST_TERMS];
+        private int[] cells = new int[FIRST_CELLS];
+        /** What a term came to in a call, if its stamp is that of the call. */
+        int[] rest = new int[FIRST_TERMS];
+        int[] stamp = new int[FIRST_TERMS];
         private final int[] chains = new int[CHAINS];
         int count;
         private int kept;
@@ -2189,7 +2192,7 @@ public final class RewriteHouse {
                     return t;
                 }
             }
-            if (count >= MOST || start[count] + n > MOST_CELLS) {
+            if (!hasRoom(n)) {
                 return -1;
             }
             int fresh = count;
@@ -2218,12 +2221,30 @@ public final class RewriteHouse {
             return fresh;
         }
 
+        /** Whether there is room for a term with a row of n; most objects never need more than the first rows. */
+        private boolean hasRoom(int n) {
+            if (count >= head.length && head.length < MOST) {
+                int many = Math.min(head.length * 2, MOST);
+                head = Arrays.copyOf(head, many);
+                start = Arrays.copyOf(start, many + 1);
+                info = Arrays.copyOf(info, many);
+                next = Arrays.copyOf(next, many);
+                vars = Arrays.copyOf(vars, many);
+                rest = Arrays.copyOf(rest, many);
+                stamp = Arrays.copyOf(stamp, many);
+            }
+            if (start[count] + n > cells.length && cells.length < MOST_CELLS) {
+                cells = Arrays.copyOf(cells, Math.min(cells.length * 2, MOST_CELLS));
+            }
+            return count < head.length && start[count] + n <= cells.length;
+        }
+
         private int chainOf(int top, int n) {
             int sum = top * 31 + n;
             for (int k = 0; k < n; k++) {
                 sum = sum * 1000003 + row[k];
             }
-            return (sum ^ sum >>> 14) & (CHAINS - 1);
+            return (sum ^ sum >>> 13) & (CHAINS - 1);
         }
 
         private boolean hasRow(int term, int n) {
@@ -2465,7 +2486,7 @@ public final class RewriteHouse {
     /** Lists all matchers of a pattern and a term. */
     static final class Matcher {
         static final int MOST_LISTED = 200, WIDEST = 6;
-        private static final int VARIABLES = 60, MOST_CELLS = 210000, MOST_WORK = 5000000;
+        private static final int VARIABLES = 60, FIRST_CELLS = 8192, MOST_CELLS = 262144, MOST_WORK = 5000000;
         private static final long VERY_MANY = 4000000L;
         private static final int NIL = -1, FAILS = -2;
         /** A goal: a pattern that is to become a term, or the rest of a pattern's row to become a rest of a row. */
@@ -2488,7 +2509,7 @@ public final class RewriteHouse {
         /** The next alternative of the goal that was just tried, or -1. */
         private int more;
         /** Lists stand one behind the other: of each matcher its terms by variables, what is ahead, behind. */
-        final int[] rows = new int[MOST_CELLS];
+        int[] rows = new int[FIRST_CELLS];
         int top;
         private int found;
         private final int[] fresh = new int[VARIABLES + 2];
@@ -2524,16 +2545,19 @@ public final class RewriteHouse {
             whole = term;
             boolean operator = !terms.isVariable(pattern);
             open = within && operator && theory.isAssoc(terms.operatorOf(pattern)) && terms.head[term] == terms.head[pattern];
+            if (operator && terms.head[term] != terms.head[pattern] && theory.unit(terms.operatorOf(pattern)) < 0) {
+                return 0;
+            }
             long bound = known & terms.vars[pattern];
             for (int v = 0; v < VARIABLES; v++) {
                 bind[v] = (bound >> v & 1L) != 0L ? values[at + v] : -1;
             }
-            boolean can = !operator || terms.head[term] == terms.head[pattern] || theory.unit(terms.operatorOf(pattern)) >= 0;
             trailTop = 0;
             goalTop = 0;
             choiceTop = 0;
             int goal = newGoal(pattern, term, WHOLE, 0, NIL);
             int alternative = 0;
+            boolean can = true;
             for (int work = 0; work < MOST_WORK && can && counts.stop == 0; work++) {
                 int goalMark = goalTop;
                 int trailMark = trailTop;
@@ -2993,7 +3017,10 @@ public final class RewriteHouse {
             }
             int at = top + low * width;
             int end = top + found * width;
-            if (found >= MOST_LISTED || end + width > MOST_CELLS) {
+            if (end + width > rows.length && rows.length < MOST_CELLS) {
+                rows = Arrays.copyOf(rows, rows.length * 2);
+            }
+            if (found >= MOST_LISTED || end + width > rows.length) {
                 counts.halt(2);
                 return;
             }
@@ -3039,9 +3066,7 @@ public final class RewriteHouse {
         private final Terms terms;
         final Matcher matcher;
         final Counts counts;
-        /** What a term came to in this call, if its stamp is that of the call. */
-        private final int[] rest = new int[Terms.MOST];
-        private final int[] stamp = new int[Terms.MOST];
+        /** The number of the call, or the pair, in which terms come to REST. */
         private int now;
         private final int[] chain = new int[MOST_CHAIN];
         private int chainTop;
@@ -3065,7 +3090,7 @@ public final class RewriteHouse {
         }
 
         private int restOf(int term) {
-            return stamp[term] == now ? rest[term] : -1;
+            return terms.stamp[term] == now ? terms.rest[term] : -1;
         }
 
         private void chainUp(int term) {
@@ -3078,8 +3103,8 @@ public final class RewriteHouse {
         /** All terms of the chain from its base on came to this one. */
         private int settle(int base, int term) {
             for (int k = base; k < chainTop; k++) {
-                rest[chain[k]] = term;
-                stamp[chain[k]] = now;
+                terms.rest[chain[k]] = term;
+                terms.stamp[chain[k]] = now;
             }
             chainTop = base;
             return term;
@@ -3318,7 +3343,7 @@ public final class RewriteHouse {
     static final class Results {
         static final int NOTHING = 0, MATCHERS = 1, STEPS = 2, STATES = 3, ANSWERS = 4;
         static final int MOST_STATES = 120, MOST_EDGES = 700;
-        private static final int WIDEST = 62;
+        private static final int FIRST_CELLS = 1024;
 
         int kind;
         int size;
@@ -3329,7 +3354,7 @@ public final class RewriteHouse {
         /** For each state the states to which its steps lead stand in edges from here on. */
         final int[] edgeAt = new int[MOST_STATES + 1];
         final int[] edges = new int[MOST_EDGES];
-        private final int[] rows = new int[Matcher.MOST_LISTED * WIDEST];
+        private int[] rows = new int[FIRST_CELLS];
         private long vars;
         final boolean[] isFirst = new boolean[MOST_STATES];
         final boolean[] isSecond = new boolean[MOST_STATES];
@@ -3344,7 +3369,10 @@ public final class RewriteHouse {
             kind = MATCHERS;
             size = many;
             vars = variables;
-            System.arraycopy(list, 0, rows, 0, Math.min(many * width(), rows.length));
+            if (many * width() > rows.length) {
+                rows = new int[Math.max(many * width(), rows.length * 2)];
+            }
+            System.arraycopy(list, 0, rows, 0, many * width());
         }
 
         private int width() {
@@ -3478,7 +3506,7 @@ public final class RewriteHouse {
 
     /** STEPS BY RULES, STATES, and strategies. */
     static final class Ways {
-        private static final int MOST_LISTED = 60, MOST_WORDS = 60, MOST_LIST_CELLS = 16000;
+        private static final int MOST_LISTED = 60, MOST_WORDS = 60, MOST_LIST_CELLS = 8192;
         private static final int OR = 0, THEN = 1, STAR = 2, BANG = 3, NOT = 4, ONE = 5, IDLE = 6, FAIL = 7, STEPS = 8;
         private static final int FAULTY = -1;
 

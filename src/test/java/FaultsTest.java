@@ -45,7 +45,6 @@ final class FaultsTest {
         at(1, "sort A . var X @.");
         at(1, "sort A . var @: A .");
         at(1, "sort A . var X : A @A .");
-        at(1, "sort A . op @: -> A .");
         at(1, "sort A . op a @-> A .");
         at(1, "sort A . op a : A @.");
         at(1, "sort A . op a : -> @.");
@@ -109,6 +108,7 @@ final class FaultsTest {
         at(3, "sort A B @A .");
         at(3, "sort A . sort @A .");
         at(3, "sort A . var X : A . var Y @X : A .");
+        at(3, "sort A . @op : -> A .");
         at(3, "sort A . @op _ : A -> A .");
         at(3, "sort A . @op _ + _ : A -> A .");
         at(3, "sort A . @op f g : A -> A .");
