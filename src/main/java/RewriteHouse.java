@@ -740,20 +740,17 @@ public final class RewriteHouse {
         /** A row of WORDS that a term can have: where it ends, or -1. */
         int takeRow() {
             int from = at;
-            for (int n = 0; n <= Words.MOST && isRowWord(); n++) {
-                if (!take()) {
-                    return -1;
-                }
+            boolean good = true;
+            for (int n = 0; n <= Words.MOST && good && isRowWord(); n++) {
+                good = take();
             }
-            if (at == from) {
-                wrong();
-                return -1;
+            if (at == from && good) {
+                good = wrong();
             }
             if (at - from > LONGEST_ROW) {
-                fail(2, words.start[from]);
-                return -1;
+                good = fail(2, words.start[from]);
             }
-            return at;
+            return good ? at : -1;
         }
 
         /** A module's text. */

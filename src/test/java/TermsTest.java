@@ -53,6 +53,12 @@ final class TermsTest {
         read(h, many + "a", many + "a");
         read(h, "  s " + many + "a", "-12");
         h.due("place", h.x.fault(0), 2);
+        StringBuilder most = new StringBuilder(" ");
+        for (int k = 0; k < 1000; k++) {
+            most.append("s ");
+        }
+        read(h, most + "a", "-12");
+        h.due("place", h.x.fault(0), 1);
         h.with("sort A B . op a : -> A . op b : -> B . op f : A -> A . op f : B -> B . var a : B .");
         read(h, "f ( b )", "f ( b )");
         read(h, "a", "-4");
