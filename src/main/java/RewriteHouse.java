@@ -275,7 +275,7 @@ public final class RewriteHouse {
         begin();
         int term = runner.restFrom(handles[h], 0);
         draft.openStates(term);
-        for (int k = 0; k < draft.size && counts.stop == 0; k++) {
+        for (int k = 0; k < Results.MOST_STATES && k < draft.size && counts.stop == 0; k++) {
             if (ways.listSteps(draft.term[k], Runner.ANY_LABEL) && !draft.addSteps(k, ways.stepTerm, ways.stepRule, ways.stepCount)) {
                 counts.halt(2);
             }
@@ -3719,7 +3719,7 @@ public final class RewriteHouse {
                 case STAR:
                 case BANG:
                     boolean good = addAnswer(base, term);
-                    for (int k = base; k < listTop && good; k++) {
+                    for (int k = base; k < base + MOST_LISTED && k < listTop && good; k++) {
                         int end = listTop;
                         good = answer(a, lists[k]);
                         ended[k] = listTop == end;
@@ -4074,6 +4074,8 @@ public final class RewriteHouse {
         private final Terms terms;
         private final Counts counts;
         private final int[] bind = new int[VARIABLES];
+        /** The variables that stand for something by now, as bits. */
+        private long bound;
         private final int[] trail = new int[VARIABLES + 1];
         private int trailTop;
         private final int[] goals = new int[MOST_GOALS * TWO];
@@ -4121,6 +4123,7 @@ public final class RewriteHouse {
         /** Two terms are to become one. */
         void open(int first, int second) {
             Arrays.fill(bind, -1);
+            bound = 0L;
             trailTop = 0;
             goalTop = 0;
             choiceTop = 0;
@@ -4154,6 +4157,7 @@ public final class RewriteHouse {
             int b = choices[choiceTop + 1];
             for (int n = trailTop; n > choices[choiceTop + 3]; n--) {
                 bind[trail[n - 1]] = -1;
+                bound &= ~(1L << trail[n - 1]);
             }
             trailTop = choices[choiceTop + 3];
             twos = choices[choiceTop + 4];
@@ -4237,6 +4241,7 @@ public final class RewriteHouse {
 
         private boolean put(int variable, int term) {
             bind[terms.head[variable]] = term;
+            bound |= 1L << terms.head[variable];
             trail[trailTop] = terms.head[variable];
             trailTop++;
             return true;
@@ -4273,11 +4278,12 @@ public final class RewriteHouse {
             for (int n = 0; n <= VARIABLES && terms.isVariable(at) && bind[terms.head[at]] >= 0; n++) {
                 at = bind[terms.head[at]];
             }
-            nodes++;
+            boolean stays = (terms.vars[at] & bound) == 0L;
+            nodes += stays ? terms.sizeOf(at) : 1;
             if (nodes > Terms.MOST_SIZE) {
                 return -1;
             }
-            if (terms.isVariable(at)) {
+            if (stays) {
                 return at;
             }
             int base = terms.argTop;
