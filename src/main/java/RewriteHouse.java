@@ -2282,7 +2282,7 @@ public final class RewriteHouse {
             return 0;
         }
 
-        /** A term with what stands for its variables (those without stay); -1: it is too big. */
+        /** A term with what its variables, all of them, stand for; -1: it is too big. */
         private int fill(int term, int[] values, int base) {
             if (vars[term] == 0L) {
                 return term;

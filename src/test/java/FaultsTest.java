@@ -193,6 +193,10 @@ final class FaultsTest {
         at(4, "sort A . var X : @B . var X : A .");
         at(3, "sort A . var X : A . var @X : B .");
         at(3, "sort A . @op _ : B -> A .");
+        // of 1 the first place counts, bytes and words alike
+        at(1, "@foo A . \001");
+        at(1, "sort A\001 . foo".replace("A", "A@"));
+        at(1, "sort A . @foo abcdefghijklmnopqrs");
         // 1 ahead of 3, 4; these ahead of 5; 5 ahead of 6
         at(1, "sort A A . op a : -> B . op @");
         at(4, "sort A . op g : A -> A [ comm ] . op h : -> @B .");
