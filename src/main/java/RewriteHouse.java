@@ -2511,7 +2511,6 @@ public final class RewriteHouse {
         private int found;
         private final int[] fresh = new int[VARIABLES + 2];
         private int root;
-        private int whole;
         /** The pattern may stand for a part of the row: from here on, and what it left of it. */
         private boolean open;
         private int aheadSize;
@@ -2519,12 +2518,21 @@ public final class RewriteHouse {
         /** The row of which items take some. */
         private final int[] line = new int[WIDEST];
         private int lineSize;
+        /** Of each operator the longest row in the term that was measured last. */
         private final int[] longest = new int[Theory.MOST_ROWS];
+        private int measured = -1;
 
         Matcher(Theory theory, Terms terms, Counts counts) {
             this.theory = theory;
             this.terms = terms;
             this.counts = counts;
+            Arrays.fill(bind, -1);
+        }
+
+        /** No list is kept, and no term has been measured. */
+        void begin() {
+            top = 0;
+            measured = -1;
         }
 
         /** How many numbers each matcher of a pattern has in a list. */
@@ -2537,19 +2545,22 @@ public final class RewriteHouse {
             if (!isAffordable(pattern, term)) {
                 return Counts.HALTED;
             }
-            found = 0;
-            root = pattern;
-            whole = term;
             boolean operator = !terms.isVariable(pattern);
             open = within && operator && theory.isAssoc(terms.operatorOf(pattern)) && terms.head[term] == terms.head[pattern];
             if (operator && terms.head[term] != terms.head[pattern] && theory.unit(terms.operatorOf(pattern)) < 0) {
                 return 0;
             }
-            long bound = known & terms.vars[pattern];
-            for (int v = 0; v < VARIABLES; v++) {
-                bind[v] = (bound >> v & 1L) != 0L ? values[at + v] : -1;
-            }
+            found = 0;
+            root = pattern;
             trailTop = 0;
+            long rest = known & terms.vars[pattern];
+            for (int v = 0; v < VARIABLES && rest != 0L; v++, rest >>>= 1) {
+                if ((rest & 1L) != 0L) {
+                    bind[v] = values[at + v];
+                    trail[trailTop] = v;
+                    trailTop++;
+                }
+            }
             goalTop = 0;
             choiceTop = 0;
             int goal = newGoal(pattern, term, WHOLE, 0, NIL);
@@ -2573,6 +2584,7 @@ public final class RewriteHouse {
                 goal = next != FAILS ? next : back();
                 alternative = next != FAILS ? 0 : more;
             }
+            unbind(0);
             if (can || counts.stop != 0 || !counts.addMatchers(found)) {
                 return counts.halt(4);
             }
@@ -2588,11 +2600,16 @@ public final class RewriteHouse {
             choiceTop -= CHOICE;
             more = choices[choiceTop + 1];
             goalTop = choices[choiceTop + 2];
-            for (int n = trailTop; n > choices[choiceTop + 3]; n--) {
+            unbind(choices[choiceTop + 3]);
+            return choices[choiceTop];
+        }
+
+        /** Variables that were bound since then stand for nothing any more. */
+        private void unbind(int mark) {
+            for (int n = trailTop; n > mark; n--) {
                 bind[trail[n - 1]] = -1;
             }
-            trailTop = choices[choiceTop + 3];
-            return choices[choiceTop];
+            trailTop = mark;
         }
 
         // what a list costs
@@ -2600,8 +2617,11 @@ public final class RewriteHouse {
         private boolean isAffordable(int pattern, int term) {
             long deals = 1L << terms.commRows(pattern);
             if (terms.assocRows(pattern) > 0) {
-                Arrays.fill(longest, 1);
-                measure(term);
+                if (measured != term) {
+                    Arrays.fill(longest, 1);
+                    measure(term);
+                    measured = term;
+                }
                 long rowDeals = dealsOf(pattern);
                 if (rowDeals < 0L) {
                     return counts.halt(3) >= 0;
@@ -2977,8 +2997,9 @@ public final class RewriteHouse {
         /** The matcher that was found stands in fresh then. */
         private void note() {
             int n = 0;
-            for (int v = 0; v < VARIABLES; v++) {
-                if ((terms.vars[root] >> v & 1L) != 0L) {
+            long rest = terms.vars[root];
+            for (int v = 0; v < VARIABLES && rest != 0L; v++, rest >>>= 1) {
+                if ((rest & 1L) != 0L) {
                     fresh[n] = bind[v];
                     n++;
                 }
@@ -2987,7 +3008,7 @@ public final class RewriteHouse {
             fresh[n + 1] = -1;
             if (open) {
                 int op = terms.operatorOf(root);
-                loadLine(op, whole);
+                loadLine(op, goals[TERM]);
                 boolean any = theory.isComm(op);
                 int behind = any ? left : (1 << lineSize) - (1 << left);
                 int ahead = any ? 0 : (1 << aheadSize) - 1;
@@ -3082,7 +3103,7 @@ public final class RewriteHouse {
         void begin() {
             now++;
             chainTop = 0;
-            matcher.top = 0;
+            matcher.begin();
             terms.argTop = 0;
         }
 
@@ -3270,8 +3291,9 @@ public final class RewriteHouse {
 
         private int loadValues(int pattern, int row, int slot) {
             int next = row;
-            for (int v = 0; v < VARIABLES; v++) {
-                if ((terms.vars[pattern] >> v & 1L) != 0L) {
+            long rest = terms.vars[pattern];
+            for (int v = 0; v < VARIABLES && rest != 0L; v++, rest >>>= 1) {
+                if ((rest & 1L) != 0L) {
                     values[slot * VARIABLES + v] = matcher.rows[next];
                     next++;
                 }
