@@ -423,6 +423,9 @@ public final class RewriteHouse {
         if (handleCount >= MOST_HANDLES) {
             return FULL;
         }
+        if (term < 0) {
+            return BAD;
+        }
         handles[handleCount] = term;
         handleCount++;
         return handleCount - 1;
