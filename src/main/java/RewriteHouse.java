@@ -9,7 +9,7 @@ public final class RewriteHouse {
     public static final int BAD = -1, NONE = -2, FULL = -3, DOUBT = -4;
 
     private static final int MOST_HANDLES = 200;
-    private static final int TIDY_ABOVE = 6000;
+    private static final int TIDY_ABOVE = 4000;
 
     private final Words words = new Words();
     private final Syntax syntax = new Syntax(words);
