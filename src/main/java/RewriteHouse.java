@@ -3530,7 +3530,9 @@ public final class RewriteHouse {
     static final class Ways {
         private static final int MOST_LISTED = 60, MOST_WORDS = 60, MOST_LIST_CELLS = 8192;
         private static final int OR = 0, THEN = 1, STAR = 2, BANG = 3, NOT = 4, ONE = 5, IDLE = 6, FAIL = 7, STEPS = 8;
-        private static final int FAULTY = -1;
+        /** What a bracket of a strategy is, if it is not behind NOT or ONE. */
+        private static final int PLAIN = 9, WHOLE = 10;
+        private static final int FAULTY = -1, AWAITED = -2;
 
         private final Syntax syntax;
         private final Theory theory;
@@ -3544,6 +3546,9 @@ public final class RewriteHouse {
         /** A strategy: for each node what it is, and one or two nodes (or a LABEL). */
         private final int[] nodes = new int[3 * (2 * MOST_WORDS + 2)];
         private int nodeTop;
+        /** The brackets that are open: what each is, and the nodes that stand in it so far: ahead of the last |, of the last ; */
+        private final int[] brackets = new int[3 * (MOST_WORDS + 2)];
+        private int bracketTop;
         /** The answers that are being worked out, list behind list; and whether a term had none. */
         final int[] lists = new int[MOST_LIST_CELLS];
         private final boolean[] ended = new boolean[MOST_LIST_CELLS];
@@ -3625,16 +3630,24 @@ public final class RewriteHouse {
 
         // strategies as texts
 
-        /** The tape as a strategy: its node, or FAULTY. */
+        /** The tape as a strategy: its node, or FAULTY. Brackets are kept in a row, so that no call stands open for each. */
         int readPlan() {
             syntax.open(false, MOST_WORDS);
             nodeTop = 0;
-            int plan = readChoice();
-            if (plan != FAULTY && syntax.word != Syntax.END) {
-                syntax.wrong();
+            bracketTop = 0;
+            int node = openBracket(WHOLE);
+            for (int n = 0; n <= MOST_WORDS && (node == AWAITED || (node >= 0 && syntax.word != Syntax.END)); n++) {
+                node = node == AWAITED ? readSingle() : readBehind(node);
+            }
+            if (node < 0) {
                 return FAULTY;
             }
-            return plan;
+            return brackets[bracketTop] == WHOLE ? joined(node) : faulty();
+        }
+
+        private int faulty() {
+            syntax.wrong();
+            return FAULTY;
         }
 
         private int newNode(int what, int a, int b) {
@@ -3649,58 +3662,73 @@ public final class RewriteHouse {
             return node;
         }
 
-        private int readChoice() {
-            int node = readSequence();
-            for (int n = 0; n <= MOST_WORDS && node != FAULTY && syntax.word == Words.OR; n++) {
-                node = syntax.take() ? newNode(OR, node, readSequence()) : FAULTY;
-            }
-            return node;
-        }
-
-        private int readSequence() {
-            int node = readRepeated();
-            for (int n = 0; n <= MOST_WORDS && node != FAULTY && syntax.word == Words.THEN; n++) {
-                node = syntax.take() ? newNode(THEN, node, readRepeated()) : FAULTY;
-            }
-            return node;
-        }
-
-        private int readRepeated() {
-            int node = readSingle();
-            for (int n = 0; n <= MOST_WORDS && node != FAULTY; n++) {
-                int word = syntax.word;
-                if (word != Words.STAR && word != Words.BANG) {
-                    return node;
-                }
-                node = syntax.take() ? newNode(word == Words.STAR ? STAR : BANG, node, 0) : FAULTY;
-            }
-            return node;
-        }
-
+        /** What one WORD is by itself; or AWAITED: behind a bracket that is opened. */
         private int readSingle() {
             int word = syntax.word;
             switch (word) {
                 case Words.IDLE: return syntax.take() ? newNode(IDLE, 0, 0) : FAULTY;
                 case Words.FAIL: return syntax.take() ? newNode(FAIL, 0, 0) : FAULTY;
                 case Words.ALL: return syntax.take() ? newNode(STEPS, 0, 0) : FAULTY;
-                case Words.NOT: return syntax.take() ? newNode(NOT, readBracketed(), 0) : FAULTY;
-                case Words.ONE: return syntax.take() ? newNode(ONE, readBracketed(), 0) : FAULTY;
-                case Words.OPEN: return readBracketed();
+                case Words.NOT: return syntax.take() && syntax.takeWord(Words.OPEN) ? openBracket(NOT) : FAULTY;
+                case Words.ONE: return syntax.take() && syntax.takeWord(Words.OPEN) ? openBracket(ONE) : FAULTY;
+                case Words.OPEN: return syntax.take() ? openBracket(PLAIN) : FAULTY;
                 default: break;
             }
             if (!syntax.isPlain() || !isLabel(word)) {
-                syntax.wrong();
-                return FAULTY;
+                return faulty();
             }
             return syntax.take() ? newNode(STEPS, word + 1, 0) : FAULTY;
         }
 
-        private int readBracketed() {
-            if (!syntax.takeWord(Words.OPEN)) {
+        /** What a node is with the WORD behind it; or AWAITED: another one has to come. */
+        private int readBehind(int node) {
+            switch (syntax.word) {
+                case Words.STAR: return syntax.take() ? newNode(STAR, node, 0) : FAULTY;
+                case Words.BANG: return syntax.take() ? newNode(BANG, node, 0) : FAULTY;
+                case Words.THEN:
+                    brackets[bracketTop + 2] = rowWith(node);
+                    return syntax.take() ? AWAITED : FAULTY;
+                case Words.OR:
+                    brackets[bracketTop + 1] = joined(node);
+                    brackets[bracketTop + 2] = AWAITED;
+                    return syntax.take() ? AWAITED : FAULTY;
+                case Words.CLOSE: return brackets[bracketTop] == WHOLE ? faulty() : closeBracket(node);
+                default: return faulty();
+            }
+        }
+
+        private int openBracket(int what) {
+            int at = what == WHOLE ? 0 : bracketTop + 3;
+            if (at + 3 > brackets.length) {
                 return FAULTY;
             }
-            int node = readChoice();
-            return node != FAULTY && syntax.takeWord(Words.CLOSE) ? node : FAULTY;
+            bracketTop = at;
+            brackets[at] = what;
+            brackets[at + 1] = AWAITED;
+            brackets[at + 2] = AWAITED;
+            return AWAITED;
+        }
+
+        private int closeBracket(int node) {
+            int what = brackets[bracketTop];
+            int inside = joined(node);
+            bracketTop -= 3;
+            if (!syntax.take()) {
+                return FAULTY;
+            }
+            return what == PLAIN ? inside : newNode(what, inside, 0);
+        }
+
+        /** The row with ; between that a node ends. */
+        private int rowWith(int node) {
+            int row = brackets[bracketTop + 2];
+            return row < 0 ? node : newNode(THEN, row, node);
+        }
+
+        /** All that stands in the bracket, which a node ends. */
+        private int joined(int node) {
+            int choice = brackets[bracketTop + 1];
+            return choice < 0 ? rowWith(node) : newNode(OR, choice, rowWith(node));
         }
 
         private boolean isLabel(int name) {
