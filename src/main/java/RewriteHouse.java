@@ -16,8 +16,7 @@ public final class RewriteHouse {
     private final Theory theory = new Theory();
     private final Terms terms = new Terms(theory);
     private final Language language = new Language(syntax, theory, terms);
-    private final Loader loader = new Loader(syntax, theory, terms, language);
-    private final Counts counts = new Counts();
+    private final Counts counts = new Counts(theory, terms);
     private final Matcher matcher = new Matcher(theory, terms, counts);
     private final Runner runner = new Runner(theory, terms, matcher, counts);
     private final Ways ways = new Ways(syntax, theory, terms, runner);
@@ -64,10 +63,10 @@ public final class RewriteHouse {
         judge.restart();
         pairing.restart();
         language.forgetPrinted();
-        loader.clear();
-        boolean good = syntax.readModule() && loader.load();
+        language.clear();
+        boolean good = syntax.readModule() && language.load();
         if (!good) {
-            loader.clear();
+            language.clear();
         }
         keepFault(good);
         words.length = 0;
@@ -102,7 +101,7 @@ public final class RewriteHouse {
 
     public int term() {
         tidy();
-        int found = loader.readTape();
+        int found = language.readTape();
         boolean good = found >= 0 || syntax.faultCode == Language.DOUBTFUL;
         keepFault(good);
         words.length = 0;
@@ -1253,8 +1252,14 @@ public final class RewriteHouse {
         }
     }
 
-    /** Makes a module of a text, and a term of a row of words. */
-    static final class Loader {
+    /** What texts say: makes a module of a text, a term of a row of words, and a text of a term. */
+    static final class Language {
+        static final int ANY_KIND = -1, NO_READING = 6, DOUBTFUL = 7;
+        private static final int SIDE = Syntax.LONGEST_ROW + 1, FIRST_ENTRIES = 2048, MOST_ENTRIES = 65536, MOST_PRINTED = 12000;
+        /** Readings are told by operator, or, if they are a variable or in brackets, by KIND from here on. */
+        private static final int ATOM = Theory.MOST_ROWS;
+        /** An entry has how many readings there are (one, or two for more), their KIND, STRENGTH, and what they are. */
+        private static final int KIND_SHIFT = 2, STRENGTH_SHIFT = 7, WHAT_SHIFT = 14, MANY = 3, KIND = 31, STRENGTH = 127;
         private static final int NOT_SO = -1;
         /** Which ATTRIBUTES a row tells, and one twice. */
         private static final int TELLS_ID = 4, TELLS_PREC = 8, TELLS_GATHER = 16, TWICE = 32;
@@ -1264,7 +1269,16 @@ public final class RewriteHouse {
         private final Words words;
         private final Theory theory;
         private final Terms terms;
-        private final Language language;
+        private int first;
+        /** For each stretch of words the entries of its readings. */
+        private final int[] spanFrom = new int[SIDE * SIDE];
+        private final int[] spanTo = new int[SIDE * SIDE];
+        private int[] entries = new int[FIRST_ENTRIES];
+        private int entryTop;
+        private final int[] ofKind = new int[Theory.MOST_SORTS];
+        final byte[] printed = new byte[MOST_PRINTED];
+        int printedSize;
+        private int printedTerm = -1;
         private final int[] form = new int[Theory.MOST_FORM + 1];
         /** The ATTRIBUTES of each row of op, and where the row stands. */
         private final int[] lists = new int[Theory.MOST_ROWS * LISTS];
@@ -1272,12 +1286,11 @@ public final class RewriteHouse {
         private int foundCode;
         private int foundPlace;
 
-        Loader(Syntax syntax, Theory theory, Terms terms, Language language) {
+        Language(Syntax syntax, Theory theory, Terms terms) {
             this.syntax = syntax;
             this.words = syntax.words;
             this.theory = theory;
             this.terms = terms;
-            this.language = language;
         }
 
         /** A module of nothing. */
@@ -1310,7 +1323,7 @@ public final class RewriteHouse {
                 syntax.wrong();
                 return -1;
             }
-            return language.read(0, to, Language.ANY_KIND);
+            return read(0, to, ANY_KIND);
         }
 
         private int get(int s, int what) {
@@ -1697,7 +1710,7 @@ public final class RewriteHouse {
         // equations and rules
 
         private boolean readSides(int s, int word) {
-            int left = language.read(get(s, Syntax.FROM), get(s, Syntax.TO), Language.ANY_KIND);
+            int left = read(get(s, Syntax.FROM), get(s, Syntax.TO), ANY_KIND);
             if (left < 0) {
                 return false;
             }
@@ -1716,7 +1729,7 @@ public final class RewriteHouse {
                 theory.parts++;
             }
             int from = get(s, Syntax.RIGHT_FROM);
-            int right = language.read(from, get(s, Syntax.RIGHT_TO), terms.kindOf(left));
+            int right = read(from, get(s, Syntax.RIGHT_TO), terms.kindOf(left));
             if (right < 0 || !isKnown(right, known, from)) {
                 return false;
             }
@@ -1747,13 +1760,13 @@ public final class RewriteHouse {
             int from = syntax.parts[p + Syntax.T_FROM];
             int uFrom = syntax.parts[p + Syntax.U_FROM];
             int sort = sign == Words.COLON ? theory.sortOf(words.name[uFrom]) : -1;
-            int t = language.read(from, syntax.parts[p + Syntax.T_TO], sort < 0 ? Language.ANY_KIND : theory.kindOf[sort]);
+            int t = read(from, syntax.parts[p + Syntax.T_TO], sort < 0 ? ANY_KIND : theory.kindOf[sort]);
             if (t < 0 || (sign != Words.TAKES && !isKnown(t, known, from))) {
                 return false;
             }
             int u = sort;
             if (sign != Words.COLON) {
-                u = language.read(uFrom, syntax.parts[p + Syntax.U_TO], terms.kindOf(t));
+                u = read(uFrom, syntax.parts[p + Syntax.U_TO], terms.kindOf(t));
                 if (u < 0 || !isKnown(u, known, uFrom)) {
                     return false;
                 }
@@ -1764,38 +1777,8 @@ public final class RewriteHouse {
             theory.part[at + Theory.KNOWN] = (int) known;
             return true;
         }
-    }
 
-    /** Reads rows of words as terms, and prints terms. */
-    static final class Language {
-        static final int ANY_KIND = -1, NO_READING = 6, DOUBTFUL = 7;
-        private static final int SIDE = Syntax.LONGEST_ROW + 1, FIRST_ENTRIES = 2048, MOST_ENTRIES = 65536, MOST_PRINTED = 12000;
-        /** Readings are told by operator, or, if they are a variable or in brackets, by KIND from here on. */
-        private static final int ATOM = Theory.MOST_ROWS;
-        /** An entry has how many readings there are (one, or two for more), their KIND, STRENGTH, and what they are. */
-        private static final int KIND_SHIFT = 2, STRENGTH_SHIFT = 7, WHAT_SHIFT = 14, MANY = 3, KIND = 31, STRENGTH = 127;
-
-        private final Syntax syntax;
-        private final Words words;
-        private final Theory theory;
-        private final Terms terms;
-        private int first;
-        /** For each stretch of words the entries of its readings. */
-        private final int[] spanFrom = new int[SIDE * SIDE];
-        private final int[] spanTo = new int[SIDE * SIDE];
-        private int[] entries = new int[FIRST_ENTRIES];
-        private int entryTop;
-        private final int[] ofKind = new int[Theory.MOST_SORTS];
-        final byte[] printed = new byte[MOST_PRINTED];
-        int printedSize;
-        private int printedTerm = -1;
-
-        Language(Syntax syntax, Theory theory, Terms terms) {
-            this.syntax = syntax;
-            this.words = syntax.words;
-            this.theory = theory;
-            this.terms = terms;
-        }
+        // terms
 
         /** The term that a row of words is, of a KIND or of any; or -1, with a fault. */
         int read(int from, int to, int kind) {
@@ -2356,6 +2339,39 @@ public final class RewriteHouse {
             return made;
         }
 
+        /** All terms in a term, each once, by number: how many. */
+        int collect(int term, int[] list) {
+            list[0] = term;
+            int many = 1;
+            for (int k = 0; k < many; k++) {
+                for (int i = 0; i < rowSize(list[k]); i++) {
+                    int inner = rowAt(list[k], i);
+                    if (indexOf(list, many, inner) < 0 && many < list.length) {
+                        list[many] = inner;
+                        many++;
+                    }
+                }
+            }
+            for (int k = 1; k < many; k++) {
+                for (int i = k; i > 0 && list[i - 1] > list[i]; i--) {
+                    int other = list[i];
+                    list[i] = list[i - 1];
+                    list[i - 1] = other;
+                }
+            }
+            return many;
+        }
+
+        /** Where a term stands in the first of a list, or -1. */
+        static int indexOf(int[] list, int many, int term) {
+            for (int k = 0; k < many; k++) {
+                if (list[k] == term) {
+                    return k;
+                }
+            }
+            return -1;
+        }
+
         // making room
 
         /** All terms from this number on go; none of them may be needed. */
@@ -2433,13 +2449,24 @@ public final class RewriteHouse {
         static final int MOST_STEPS = 600, MOST_MATCHERS = 6000, MOST_FILLED = 4000;
         static final int MOST_DEALS = 300000, MOST_DEALS_OF_PAIRS = 3000000;
         static final int HALTED = -1;
+        private static final long VERY_MANY = 4000000L;
 
+        private final Theory theory;
+        private final Terms terms;
         int steps;
         private int matchers;
         private int filled;
         private long deals;
         private int mostDeals;
         int stop;
+        /** Of each operator the longest row in the term that was measured last. */
+        private final int[] longest = new int[Theory.MOST_ROWS];
+        private int measured = -1;
+
+        Counts(Theory theory, Terms terms) {
+            this.theory = theory;
+            this.terms = terms;
+        }
 
         void begin(int most) {
             deals = 0L;
@@ -2448,11 +2475,12 @@ public final class RewriteHouse {
             beginAnew();
         }
 
-        /** All but the deals begins anew. */
+        /** All but the deals begins anew; and no term has been measured. */
         void beginAnew() {
             steps = 0;
             matchers = 0;
             filled = 0;
+            measured = -1;
         }
 
         int halt(int code) {
@@ -2472,7 +2500,7 @@ public final class RewriteHouse {
             return matchers <= MOST_MATCHERS || halt(4) >= 0;
         }
 
-        boolean addDeals(long many) {
+        private boolean addDeals(long many) {
             deals += many;
             return deals <= mostDeals || halt(4) >= 0;
         }
@@ -2481,144 +2509,12 @@ public final class RewriteHouse {
             filled += many;
             return filled <= MOST_FILLED || halt(7) >= 0;
         }
-    }
-
-    /** Lists all matchers of a pattern and a term. */
-    static final class Matcher {
-        static final int MOST_LISTED = 200, WIDEST = 6;
-        private static final int VARIABLES = 60, FIRST_CELLS = 8192, MOST_CELLS = 262144, MOST_WORK = 5000000;
-        private static final long VERY_MANY = 4000000L;
-        private static final int NIL = -1, FAILS = -2;
-        /** A goal: a pattern that is to become a term, or the rest of a pattern's row to become a rest of a row. */
-        private static final int PATTERN = 0, TERM = 1, ITEMS = 2, REST = 3, NEXT = 4, GOAL = 5, MOST_GOALS = 800;
-        /** ITEMS tells how many items of the pattern's row are left; or that the term counts as a whole, or in part. */
-        private static final int WHOLE = -1, PART_OF = -2;
-        /** A choice that was left open: its goal, the next thing to try, and what was there before it. */
-        private static final int CHOICE = 4, MOST_CHOICES = 400;
-
-        private final Theory theory;
-        private final Terms terms;
-        private final Counts counts;
-        private final int[] bind = new int[VARIABLES];
-        private final int[] trail = new int[VARIABLES + 1];
-        private int trailTop;
-        private final int[] goals = new int[MOST_GOALS * GOAL];
-        private int goalTop;
-        private final int[] choices = new int[MOST_CHOICES * CHOICE];
-        private int choiceTop;
-        /** The next alternative of the goal that was just tried, or -1. */
-        private int more;
-        /** Lists stand one behind the other: of each matcher its terms by variables, what is ahead, behind. */
-        int[] rows = new int[FIRST_CELLS];
-        int top;
-        private int found;
-        private final int[] fresh = new int[VARIABLES + 2];
-        private int root;
-        /** The pattern may stand for a part of the row: from here on, and what it left of it. */
-        private boolean open;
-        private int aheadSize;
-        private int left;
-        /** The row of which items take some. */
-        private final int[] line = new int[WIDEST];
-        private int lineSize;
-        /** Of each operator the longest row in the term that was measured last. */
-        private final int[] longest = new int[Theory.MOST_ROWS];
-        private int measured = -1;
-
-        Matcher(Theory theory, Terms terms, Counts counts) {
-            this.theory = theory;
-            this.terms = terms;
-            this.counts = counts;
-            Arrays.fill(bind, -1);
-        }
-
-        /** No list is kept, and no term has been measured. */
-        void begin() {
-            top = 0;
-            measured = -1;
-        }
-
-        /** How many numbers each matcher of a pattern has in a list. */
-        int widthOf(int pattern) {
-            return Long.bitCount(terms.vars[pattern]) + 2;
-        }
-
-        /** Lists matchers from top on, with what known variables stand for: how many; -1: stopped. */
-        int list(int pattern, int term, boolean within, long known, int[] values, int at) {
-            if (!isAffordable(pattern, term)) {
-                return Counts.HALTED;
-            }
-            boolean operator = !terms.isVariable(pattern);
-            open = within && operator && theory.isAssoc(terms.operatorOf(pattern)) && terms.head[term] == terms.head[pattern];
-            if (operator && terms.head[term] != terms.head[pattern] && theory.unit(terms.operatorOf(pattern)) < 0) {
-                return 0;
-            }
-            found = 0;
-            root = pattern;
-            trailTop = 0;
-            long rest = known & terms.vars[pattern];
-            for (int v = 0; v < VARIABLES && rest != 0L; v++, rest >>>= 1) {
-                if ((rest & 1L) != 0L) {
-                    bind[v] = values[at + v];
-                    trail[trailTop] = v;
-                    trailTop++;
-                }
-            }
-            goalTop = 0;
-            choiceTop = 0;
-            int goal = newGoal(pattern, term, WHOLE, 0, NIL);
-            int alternative = 0;
-            boolean can = true;
-            for (int work = 0; work < MOST_WORK && can && counts.stop == 0; work++) {
-                int goalMark = goalTop;
-                int trailMark = trailTop;
-                more = -1;
-                int next = FAILS;
-                if (goal == NIL) {
-                    note();
-                    insert(widthOf(pattern));
-                } else {
-                    next = advance(goal, alternative);
-                }
-                if (more >= 0) {
-                    addChoice(goal, goalMark, trailMark);
-                }
-                can = next != FAILS || choiceTop > 0;
-                goal = next != FAILS ? next : back();
-                alternative = next != FAILS ? 0 : more;
-            }
-            unbind(0);
-            if (can || counts.stop != 0 || !counts.addMatchers(found)) {
-                return counts.halt(4);
-            }
-            top += found * widthOf(pattern);
-            return found;
-        }
-
-        /** Back to the choice that was left open last: its goal; more is what is to be tried then. */
-        private int back() {
-            if (choiceTop == 0) {
-                return FAILS;
-            }
-            choiceTop -= CHOICE;
-            more = choices[choiceTop + 1];
-            goalTop = choices[choiceTop + 2];
-            unbind(choices[choiceTop + 3]);
-            return choices[choiceTop];
-        }
-
-        /** Variables that were bound since then stand for nothing any more. */
-        private void unbind(int mark) {
-            for (int n = trailTop; n > mark; n--) {
-                bind[trail[n - 1]] = -1;
-            }
-            trailTop = mark;
-        }
 
         // what a list costs
 
-        private boolean isAffordable(int pattern, int term) {
-            long deals = 1L << terms.commRows(pattern);
+        /** WIDE, then the DEALS of a list are looked at, ahead of it. */
+        boolean addList(int pattern, int term) {
+            long cost = 1L << terms.commRows(pattern);
             if (terms.assocRows(pattern) > 0) {
                 if (measured != term) {
                     Arrays.fill(longest, 1);
@@ -2627,11 +2523,11 @@ public final class RewriteHouse {
                 }
                 long rowDeals = dealsOf(pattern);
                 if (rowDeals < 0L) {
-                    return counts.halt(3) >= 0;
+                    return halt(3) >= 0;
                 }
-                deals = Math.min(deals * rowDeals, VERY_MANY);
+                cost = Math.min(cost * rowDeals, VERY_MANY);
             }
-            return counts.addDeals(deals);
+            return addDeals(cost);
         }
 
         private void measure(int term) {
@@ -2657,7 +2553,7 @@ public final class RewriteHouse {
             int op = terms.operatorOf(pattern);
             long deals = 1L;
             if (theory.isAssoc(op)) {
-                if (longest[op] > WIDEST) {
+                if (longest[op] > Matcher.WIDEST) {
                     return -1L;
                 }
                 deals = theory.isComm(op) ? power(many + 1, longest[op]) : waysInRow(longest[op], many);
@@ -2688,19 +2584,178 @@ public final class RewriteHouse {
             }
             return ways;
         }
+    }
+
+    /** Lists all matchers of a pattern and a term. */
+    static final class Matcher {
+        static final int MOST_LISTED = 200, WIDEST = 6;
+        private static final int VARIABLES = 60, FIRST_CELLS = 8192, MOST_CELLS = 262144;
+        /** Far above what any list needs: one that takes LONG_WORK looks ahead, and is not led astray any more. */
+        private static final int MOST_WORK = 2000000000, LONG_WORK = 2000;
+        private static final int NIL = -1, FAILS = -2;
+        /** A goal: a pattern that is to become a term, or the rest of a pattern's row to become a rest of a row. */
+        private static final int PATTERN = 0, TERM = 1, ITEMS = 2, REST = 3, NEXT = 4, GOAL = 5, MOST_GOALS = 800;
+        /** ITEMS tells how many items of the pattern's row are left; or that the term counts as a whole, or in part. */
+        private static final int WHOLE = -1, PART_OF = -2;
+        /** A choice that was left open: its goal, the next thing to try (or -1), and what was there before it. */
+        private static final int UNTRIED = 1, GOALS = 2, BOUND = 3, FOUND = 4, WORK = 5, CHOICE = 6, MOST_CHOICES = 400;
+        /** A dead end is kept if it took so much to see that it is one. */
+        private static final int WORTH_KEEPING = 16;
+
+        private final Theory theory;
+        private final Terms terms;
+        private final Counts counts;
+        private final Outlook outlook;
+        private final int[] bind = new int[VARIABLES];
+        private final int[] trail = new int[VARIABLES + 1];
+        private int trailTop;
+        private final int[] goals = new int[MOST_GOALS * GOAL];
+        private int goalTop;
+        private final int[] choices = new int[MOST_CHOICES * CHOICE];
+        private int choiceTop;
+        /** The next alternative of the goal that was just tried, or -1. */
+        private int more;
+        /** Lists stand one behind the other: of each matcher its terms by variables, what is ahead, behind. */
+        int[] rows = new int[FIRST_CELLS];
+        int top;
+        private int found;
+        private final int[] fresh = new int[VARIABLES + 2];
+        private int root;
+        /** The pattern may stand for a part of the row: from here on, and what it left of it. */
+        private boolean open;
+        private int aheadSize;
+        private int left;
+        /** The row of which items take some. */
+        private final int[] line = new int[WIDEST];
+        private int lineSize;
+
+        Matcher(Theory theory, Terms terms, Counts counts) {
+            this.theory = theory;
+            this.terms = terms;
+            this.counts = counts;
+            this.outlook = new Outlook(theory, terms);
+            Arrays.fill(bind, -1);
+        }
+
+        /** No list is kept. */
+        void begin() {
+            top = 0;
+        }
+
+        /** How many numbers each matcher of a pattern has in a list. */
+        int widthOf(int pattern) {
+            return Long.bitCount(terms.vars[pattern]) + 2;
+        }
+
+        /** Lists matchers from top on, with what known variables stand for: how many; -1: stopped. */
+        int list(int pattern, int term, boolean within, long known, int[] values, int at) {
+            if (!counts.addList(pattern, term)) {
+                return Counts.HALTED;
+            }
+            boolean operator = !terms.isVariable(pattern);
+            open = within && operator && theory.isAssoc(terms.operatorOf(pattern)) && terms.head[term] == terms.head[pattern];
+            if (operator && terms.head[term] != terms.head[pattern] && theory.unit(terms.operatorOf(pattern)) < 0) {
+                return 0;
+            }
+            int goal = firstGoal(pattern, term, known, values, at);
+            int alternative = 0;
+            for (int work = 0; work < MOST_WORK && goal != FAILS && counts.stop == 0; work++) {
+                int goalMark = goalTop;
+                int trailMark = trailTop;
+                more = -1;
+                int next = FAILS;
+                if (goal == NIL) {
+                    note();
+                    insert(widthOf(pattern));
+                } else {
+                    next = advance(goal, alternative);
+                }
+                if (alternative > 0) {
+                    keepUntried();
+                } else if (more >= 0 && work >= LONG_WORK && isHopeless(goal)) {
+                    next = FAILS;
+                } else if (more >= 0) {
+                    addChoice(goal, goalMark, trailMark, work);
+                }
+                goal = next == FAILS ? back(work) : next;
+                alternative = next == FAILS ? more : 0;
+            }
+            unbind(0);
+            if (goal != FAILS || counts.stop != 0 || !counts.addMatchers(found)) {
+                return counts.halt(4);
+            }
+            top += found * widthOf(pattern);
+            return found;
+        }
+
+        /** A pattern is to become a term; known variables stand for something already. */
+        private int firstGoal(int pattern, int term, long known, int[] values, int at) {
+            found = 0;
+            root = pattern;
+            aheadSize = 0;
+            goalTop = 0;
+            choiceTop = 0;
+            trailTop = 0;
+            outlook.close();
+            long rest = known & terms.vars[pattern];
+            for (int v = 0; v < VARIABLES && rest != 0L; v++, rest >>>= 1) {
+                if ((rest & 1L) != 0L) {
+                    bind[v] = values[at + v];
+                    trail[trailTop] = v;
+                    trailTop++;
+                }
+            }
+            return newGoal(pattern, term, WHOLE, 0, NIL);
+        }
+
+        /** Back to the last choice with something untried: its goal; more is what is to be tried then. */
+        private int back(int work) {
+            for (int c = choiceTop - CHOICE; c >= 0; c -= CHOICE) {
+                goalTop = choices[c + GOALS];
+                unbind(choices[c + BOUND]);
+                more = choices[c + UNTRIED];
+                if (more >= 0) {
+                    return choices[c];
+                }
+                choiceTop = c;
+                // no two ways lead to the same matcher: if there are no more than before, all ways from there failed
+                if (work >= LONG_WORK && found == choices[c + FOUND] && work - choices[c + WORK] >= WORTH_KEEPING) {
+                    writeState(choices[c]);
+                    outlook.keepDeadEnd();
+                }
+            }
+            return FAILS;
+        }
+
+        /** Variables that were bound since then stand for nothing any more. */
+        private void unbind(int mark) {
+            for (int n = trailTop; n > mark; n--) {
+                bind[trail[n - 1]] = -1;
+            }
+            trailTop = mark;
+        }
 
         // solving
 
-        private void addChoice(int goal, int goalMark, int trailMark) {
+        private void addChoice(int goal, int goalMark, int trailMark, int work) {
             if (choiceTop + CHOICE > choices.length) {
                 counts.halt(4);
                 return;
             }
             choices[choiceTop] = goal;
-            choices[choiceTop + 1] = more;
-            choices[choiceTop + 2] = goalMark;
-            choices[choiceTop + 3] = trailMark;
+            choices[choiceTop + UNTRIED] = more;
+            choices[choiceTop + GOALS] = goalMark;
+            choices[choiceTop + BOUND] = trailMark;
+            choices[choiceTop + FOUND] = found;
+            choices[choiceTop + WORK] = work;
             choiceTop += CHOICE;
+        }
+
+        /** What is left to be tried of the choice to which it went back. */
+        private void keepUntried() {
+            if (choiceTop >= CHOICE) {
+                choices[choiceTop - CHOICE + UNTRIED] = more;
+            }
         }
 
         private int newGoal(int pattern, int term, int items, int rest, int next) {
@@ -2757,9 +2812,23 @@ public final class RewriteHouse {
                 more = alternative == 0 && terms.rowAt(t, 0) != terms.rowAt(t, 1) ? 1 : -1;
                 return twoGoals(p, terms.rowAt(t, alternative), terms.rowAt(t, 1 - alternative), next);
             }
+            return rowGoals(p, t, next);
+        }
+
+        /** What leaves fewer choices comes first: variables, and what has none; rows of assoc operators come last. */
+        private int rankOf(int pattern) {
+            return terms.isVariable(pattern) || terms.vars[pattern] == 0L ? 0 : terms.assocRows(pattern) == 0 ? 1 : 2;
+        }
+
+        /** The terms in a pattern's row are to become those in a row of a term. */
+        private int rowGoals(int p, int t, int next) {
             int list = next;
-            for (int k = terms.rowSize(p) - 1; k >= 0 && list != FAILS; k--) {
-                list = newGoal(terms.rowAt(p, k), terms.rowAt(t, k), WHOLE, 0, list);
+            for (int rank = 2; rank >= 0; rank--) {
+                for (int k = terms.rowSize(p) - 1; k >= 0 && list != FAILS; k--) {
+                    if (rankOf(terms.rowAt(p, k)) == rank) {
+                        list = newGoal(terms.rowAt(p, k), terms.rowAt(t, k), WHOLE, 0, list);
+                    }
+                }
             }
             return list;
         }
@@ -2779,8 +2848,9 @@ public final class RewriteHouse {
         }
 
         private int twoGoals(int p, int first, int second, int next) {
-            int list = newGoal(terms.rowAt(p, 1), second, WHOLE, 0, next);
-            return list == FAILS ? FAILS : newGoal(terms.rowAt(p, 0), first, WHOLE, 0, list);
+            int ahead = rankOf(terms.rowAt(p, 0)) <= rankOf(terms.rowAt(p, 1)) ? 0 : 1;
+            int list = newGoal(terms.rowAt(p, 1 - ahead), ahead == 0 ? second : first, WHOLE, 0, next);
+            return list == FAILS ? FAILS : newGoal(terms.rowAt(p, ahead), ahead == 0 ? first : second, WHOLE, 0, list);
         }
 
         /** A row of two whose operator has an id, but is not assoc: in this order, turned, or one of them is the id. */
@@ -2791,7 +2861,7 @@ public final class RewriteHouse {
             if (now == 0 && terms.head[t] != terms.head[p]) {
                 now = 2;
             }
-            if (now == 1 && !theory.isComm(op)) {
+            if (now == 1 && (!theory.isComm(op) || terms.rowAt(t, 0) == terms.rowAt(t, 1))) {
                 now = 2;
             }
             more = now < 2 ? now + 1 : now == 2 && t != id ? 3 : -1;
@@ -2995,6 +3065,72 @@ public final class RewriteHouse {
             return n == 1 ? terms.row[0] : terms.intern(op + Terms.OPERATOR, n);
         }
 
+        // looking ahead
+
+        /** Whether the state in which a goal is met is seen to lead to no matcher. */
+        private boolean isHopeless(int goal) {
+            writeState(goal);
+            if (outlook.isDeadEnd()) {
+                return true;
+            }
+            outlook.open(root, goals[TERM]);
+            outlook.tell(bind);
+            for (int g = goal, n = 0; g != NIL && n < MOST_GOALS; g = goals[g + NEXT], n++) {
+                if (!couldBeMet(g)) {
+                    return true;
+                }
+            }
+            return false;
+        }
+
+        private boolean couldBeMet(int goal) {
+            int p = goals[goal + PATTERN];
+            int t = goals[goal + TERM];
+            int items = goals[goal + ITEMS];
+            boolean openHere = open && p == root;
+            if (items == WHOLE) {
+                return openHere || outlook.allows(p, t);
+            }
+            if (items < 0) {
+                return outlook.allowsPart(p, t, PART_OF - items, goals[goal + REST]);
+            }
+            return outlook.allowsRow(p, t, items, goals[goal + REST], openHere);
+        }
+
+        /** The state in which a goal is met: all goals that are left, and what their variables stand for. */
+        private void writeState(int goal) {
+            outlook.openState();
+            long vars = 0L;
+            for (int g = goal, n = 0; g != NIL && n < MOST_GOALS; g = goals[g + NEXT], n++) {
+                outlook.put(goals[g + PATTERN]);
+                outlook.put(goals[g + TERM]);
+                outlook.put(goals[g + ITEMS]);
+                outlook.put(goals[g + REST]);
+                vars |= varsLeft(g);
+            }
+            outlook.put(aheadSize);
+            for (int v = 0; v < VARIABLES && vars != 0L; v++, vars >>>= 1) {
+                if ((vars & 1L) != 0L) {
+                    outlook.put(bind[v]);
+                }
+            }
+        }
+
+        /** The variables of what is left to do of a goal. */
+        private long varsLeft(int goal) {
+            int p = goals[goal + PATTERN];
+            int items = goals[goal + ITEMS];
+            if (items < 0) {
+                return terms.vars[p];
+            }
+            int from = theory.isComm(terms.operatorOf(p)) ? 0 : terms.rowSize(p) - items;
+            long vars = 0L;
+            for (int k = from; k < from + items; k++) {
+                vars |= terms.vars[terms.rowAt(p, k)];
+            }
+            return vars;
+        }
+
         // the list
 
         /** The matcher that was found stands in fresh then. */
@@ -3067,6 +3203,393 @@ public final class RewriteHouse {
             int many = a < 0 ? 0 : terms.head[a] == terms.head[root] ? terms.rowSize(a) : 1;
             int others = b < 0 ? 0 : terms.head[b] == terms.head[root] ? terms.rowSize(b) : 1;
             return many != others ? Integer.compare(many, others) : terms.compare(a, b);
+        }
+    }
+
+    /**
+     * Sees of a list that takes long that states lead to no matcher: those that led to none before, and those with goals
+     * that could not be met, even if each place of a variable that stands for nothing could have a term of its own.
+     */
+    static final class Outlook {
+        private static final int MOST_TARGETS = 64, MOST_ROWS = 20, PARTS = 64, WIDTH = 1 + MOST_ROWS, HOLES = 3;
+        /** A dead end: the next one of its chain, its size, then the state. */
+        private static final int STATE = 2, LONGEST_STATE = 512, CHAINS = 1024, FIRST_ENDS = 2048, MOST_ENDS = 262144;
+
+        private final Theory theory;
+        private final Terms terms;
+        /** All terms in the pattern by number, so that those in a row come ahead of it; and where those in their rows stand. */
+        private final int[] list = new int[Terms.MOST_SIZE];
+        private int size;
+        private final int[] inner = new int[Terms.MOST_SIZE];
+        private final int[] innerAt = new int[Terms.MOST_SIZE + 1];
+        /** What they could become: terms in the term, ids of operators in the pattern; and where those in their rows stand. */
+        private final int[] targets = new int[MOST_TARGETS];
+        private int targetCount;
+        private final int[] targetInner = new int[MOST_TARGETS * HOLES];
+        /** For each term in the pattern the target that is the id of its operator, or -1. */
+        private final int[] unitAt = new int[Terms.MOST_SIZE];
+        /** The targets that are rows of assoc operators; for their parts, as bits, the terms that they are, and the targets; or -1. */
+        private final int[] rows = new int[MOST_ROWS];
+        private int rowCount;
+        private final int[] parts = new int[MOST_ROWS * PARTS];
+        private final int[] partAt = new int[MOST_ROWS * PARTS];
+        /** For each term in the pattern which targets it could be, as bits, then which parts of each row; if variables stand for nothing. */
+        private final long[] may = new long[Terms.MOST_SIZE * WIDTH];
+        private final long[] free = new long[Terms.MOST_SIZE * WIDTH];
+        /** For each part those that can be taken besides it, as bits; then those that can stand ahead of it. */
+        private final long[] beside = new long[2 * PARTS];
+        /** Where chains of dead ends begin, then one behind the other up to endTop (0: there is none yet), then a state. */
+        private int[] ends = new int[FIRST_ENDS];
+        private int endTop;
+        private int stateSize;
+
+        Outlook(Theory theory, Terms terms) {
+            this.theory = theory;
+            this.terms = terms;
+            for (int part = 0; part < PARTS; part++) {
+                for (int other = 0; other < PARTS; other++) {
+                    boolean ahead = part == 0 || other == 0 || other + (other & -other) == (part & -part);
+                    beside[part] |= (part & other) == 0 ? 1L << other : 0L;
+                    beside[PARTS + part] |= ahead ? 1L << other : 0L;
+                }
+            }
+        }
+
+        /** Another list begins. */
+        void close() {
+            size = 0;
+            endTop = 0;
+        }
+
+        /** The pattern and the term of a list, unless they are known already. */
+        void open(int pattern, int term) {
+            if (size > 0) {
+                return;
+            }
+            size = terms.collect(pattern, list);
+            targetCount = terms.collect(term, targets);
+            for (int k = 0; k < size; k++) {
+                unitAt[k] = terms.isVariable(list[k]) ? -1 : unitTarget(theory.unit(terms.operatorOf(list[k])));
+            }
+            tellInner();
+            rowCount = 0;
+            for (int i = 0; i < targetCount; i++) {
+                addRow(i);
+            }
+            for (int k = 0; k < size; k++) {
+                if (terms.isVariable(list[k])) {
+                    tellFree(k);
+                } else if (terms.vars[list[k]] == 0L) {
+                    tellValue(k, list[k]);
+                }
+            }
+        }
+
+        private int unitTarget(int op) {
+            int id = op < 0 ? -1 : terms.intern(op + Terms.OPERATOR, 0);
+            int index = id < 0 ? -1 : Terms.indexOf(targets, targetCount, id);
+            if (id >= 0 && index < 0 && targetCount < MOST_TARGETS) {
+                index = targetCount;
+                targets[targetCount] = id;
+                targetCount++;
+            }
+            return index;
+        }
+
+        private void tellInner() {
+            int n = 0;
+            for (int k = 0; k < size; k++) {
+                innerAt[k] = n;
+                for (int j = 0; j < terms.rowSize(list[k]) && n < inner.length; j++) {
+                    inner[n] = Math.max(Terms.indexOf(list, size, terms.rowAt(list[k], j)), 0);
+                    n++;
+                }
+            }
+            innerAt[size] = n;
+            for (int i = 0; i < targetCount; i++) {
+                for (int j = 0; j < HOLES && j < terms.rowSize(targets[i]); j++) {
+                    targetInner[i * HOLES + j] = Math.max(Terms.indexOf(targets, targetCount, terms.rowAt(targets[i], j)), 0);
+                }
+            }
+        }
+
+        /** A target that is a row of an assoc operator in the pattern (so that it is not too long) has parts. */
+        private void addRow(int target) {
+            int term = targets[target];
+            int many = terms.rowSize(term);
+            boolean assoc = !terms.isVariable(term) && theory.isAssoc(terms.operatorOf(term));
+            if (!assoc || !isInPattern(terms.head[term]) || many > Matcher.WIDEST || rowCount >= MOST_ROWS) {
+                return;
+            }
+            boolean any = theory.isComm(terms.operatorOf(term));
+            for (int part = 0; part < PARTS; part++) {
+                // of a row in order only what stands side by side is a part
+                boolean there = part < 1 << many && (any || (part & part + (part & -part)) == 0);
+                int made = there ? partOf(term, part) : -1;
+                parts[rowCount * PARTS + part] = made;
+                partAt[rowCount * PARTS + part] = made < 0 ? -1 : Terms.indexOf(targets, targetCount, made);
+            }
+            rows[rowCount] = target;
+            rowCount++;
+        }
+
+        private boolean isInPattern(int head) {
+            for (int k = 0; k < size; k++) {
+                if (terms.head[list[k]] == head) {
+                    return true;
+                }
+            }
+            return false;
+        }
+
+        private int partOf(int term, int part) {
+            int n = 0;
+            for (int k = 0; k < terms.rowSize(term); k++) {
+                if ((part >> k & 1) != 0) {
+                    terms.row[n] = terms.rowAt(term, k);
+                    n++;
+                }
+            }
+            if (n > 0) {
+                return n == 1 ? terms.row[0] : terms.intern(terms.head[term], n);
+            }
+            int unit = theory.unit(terms.operatorOf(term));
+            return unit < 0 ? -1 : terms.intern(unit + Terms.OPERATOR, 0);
+        }
+
+        /** A variable that stands for nothing could be all that its sort takes. */
+        private void tellFree(int k) {
+            int sort = theory.variableSort[terms.head[list[k]] % Theory.MOST_VARIABLES];
+            long bits = 0L;
+            for (int i = 0; i < targetCount; i++) {
+                bits |= isOfSort(targets[i], sort) ? 1L << i : 0L;
+            }
+            free[k * WIDTH] = bits;
+            for (int r = 0; r < rowCount; r++) {
+                bits = 0L;
+                for (int part = 0; part < PARTS; part++) {
+                    bits |= isOfSort(parts[r * PARTS + part], sort) ? 1L << part : 0L;
+                }
+                free[k * WIDTH + 1 + r] = bits;
+            }
+        }
+
+        private boolean isOfSort(int term, int sort) {
+            return term >= 0 && terms.leastOf(term) >= 0 && theory.isBelow(terms.leastOf(term), sort);
+        }
+
+        /** A term in the pattern is this one. */
+        private void tellValue(int k, int value) {
+            int index = Terms.indexOf(targets, targetCount, value);
+            may[k * WIDTH] = index < 0 ? 0L : 1L << index;
+            for (int r = 0; r < rowCount; r++) {
+                long bits = 0L;
+                for (int part = 0; part < PARTS; part++) {
+                    bits |= parts[r * PARTS + part] == value ? 1L << part : 0L;
+                }
+                may[k * WIDTH + 1 + r] = bits;
+            }
+        }
+
+        /** What variables stand for by now; and what all terms in the pattern could be then. */
+        void tell(int[] bind) {
+            for (int k = 0; k < size; k++) {
+                int term = list[k];
+                if (terms.isVariable(term) && bind[terms.head[term]] < 0) {
+                    System.arraycopy(free, k * WIDTH, may, k * WIDTH, WIDTH);
+                } else if (terms.isVariable(term)) {
+                    tellValue(k, bind[terms.head[term]]);
+                } else if (terms.vars[term] != 0L) {
+                    tellRow(k);
+                }
+            }
+        }
+
+        private void tellRow(int k) {
+            int term = list[k];
+            int at = k * WIDTH;
+            boolean assoc = theory.isAssoc(terms.operatorOf(term));
+            may[at] = assoc ? 0L : sameRows(k);
+            for (int r = 0; r < rowCount; r++) {
+                int row = targets[rows[r]];
+                boolean joined = assoc && terms.head[row] == terms.head[term];
+                long bits = joined ? partsJoined(k, r, innerAt[k], innerAt[k + 1]) : 0L;
+                may[at + 1 + r] = bits;
+                may[at] |= (bits >>> (1 << terms.rowSize(row)) - 1 & 1L) << rows[r];
+            }
+            if (theory.unit(terms.operatorOf(term)) >= 0) {
+                tellLeftAlone(k);
+            }
+            for (int r = 0; r < rowCount; r++) {
+                for (int part = 0; part < PARTS; part++) {
+                    int index = partAt[r * PARTS + part];
+                    may[at + 1 + r] |= index >= 0 && (may[at] >>> index & 1L) != 0L ? 1L << part : 0L;
+                }
+            }
+        }
+
+        /** The targets of the same operator, which is not assoc, whose rows the terms in a row could be. */
+        private long sameRows(int k) {
+            int head = terms.head[list[k]];
+            int many = Math.min(innerAt[k + 1] - innerAt[k], HOLES);
+            boolean comm = theory.isComm(terms.operatorOf(list[k]));
+            long bits = 0L;
+            for (int i = 0; i < targetCount; i++) {
+                boolean straight = terms.head[targets[i]] == head;
+                boolean turned = straight && comm;
+                for (int j = 0; j < many && (straight || turned); j++) {
+                    long here = may[inner[innerAt[k] + j] * WIDTH];
+                    straight = straight && (here >>> targetInner[i * HOLES + j] & 1L) != 0L;
+                    turned = turned && (here >>> targetInner[i * HOLES + many - 1 - j] & 1L) != 0L;
+                }
+                bits |= straight || turned ? 1L << i : 0L;
+            }
+            return bits;
+        }
+
+        /** The parts of a row that some of the terms in a row of the pattern, all side by side, could be together. */
+        private long partsJoined(int k, int r, int from, int to) {
+            int order = theory.isComm(terms.operatorOf(list[k])) ? 0 : PARTS;
+            long all = 1L;
+            for (int j = from; j < to && all != 0L; j++) {
+                long bits = may[inner[j] * WIDTH + 1 + r];
+                long next = 0L;
+                for (int part = 0; part < PARTS; part++) {
+                    next |= (bits >>> part & 1L) == 0L ? 0L : (all & beside[order + part]) << part;
+                }
+                all = next;
+            }
+            return all;
+        }
+
+        /** One of a row is left alone, if all others can be the id. */
+        private void tellLeftAlone(int k) {
+            int others = 0;
+            int stays = -1;
+            for (int j = innerAt[k]; j < innerAt[k + 1] && unitAt[k] >= 0; j++) {
+                if ((may[inner[j] * WIDTH] >>> unitAt[k] & 1L) == 0L) {
+                    others++;
+                    stays = j;
+                }
+            }
+            for (int j = innerAt[k]; j < innerAt[k + 1]; j++) {
+                for (int w = 0; w <= rowCount && (others == 0 || (others == 1 && j == stays)); w++) {
+                    may[k * WIDTH + w] |= may[inner[j] * WIDTH + w];
+                }
+            }
+        }
+
+        // whether goals could be met
+
+        /** Whether a term in the pattern could become a term. */
+        boolean allows(int pattern, int term) {
+            int k = Terms.indexOf(list, size, pattern);
+            int index = Terms.indexOf(targets, targetCount, term);
+            if (k < 0) {
+                return true;
+            }
+            if (index >= 0) {
+                return (may[k * WIDTH] >>> index & 1L) != 0L;
+            }
+            int part = Terms.indexOf(parts, rowCount * PARTS, term);
+            return part < 0 || (may[k * WIDTH + 1 + part / PARTS] >>> part % PARTS & 1L) != 0L;
+        }
+
+        /** The number of a term as a row of an operator, or -1. */
+        private int rowOf(int term, int head) {
+            for (int r = 0; r < rowCount; r++) {
+                if (targets[rows[r]] == term && terms.head[term] == head) {
+                    return r;
+                }
+            }
+            return -1;
+        }
+
+        /** Whether a term in the pattern could become a part of a row of an operator. */
+        boolean allowsPart(int pattern, int term, int op, int part) {
+            int k = Terms.indexOf(list, size, pattern);
+            int r = rowOf(term, op + Terms.OPERATOR);
+            return k < 0 || r < 0 || (may[k * WIDTH + 1 + r] >>> part & 1L) != 0L;
+        }
+
+        /** Whether the items that are left of a row in the pattern could become what is left of a row, or some of that. */
+        boolean allowsRow(int pattern, int term, int items, int rest, boolean some) {
+            int k = Terms.indexOf(list, size, pattern);
+            int r = rowOf(term, terms.head[pattern]);
+            if (k < 0 || r < 0) {
+                return true;
+            }
+            boolean any = theory.isComm(terms.operatorOf(pattern));
+            int left = any ? rest : (1 << terms.rowSize(term)) - (1 << rest);
+            int from = any ? innerAt[k] : innerAt[k + 1] - items;
+            long bits = partsJoined(k, r, from, from + items);
+            if (!some) {
+                return (bits >>> left & 1L) != 0L;
+            }
+            for (int part = 0; part <= left; part++) {
+                boolean begins = any || part == 0 || (part & -part) == 1 << rest;
+                if ((part & ~left) == 0 && begins && (bits >>> part & 1L) != 0L) {
+                    return true;
+                }
+            }
+            return false;
+        }
+
+        // dead ends
+
+        /** A state is written down behind the dead ends; when there is no more room these are forgotten: they only save work. */
+        void openState() {
+            stateSize = 0;
+            if (endTop > 0 && endTop + STATE + LONGEST_STATE > ends.length && ends.length < MOST_ENDS) {
+                ends = Arrays.copyOf(ends, ends.length * 2);
+            }
+            if (endTop == 0 || endTop + STATE + LONGEST_STATE > ends.length) {
+                Arrays.fill(ends, 0, CHAINS, -1);
+                endTop = CHAINS;
+            }
+        }
+
+        void put(int number) {
+            if (stateSize < LONGEST_STATE) {
+                ends[endTop + STATE + stateSize] = number;
+            }
+            stateSize++;
+        }
+
+        private int chainOfState() {
+            int sum = stateSize;
+            for (int k = 0; k < stateSize; k++) {
+                sum = sum * 1000003 + ends[endTop + STATE + k];
+            }
+            return (sum ^ sum >>> 13) & (CHAINS - 1);
+        }
+
+        /** Whether the state that was written down is a dead end. */
+        boolean isDeadEnd() {
+            if (stateSize > LONGEST_STATE) {
+                return false;
+            }
+            for (int end = ends[chainOfState()], n = 0; end >= 0 && n < MOST_ENDS; end = ends[end], n++) {
+                boolean same = ends[end + 1] == stateSize;
+                for (int k = STATE; k < STATE + stateSize && same; k++) {
+                    same = ends[end + k] == ends[endTop + k];
+                }
+                if (same) {
+                    return true;
+                }
+            }
+            return false;
+        }
+
+        void keepDeadEnd() {
+            if (stateSize > LONGEST_STATE) {
+                return;
+            }
+            int chain = chainOfState();
+            ends[endTop] = ends[chain];
+            ends[endTop + 1] = stateSize;
+            ends[chain] = endTop;
+            endTop += STATE + stateSize;
         }
     }
 
@@ -3976,46 +4499,14 @@ public final class RewriteHouse {
 
         /** Whether s is ABOVE t: worked out for all terms in both, the lower numbers (which stand in higher ones) first. */
         private boolean isAbove(int s, int t) {
-            upperCount = collect(s, uppers);
-            lowerCount = collect(t, lowers);
+            upperCount = terms.collect(s, uppers);
+            lowerCount = terms.collect(t, lowers);
             for (int x = 0; x < upperCount; x++) {
                 for (int y = 0; y < lowerCount; y++) {
                     isAbove[x * Terms.MOST_SIZE + y] = isAboveByParts(uppers[x], lowers[y]);
                 }
             }
             return known(s, t);
-        }
-
-        /** All terms in a term, each once, by number. */
-        private int collect(int term, int[] list) {
-            list[0] = term;
-            int many = 1;
-            for (int k = 0; k < many; k++) {
-                for (int i = 0; i < terms.rowSize(list[k]); i++) {
-                    int inner = terms.rowAt(list[k], i);
-                    if (indexOf(list, many, inner) < 0 && many < list.length) {
-                        list[many] = inner;
-                        many++;
-                    }
-                }
-            }
-            for (int k = 1; k < many; k++) {
-                for (int i = k; i > 0 && list[i - 1] > list[i]; i--) {
-                    int other = list[i];
-                    list[i] = list[i - 1];
-                    list[i - 1] = other;
-                }
-            }
-            return many;
-        }
-
-        private static int indexOf(int[] list, int many, int term) {
-            for (int k = 0; k < many; k++) {
-                if (list[k] == term) {
-                    return k;
-                }
-            }
-            return -1;
         }
 
         private boolean known(int s, int t) {
@@ -4117,7 +4608,7 @@ public final class RewriteHouse {
 
     /** Finds the most general ways in which two terms become one. */
     static final class Unifier {
-        private static final int VARIABLES = 60, MOST_TWOS = 150, MOST_TOGETHER = 4000, MOST_WORK = 50000000;
+        private static final int VARIABLES = 60, MOST_TWOS = 150, MOST_TOGETHER = 4000, MOST_WORK = 2000000000;
         private static final int NIL = -1, FAILS = -2;
         private static final int TWO = 3, MOST_GOALS = 1000;
         /** A row that is still to be turned round: two terms, what follows, and what was there before it. */
