@@ -2591,7 +2591,7 @@ public final class RewriteHouse {
         static final int MOST_LISTED = 200, WIDEST = 6;
         private static final int VARIABLES = 60, FIRST_CELLS = 8192, MOST_CELLS = 262144;
         /** Far above what any list needs: one that takes LONG_WORK looks ahead, and is not led astray any more. */
-        private static final int MOST_WORK = 2000000000, LONG_WORK = 2000;
+        private static final int MOST_WORK = 2000000000, LONG_WORK = 1000;
         private static final int NIL = -1, FAILS = -2;
         /** A goal: a pattern that is to become a term, or the rest of a pattern's row to become a rest of a row. */
         private static final int PATTERN = 0, TERM = 1, ITEMS = 2, REST = 3, NEXT = 4, GOAL = 5, MOST_GOALS = 800;

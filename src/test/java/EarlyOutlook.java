@@ -8,7 +8,7 @@ import java.nio.file.Path;
  */
 final class EarlyOutlook {
     private static final String[][] CHANGES = {
-        {"LONG_WORK = 2000", "LONG_WORK = 0"}, {"WORTH_KEEPING = 16", "WORTH_KEEPING = 0"}, {"MOST_ENDS = 262144", "MOST_ENDS = 4096"}};
+        {"LONG_WORK = 1000", "LONG_WORK = 0"}, {"WORTH_KEEPING = 16", "WORTH_KEEPING = 0"}, {"MOST_ENDS = 262144", "MOST_ENDS = 4096"}};
 
     private EarlyOutlook() {
     }
