@@ -13,7 +13,7 @@ final class BracketsTest {
     /** The calls as they were told. */
     private static void sixtyOpened() {
         House h = new House("sixty (");
-        RewriteHouse x = h.x;
+        RewriteHouse x = h.x();
         h.due("feed", x.feed(1936683636, 542318638, 544174112, 1629501984, 759046227), 20);
         h.due("feed", x.feed(539893792, 538976288, 538976288, 538976288, 538976288), 40);
         h.due("end(2)", x.end(2), 22);
@@ -28,7 +28,7 @@ final class BracketsTest {
         h.due("fault(0)", x.fault(0), 60);
         h.due("fault(1)", x.fault(1), 1);
         h.due("61 (", h.strategy(0, "(".repeat(61)), -12);
-        h.due("at the 61st", h.x.fault(0), 60);
+        h.due("at the 61st", h.x().fault(0), 60);
         h.due("the tape is empty then", h.strategy(0, "idle"), 1);
     }
 
@@ -44,11 +44,11 @@ final class BracketsTest {
         h.due("60 WORDS, the last one behind them", h.strategy(a, inBrackets("(", "r", 29) + "!"), 1);
         h.due("answers", h.results(), "b");
         h.due("61 WORDS, 30 (", h.strategy(a, inBrackets("(", "r", 30)), -12);
-        h.due("at the last )", h.x.fault(0), 60);
+        h.due("at the last )", h.x().fault(0), 60);
         h.due("61 WORDS, a sign behind them", h.strategy(a, inBrackets("(", "r *", 29) + "*"), -12);
-        h.due("at the sign", h.x.fault(0), 61);
+        h.due("at the sign", h.x().fault(0), 61);
         h.due("61 WORDS, the last one cannot stand there", h.strategy(a, inBrackets("(", "r *", 29) + ")"), -11);
-        h.due("at it", h.x.fault(0), 61);
+        h.due("at it", h.x().fault(0), 61);
         h.due("58 WORDS, 19 not (", h.strategy(a, inBrackets("not ( ", "r ", 19)), 0);
         h.due("60 WORDS, 19 one ( and a sign at each end", h.strategy(a, inBrackets("one ( ", "r ! ", 19) + " *"), 2);
         h.due("answers", h.results(), "a; b");
@@ -65,17 +65,17 @@ final class BracketsTest {
             String right = inBrackets("(", "r *", deep);
             h.due(deep + " (", h.strategy(a, right), 2);
             h.due("one ) too few", h.strategy(a, right.substring(0, right.length() - 1)), -11);
-            h.due("at the end", h.x.fault(0), right.length() - 1);
+            h.due("at the end", h.x().fault(0), right.length() - 1);
             h.due("none", h.strategy(a, right.substring(0, deep + 3)), -11);
-            h.due("at the end", h.x.fault(0), deep + 3);
+            h.due("at the end", h.x().fault(0), deep + 3);
             h.due("one ) too many", h.strategy(a, right + ")"), -11);
-            h.due("at it", h.x.fault(0), right.length());
+            h.due("at it", h.x().fault(0), right.length());
             h.due("nothing in the innermost", h.strategy(a, inBrackets("(", "", deep)), -11);
-            h.due("at its )", h.x.fault(0), deep);
+            h.due("at its )", h.x().fault(0), deep);
             h.due("a bracket behind one", h.strategy(a, right + "\n(r)"), -11);
-            h.due("at it", h.x.fault(0), right.length() + 1);
-            h.due("in its line", h.x.fault(1), 2);
-            h.due("RESULTS stay", h.x.count(8), 2);
+            h.due("at it", h.x().fault(0), right.length() + 1);
+            h.due("in its line", h.x().fault(1), 2);
+            h.due("RESULTS stay", h.x().count(8), 2);
         }
     }
 
@@ -93,7 +93,7 @@ final class BracketsTest {
                 String plan = inBrackets("( ", plans[k] + " ", deep);
                 h.strategy(a, plan);
                 h.due(plan, h.results(), due[k]);
-                h.x.forget();
+                h.x().forget();
             }
         }
     }

@@ -6,6 +6,8 @@ final class LongListsTest {
     private static final String HOPELESS = "f ( A + B + C + D + E + F + G , P * Q * R * T * U * V * W * a )";
     private static final String TERM = "f ( b + c + d + g + h + k , b * c * d * g * h * k * b )";
     private static final int SECONDS = 150;
+    /** The OPERATOR e of module(). */
+    private static final int ID = 8;
 
     public static void main(String[] args) {
         watch();
@@ -43,30 +45,30 @@ final class LongListsTest {
         House h = new House("told").with(module(""));
         int p = h.term(HOPELESS);
         int t = h.term(TERM);
-        h.due("262,144 DEALS, no matcher", h.x.match(p, t, false), 0);
-        h.due("within", h.x.match(p, t, true), 0);
-        h.due("no STOP", h.x.count(9), 0);
-        h.due("RESULTS", h.x.count(8), 0);
-        h.due("8 to the power 7 would be too many", h.x.match(p, h.term("f ( b + c + d + g + h + k , b + c + d + g + h + k + a )"), false), -23);
-        h.due("the same variable on both sides", h.x.match(h.term("f ( A + B + C + D + E + F + G , P * Q * R * T * U * V * V * b )"), t, false), 0);
-        h.due("too long a list", h.x.match(h.term("f ( A + B + C + D + E + F + G , P * Q * R * T * U * V * W * X )"), t, false), -22);
-        h.due("one way", h.x.match(h.term("f ( A + b + c + d + g + h + k , b * c * d * P * h * Q * b )"), t, false), 1);
-        h.due("no way", h.x.match(h.term("f ( A + b + c + d + g + h + k , b * c * d * P * h * Q * k )"), t, false), 0);
-        h.due("a row in a row", h.x.match(h.term("( A * B * C * D * E * a ) + ( P * Q * R * T * U * b ) + F + G"), h.term("b + c + d + g + h + k"), false), 0);
-        h.due("within a row", h.x.match(h.term("( A * B * C * D * E * a ) + ( P * Q * R * T * U * b ) + F + G"), h.term("b + c + d + g + h + k"), true), 0);
+        h.due("262,144 DEALS, no matcher", h.x().match(p, t, false), 0);
+        h.due("within", h.x().match(p, t, true), 0);
+        h.due("no STOP", h.x().count(9), 0);
+        h.due("RESULTS", h.x().count(8), 0);
+        h.due("8 to the power 7 would be too many", h.x().match(p, h.term("f ( b + c + d + g + h + k , b + c + d + g + h + k + a )"), false), -23);
+        h.due("the same variable on both sides", h.x().match(h.term("f ( A + B + C + D + E + F + G , P * Q * R * T * U * V * V * b )"), t, false), 0);
+        h.due("too long a list", h.x().match(h.term("f ( A + B + C + D + E + F + G , P * Q * R * T * U * V * W * X )"), t, false), -22);
+        h.due("one way", h.x().match(h.term("f ( A + b + c + d + g + h + k , b * c * d * P * h * Q * b )"), t, false), 1);
+        h.due("no way", h.x().match(h.term("f ( A + b + c + d + g + h + k , b * c * d * P * h * Q * k )"), t, false), 0);
+        h.due("a row in a row", h.x().match(h.term("( A * B * C * D * E * a ) + ( P * Q * R * T * U * b ) + F + G"), h.term("b + c + d + g + h + k"), false), 0);
+        h.due("within a row", h.x().match(h.term("( A * B * C * D * E * a ) + ( P * Q * R * T * U * b ) + F + G"), h.term("b + c + d + g + h + k"), true), 0);
     }
 
     private static void states() {
         House h = new House("states").with(module(""));
         int p = h.term(HOPELESS);
         int t = h.term(TERM);
-        h.due("states", h.x.states(t), 1);
-        h.due("search", h.x.search(p, 0), -2);
-        h.due("search finds", h.x.search(h.term("f ( A , B )"), 0), 0);
-        h.due("always", h.x.law(0, p, 0), -10);
-        h.due("never", h.x.law(1, p, 0), 1);
-        h.due("must", h.x.law(2, p, 0), -10);
-        h.due("leads: the second list has too many DEALS", h.x.law(3, p, p), -1004);
+        h.due("states", h.x().states(t), 1);
+        h.due("search", h.x().search(p, 0), -2);
+        h.due("search finds", h.x().search(h.term("f ( A , B )"), 0), 0);
+        h.due("always", h.x().law(0, p, 0), -10);
+        h.due("never", h.x().law(1, p, 0), 1);
+        h.due("must", h.x().law(2, p, 0), -10);
+        h.due("leads: the second list has too many DEALS", h.x().law(3, p, p), -1004);
     }
 
     /** The list of T := U: 262,144 DEALS in each call. */
@@ -74,13 +76,13 @@ final class LongListsTest {
         String c = " if f ( B + C + D + E + F + G + X , P * Q * R * T * U * V * W * a ) := A .";
         House h = new House("conditions").with(module("eq z ( A ) = a" + c));
         int t = h.term("z ( " + TERM + " )");
-        h.due("reduce", h.x.order(t, h.x.reduce(t)), 0);
-        h.due("STEPS", h.x.count(10), 0);
+        h.due("reduce", h.x().order(t, h.x().reduce(t)), 0);
+        h.due("STEPS", h.x().count(10), 0);
         h.with(module("rl r : z ( A ) => a" + c));
         t = h.term("z ( " + TERM + " )");
-        h.due("reduce", h.x.order(t, h.x.reduce(t)), 0);
-        h.due("steps", h.x.steps(t), 0);
-        h.due("states", h.x.states(t), 1);
+        h.due("reduce", h.x().order(t, h.x().reduce(t)), 0);
+        h.due("steps", h.x().steps(t), 0);
+        h.due("states", h.x().states(t), 1);
         h.due("a strategy", h.strategy(t, "r"), 0);
         h.due("a strategy", h.strategy(t, "not ( r )"), 1);
         h.due("twice it has too many DEALS", h.strategy(t, "r | r"), -24);
@@ -91,42 +93,42 @@ final class LongListsTest {
         String left = "f ( A + B + C + D + E + F , P * Q * R * T * U * V * W * a )";
         House h = new House("left sides").with(module("eq " + left + " = b ."));
         int t = h.term(TERM);
-        h.due("reduce", h.x.order(t, h.x.reduce(t)), 0);
-        h.due("no STOP", h.x.count(9), 0);
+        h.due("reduce", h.x().order(t, h.x().reduce(t)), 0);
+        h.due("no STOP", h.x().count(9), 0);
         h.with(module("rl r : " + left + " => b ."));
         t = h.term(TERM);
-        h.due("steps", h.x.steps(t), 0);
-        h.due("states", h.x.states(t), 1);
-        h.due("no STOP", h.x.count(9), 0);
+        h.due("steps", h.x().steps(t), 0);
+        h.due("states", h.x().states(t), 1);
+        h.due("no STOP", h.x().count(9), 0);
     }
 
     /** a, b, c in this order among seven, and in the other order among the same ones the other way round: 35 ways. */
     private static void inOrder() {
         House h = new House("in order").with(module(""));
-        int p = h.term("f ( A * B * C * D * E * F * G , G * F * E * D * C * B * A )");
-        h.due("three of seven", h.x.match(p, h.term("f ( a * b * c , c * b * a )"), false), 35);
         for (int i = 0; i < 35; i++) {
+            h.spare(70);
+            h.due("three of seven", h.x().match(h.term("f ( A * B * C * D * E * F * G , G * F * E * D * C * B * A )"), h.term("f ( a * b * c , c * b * a )"), false), 35);
             h.due("each has four ids", ids(h, i), 4);
         }
-        h.x.forget();
-        p = h.term("f ( A * B * C * D * E * F * G , G * F * E * D * C * B * A )");
-        h.due("four of seven", h.x.match(p, h.term("f ( a * b * c * d , d * c * b * a )"), false), 35);
-        h.due("all", h.x.match(p, h.term("f ( a * b * c * d * g * h * k , k * h * g * d * c * b * a )"), false), 1);
-        h.due("another order", h.x.match(p, h.term("f ( a * b * c * d , d * c * a * b )"), false), 0);
-        h.due("one alone is all of it", h.x.match(p, h.term("f ( a * b * c * d , a * b * c * d )"), false), 7);
+        h.with(module(""));
+        int p = h.term("f ( A * B * C * D * E * F * G , G * F * E * D * C * B * A )");
+        h.due("four of seven", h.x().match(p, h.term("f ( a * b * c * d , d * c * b * a )"), false), 35);
+        h.due("all", h.x().match(p, h.term("f ( a * b * c * d * g * h * k , k * h * g * d * c * b * a )"), false), 1);
+        h.due("another order", h.x().match(p, h.term("f ( a * b * c * d , d * c * a * b )"), false), 0);
+        h.due("one alone is all of it", h.x().match(p, h.term("f ( a * b * c * d , a * b * c * d )"), false), 7);
     }
 
     /** How many of A .. G stand for the id; others stand for nothing. */
     private static int ids(House h, int i) {
         int many = 0;
         for (int v = 0; v < 7; v++) {
-            int got = h.x.bound(i, v);
-            many += h.shown(got).equals("e") ? 1 : 0;
+            int got = h.x().bound(i, v);
+            many += h.x().about(got, 2) == ID ? 1 : 0;
         }
         for (int v = 7; v < 15; v++) {
-            many += h.x.bound(i, v) == -2 ? 0 : 100;
+            many += h.x().bound(i, v) == -2 ? 0 : 100;
         }
-        h.x.forget();
+        h.x().forget();
         return many;
     }
 
@@ -176,10 +178,10 @@ final class LongListsTest {
         for (String[] one : HARD) {
             int number = Integer.parseInt(one[0]);
             House h = new House("hard " + one[1]).with(hardModule(number, one[1] + " " + one[2]));
-            int p = h.x.reduce(h.term(one[1]));
-            int t = h.x.reduce(h.term(one[2]));
-            h.due("matchers", h.x.match(p, t, false), Integer.parseInt(one[3]));
-            h.due("within", h.x.match(p, t, true), Integer.parseInt(one[4]));
+            int p = h.x().reduce(h.term(one[1]));
+            int t = h.x().reduce(h.term(one[2]));
+            h.due("matchers", h.x().match(p, t, false), Integer.parseInt(one[3]));
+            h.due("within", h.x().match(p, t, true), Integer.parseInt(one[4]));
         }
     }
 

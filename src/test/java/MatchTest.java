@@ -31,11 +31,11 @@ final class MatchTest {
         h.due("variables in T are like others", h.matchers("k ( Y )", "k ( X )", false, 2), "-, X");
         h.due("another OPERATOR", h.matchers("k ( Y )", "m ( a , b )", false, 2), "");
         int p = h.term("a");
-        h.due("one without variables", h.x.match(p, p, false), 1);
+        h.due("one without variables", h.x().match(p, p, false), 1);
         int o = h.term("o");
-        h.due("another KIND", h.x.match(p, o, false), -1);
-        h.due("no such handle", h.x.match(p, 99, true), -1);
-        h.due("no such handle", h.x.match(-1, p, true), -1);
+        h.due("another KIND", h.x().match(p, o, false), -1);
+        h.due("no such handle", h.x().match(p, 99, true), -1);
+        h.due("no such handle", h.x().match(-1, p, true), -1);
     }
 
     private static void bags() {
@@ -90,65 +90,65 @@ final class MatchTest {
         House h = new House("bound").with(BAG);
         int p = h.term("T B");
         int t = h.term("a b c");
-        h.due("match", h.x.match(p, t, true), 12);
-        h.due("count(8)", h.x.count(8), 12);
-        h.due("result: they are MATCHERS", h.x.result(0), -1);
-        h.due("way: they are MATCHERS", h.x.way(0, 0), -1);
-        h.due("search: no STATES", h.x.search(p, 0), -1);
-        h.due("law: no STATES", h.x.law(0, p, 0), -1);
-        int got = h.x.bound(0, 0);
+        h.due("match", h.x().match(p, t, true), 12);
+        h.due("count(8)", h.x().count(8), 12);
+        h.due("result: they are MATCHERS", h.x().result(0), -1);
+        h.due("way: they are MATCHERS", h.x().way(0, 0), -1);
+        h.due("search: no STATES", h.x().search(p, 0), -1);
+        h.due("law: no STATES", h.x().law(0, p, 0), -1);
+        int got = h.x().bound(0, 0);
         h.due("T", h.shown(got), "a");
-        h.due("B", h.shown(h.x.bound(0, 2)), "none");
-        h.due("behind", h.shown(h.x.bound(0, -2)), "b c");
-        h.due("ahead: nothing", h.x.bound(0, -1), -2);
-        h.due("behind nothing", h.x.bound(1, -2), -2);
-        h.due("behind one alone", h.shown(h.x.bound(2, -2)), "c");
-        h.due("U", h.x.bound(0, 1), -2);
-        h.due("59", h.x.bound(0, 59), -2);
-        h.due("30", h.x.bound(0, 30), -2);
-        h.due("60", h.x.bound(0, 60), -1);
-        h.due("-3", h.x.bound(0, -3), -1);
-        h.due("12th", h.x.bound(12, 0), -1);
-        h.due("-1st", h.x.bound(-1, 0), -1);
-        h.due("BAD leaves them", h.x.match(p, 99, true), -1);
-        h.due("count(8)", h.x.count(8), 12);
-        h.x.steps(t);
-        h.due("the RESULTS are none", h.x.bound(0, 0), -1);
-        for (int k = h.x.count(7); k < 200; k++) {
-            h.x.part(t, 0);
+        h.due("B", h.shown(h.x().bound(0, 2)), "none");
+        h.due("behind", h.shown(h.x().bound(0, -2)), "b c");
+        h.due("ahead: nothing", h.x().bound(0, -1), -2);
+        h.due("behind nothing", h.x().bound(1, -2), -2);
+        h.due("behind one alone", h.shown(h.x().bound(2, -2)), "c");
+        h.due("U", h.x().bound(0, 1), -2);
+        h.due("59", h.x().bound(0, 59), -2);
+        h.due("30", h.x().bound(0, 30), -2);
+        h.due("60", h.x().bound(0, 60), -1);
+        h.due("-3", h.x().bound(0, -3), -1);
+        h.due("12th", h.x().bound(12, 0), -1);
+        h.due("-1st", h.x().bound(-1, 0), -1);
+        h.due("BAD leaves them", h.x().match(p, 99, true), -1);
+        h.due("count(8)", h.x().count(8), 12);
+        h.x().steps(t);
+        h.due("the RESULTS are none", h.x().bound(0, 0), -1);
+        for (int k = h.x().count(7); k < 200; k++) {
+            h.x().part(t, 0);
         }
-        h.x.match(p, t, false);
-        h.due("FULL", h.x.bound(0, 0), -3);
-        h.due("NONE first", h.x.bound(0, 1), -2);
-        h.due("BAD first", h.x.bound(9, 1), -1);
+        h.x().match(p, t, false);
+        h.due("FULL", h.x().bound(0, 0), -3);
+        h.due("NONE first", h.x().bound(0, 1), -2);
+        h.due("BAD first", h.x().bound(9, 1), -1);
     }
 
     private static void stops() {
         House h = new House("stops").with(BAG);
-        h.due("81 matchers", h.x.match(h.term("B C D"), h.term("a b c d"), false), 81);
-        h.due("243 are too many", h.x.match(h.term("B C D"), h.term("a b c d e"), false), -22);
-        h.due("the latest STOP", h.x.count(9), 2);
-        h.due("RESULTS stay", h.x.count(8), 81);
-        h.due("a row of 6", h.x.match(h.term("T U"), h.term("a a a a a a"), true), 1);
-        h.due("a row of 7 is WIDE", h.x.match(h.term("T U"), h.term("a a a a a a a"), true), -23);
-        h.due("deep in it, too", h.x.match(h.term("T U"), h.term("w ( a a a a a a a )"), true), -23);
-        h.due("not, if its OPERATOR is not in P", h.x.match(h.term("w ( B )"), h.term("w ( a a a a a a a )"), true), 1);
-        h.due("262,144 DEALS", h.x.match(h.term("T T T T T T T"), h.term("a b c d e g"), false), 0);
-        h.due("531,441 DEALS", h.x.match(h.term("T T T T T T T T"), h.term("a b c d e g"), false), -24);
-        h.due("whatever P and T are", h.x.match(h.term("w ( T T T T T T T T )"), h.term("w ( a ) w ( a b c d e g )"), false), -24);
-        h.due("the latest STOP", h.x.count(9), 4);
+        h.due("81 matchers", h.x().match(h.term("B C D"), h.term("a b c d"), false), 81);
+        h.due("243 are too many", h.x().match(h.term("B C D"), h.term("a b c d e"), false), -22);
+        h.due("the latest STOP", h.x().count(9), 2);
+        h.due("RESULTS stay", h.x().count(8), 81);
+        h.due("a row of 6", h.x().match(h.term("T U"), h.term("a a a a a a"), true), 1);
+        h.due("a row of 7 is WIDE", h.x().match(h.term("T U"), h.term("a a a a a a a"), true), -23);
+        h.due("deep in it, too", h.x().match(h.term("T U"), h.term("w ( a a a a a a a )"), true), -23);
+        h.due("not, if its OPERATOR is not in P", h.x().match(h.term("w ( B )"), h.term("w ( a a a a a a a )"), true), 1);
+        h.due("262,144 DEALS", h.x().match(h.term("T T T T T T T"), h.term("a b c d e g"), false), 0);
+        h.due("531,441 DEALS", h.x().match(h.term("T T T T T T T T"), h.term("a b c d e g"), false), -24);
+        h.due("whatever P and T are", h.x().match(h.term("w ( T T T T T T T T )"), h.term("w ( a ) w ( a b c d e g )"), false), -24);
+        h.due("the latest STOP", h.x().count(9), 4);
         h.with("sort A . op a : -> A . op _ _ : A A -> A [ assoc ] . var X Y Z V W U T S R Q : A .");
         // 6 dealt to r + 2 in a row: 12! / 6! 6! = 924 for r = 5
-        h.due("in a row", h.x.match(h.term("X Y Z V W"), h.term("a a a a a a"), false), 5);
+        h.due("in a row", h.x().match(h.term("X Y Z V W"), h.term("a a a a a a"), false), 5);
         h.with("sort A B . op a : -> A . op _ _ : A A -> A [ assoc ] . op k : A A -> B . var X Y Z V W : A .");
-        h.due("924 times 84", h.x.match(h.term("k ( X Y Z V W , X Y )"), h.term("k ( a a a a a a , a a )"), false), 3);
-        h.due("924 times 924", h.x.match(h.term("k ( X Y Z V W , X Y Z V W )"), h.term("k ( a a a a a a , a a )"), false), -24);
+        h.due("924 times 84", h.x().match(h.term("k ( X Y Z V W , X Y )"), h.term("k ( a a a a a a , a a )"), false), 3);
+        h.due("924 times 924", h.x().match(h.term("k ( X Y Z V W , X Y Z V W )"), h.term("k ( a a a a a a , a a )"), false), -24);
         h.with("sort A . op a : -> A . op m : A A -> A [ comm ] . op f : A -> A . var X : A .");
         StringBuilder p = new StringBuilder("X");
         for (int k = 0; k < 5; k++) {
             p.insert(0, "m ( a , ").append(" )");
         }
-        h.due("2 for each comm row", h.x.match(h.term(p.toString()), h.term("a"), false), 0);
+        h.due("2 for each comm row", h.x().match(h.term(p.toString()), h.term("a"), false), 0);
     }
 
     /** For each way to put terms for variables: it is a matcher if, and only if, the pattern becomes the term. */
@@ -176,16 +176,20 @@ final class MatchTest {
         }
         java.util.Map<String, java.util.Set<String>> tried = tried(h, pattern, values);
         for (String term : terms) {
-            h.x.forget();
+            h.spare(150);
+            h.x().forget();
             int p = h.term(pattern);
             int t = h.term(term);
             if (t < 0) {
                 continue;
             }
             java.util.Set<String> wanted = tried.getOrDefault(h.shown(t), new java.util.TreeSet<>());
-            int found = h.x.match(p, t, false);
+            int found = h.x().match(p, t, false);
             java.util.Set<String> listed = new java.util.TreeSet<>();
             for (int i = 0; i < found; i++) {
+                if (h.spare(120)) {
+                    h.x().match(h.term(pattern), h.term(term), false);
+                }
                 listed.add(boundText(h, i, 0) + "," + boundText(h, i, 1) + "," + boundText(h, i, 2));
             }
             h.due(term + " each once", listed.size(), found);
@@ -194,9 +198,9 @@ final class MatchTest {
     }
 
     private static String boundText(House h, int i, int v) {
-        int got = h.x.bound(i, v);
+        int got = h.x().bound(i, v);
         String text = got < 0 ? "-" : h.shown(got);
-        h.x.forget();
+        h.x().forget();
         return text;
     }
 
@@ -220,7 +224,8 @@ final class MatchTest {
 
     /** A text as the term that it is would be printed. */
     private static String same(House h, String value) {
-        h.x.forget();
+        h.spare(60);
+        h.x().forget();
         int got = value.equals("-") ? -1 : h.term(value);
         return got < 0 ? value : h.shown(got);
     }

@@ -59,9 +59,9 @@ final class OpenCalls {
             int a = h.term("a");
             h.due("60 WORDS", h.strategy(a, "r" + sign.repeat(59)), -25);
             dueBelow(h, "60 WORDS at work", 180);
-            h.due("steps", h.x.steps(a), -25);
+            h.due("steps", h.x().steps(a), -25);
             dueBelow(h, "steps", 120);
-            h.due("states", h.x.states(a), -25);
+            h.due("states", h.x().states(a), -25);
             dueBelow(h, "states", 120);
         }
     }
@@ -73,16 +73,16 @@ final class OpenCalls {
         int deep = h.term("s ".repeat(31) + "a");
         dueBelow(h, "32 WORDS", 32);
         int row = h.term("a" + " x a".repeat(15));
-        h.due("printed", h.x.print(row, -1), 61);
+        h.due("printed", h.x().print(row, -1), 61);
         dueBelow(h, "a row printed", 30);
-        int forty = h.x.reduce(h.term("d ( d ( d ( s s s s s s s s s a ) ) )"));
-        h.due("SIZE 40", h.x.about(forty, 0), 40);
+        int forty = h.x().reduce(h.term("d ( d ( d ( s s s s s s s s s a ) ) )"));
+        h.due("SIZE 40", h.x().about(forty, 0), 40);
         dueBelow(h, "reduced", 10);
-        h.due("printed", h.x.print(forty, -1), 79);
+        h.due("printed", h.x().print(forty, -1), 79);
         dueBelow(h, "40 deep printed", 80);
-        h.due("ORDER", h.x.order(deep, forty), -1);
+        h.due("ORDER", h.x().order(deep, forty), -1);
         dueBelow(h, "ORDER", 20);
-        h.due("matchers", h.x.match(h.term("s s X"), forty, true), 1);
+        h.due("matchers", h.x().match(h.term("s s X"), forty, true), 1);
         dueBelow(h, "matchers", 3);
     }
 
@@ -90,7 +90,7 @@ final class OpenCalls {
         House h = new House("pairs").with("sort S . op a : -> S . op s _ : S -> S [ prec 0 ] . op f : S S -> S . op _ + _ : S S -> S [ comm ] . var X Y Z : S ."
                 + " eq f ( " + "s ".repeat(12) + "X , X ) = a . eq f ( Y , " + "s ".repeat(20) + "Z ) = Y + Z . eq " + "s ".repeat(27) + "( X + Y ) = a .");
         OpenCount.most = 0;
-        h.x.pairs(0);
+        h.x().pairs(0);
         dueBelow(h, "pairs", 20);
     }
 }

@@ -32,13 +32,13 @@ final class ReduceTest {
         h.due("a variable", h.rest("N"), "N");
         h.due("with variables", h.rest("s N + M"), "s ( N + M )");
         int t = h.term("s 0 + 0");
-        h.due("a handle", h.x.reduce(t), 1);
-        h.due("STEPS", h.x.count(10), 2);
+        h.due("a handle", h.x().reduce(t), 1);
+        h.due("STEPS", h.x().count(10), 2);
         h.due("the old one stays", h.shown(t), "s 0 + 0");
-        h.due("BAD", h.x.reduce(2), -1);
-        h.due("BAD", h.x.reduce(-1), -1);
-        h.due("at REST", h.shown(h.x.reduce(1)), "s 0");
-        h.due("STEPS", h.x.count(10), 0);
+        h.due("BAD", h.x().reduce(2), -1);
+        h.due("BAD", h.x().reduce(-1), -1);
+        h.due("at REST", h.shown(h.x().reduce(1)), "s 0");
+        h.due("STEPS", h.x().count(10), 0);
     }
 
     private static void inOrder() {
@@ -81,14 +81,14 @@ final class ReduceTest {
     private static void atRest() {
         House h = new House("at rest").with("sort A . op a : -> A . op b : -> A . op f : A -> A . op g : A A -> A . var X : A . eq f ( X ) = X .");
         h.term("g ( f ( a ) , f ( a ) )");
-        h.x.reduce(0);
-        h.due("what came to REST is not REDUCED anew", h.x.count(10), 1);
+        h.x().reduce(0);
+        h.due("what came to REST is not REDUCED anew", h.x().count(10), 1);
         h.term("g ( f ( f ( a ) ) , f ( a ) )");
-        h.x.reduce(2);
-        h.due("nor what it became", h.x.count(10), 1);
+        h.x().reduce(2);
+        h.due("nor what it became", h.x().count(10), 1);
         h.term("g ( f ( a ) , f ( b ) )");
-        h.x.reduce(4);
-        h.due("others are", h.x.count(10), 2);
+        h.x().reduce(4);
+        h.due("others are", h.x().count(10), 2);
     }
 
     /** A counter of three digits: it takes as many STEPS as it tells. */
@@ -102,13 +102,13 @@ final class ReduceTest {
     private static void tooManySteps() {
         House h = new House("steps").with(COUNTER);
         h.due("5", h.rest(counter(5)), "t ( 0 , 0 , 0 )");
-        h.due("STEPS", h.x.count(10), 5);
+        h.due("STEPS", h.x().count(10), 5);
         h.due("600", h.rest(counter(600)), "t ( 0 , 0 , 0 )");
-        h.due("STEPS", h.x.count(10), 600);
-        h.due("no STOP", h.x.count(9), 0);
+        h.due("STEPS", h.x().count(10), 600);
+        h.due("no STOP", h.x().count(9), 0);
         h.due("601", h.rest(counter(601)), "-21");
-        h.due("STEPS", h.x.count(10), 601);
-        h.due("STOP", h.x.count(9), 1);
+        h.due("STEPS", h.x().count(10), 601);
+        h.due("STOP", h.x().count(9), 1);
     }
 
     private static void tooLong() {
@@ -142,17 +142,17 @@ final class ReduceTest {
         String nine = times("s ", 9, "0");
         h.due("60 deep", h.rest("z ( " + times("s ", 6, "0") + " , " + nine + " )"), "ok");
         h.due("61 deep", h.rest("z ( " + times("s ", 7, "0") + " , 0 )"), "-25");
-        h.due("STOP", h.x.count(9), 5);
+        h.due("STOP", h.x().count(9), 5);
         h.with("sort A . op a : -> A . op f : A -> A . eq f ( a ) = f ( f ( a ) ) .");
         h.due("in a row", h.rest("f ( a )"), "-25");
-        h.due("at the 61st", h.x.count(10), 61);
+        h.due("at the 61st", h.x().count(10), 61);
     }
 
     private static void tooBig() {
         House h = new House("big").with("sort A . op 0 : -> A . op s_ : A -> A . op d : A -> A . op p : A A -> A . var X : A . eq d ( X ) = p ( X , X ) .");
         h.due("39", h.rest("d ( " + times("s ", 18, "0 )")), "p ( " + times("s ", 18, "0 , ") + times("s ", 18, "0 )"));
         h.due("41", h.rest("d ( " + times("s ", 19, "0 )")), "-26");
-        h.due("no STEP", h.x.count(10), 0);
+        h.due("no STEP", h.x().count(10), 0);
         h.with("sort A . op a : -> A . op b : -> A . op _ _ : A A -> A [ assoc ] . eq b = a a a .");
         h.due("a row of 39", h.rest(times("a ", 27, "b b b b")), times("a ", 38, "a"));
         h.due("a row of 40", h.rest(times("a ", 26, "b b b b b a").trim()), "-26");
@@ -164,7 +164,7 @@ final class ReduceTest {
                 + times(part + " /\\ ", 5, part) + " .");
         h.due("4,000", h.rest("c ( " + times("s ", 20, "0 )")), "c ( 0 )");
         h.due("4,200", h.rest("c ( " + times("s ", 21, "0 )")), "-27");
-        h.due("STOP", h.x.count(9), 7);
-        h.due("ahead of the 21st STEP", h.x.count(10), 20);
+        h.due("STOP", h.x().count(9), 7);
+        h.due("ahead of the 21st STEP", h.x().count(10), 20);
     }
 }

@@ -14,18 +14,18 @@ final class RoomTest {
         House h = new House("room").with(text.toString());
         String first = "k ( f ( A D E ) , f ( G H I J K ) , s )";
         int kept = h.term(first);
-        h.due("steps", h.x.steps(kept), 2);
-        for (int round = 0; round < 55; round++) {
+        h.due("steps", h.x().steps(kept), 2);
+        for (int round = 0; round < 45; round++) {
             int t = h.term(term(round));
-            h.due("at REST", h.x.order(t, h.x.reduce(t)), 0);
+            h.due("at REST", h.x().order(t, h.x().reduce(t)), 0);
         }
-        h.due("the handle", h.x.order(kept, h.term(first)), 0);
-        h.due("one of the first round", h.x.order(1, h.term(term(0))), 0);
-        h.due("one of the last round", h.x.order(110, h.term(term(54))), 0);
-        h.due("RESULTS", h.x.count(8), 2);
-        h.due("RESULT 0", h.x.order(h.x.result(0), h.term("k ( f ( D D E ) , f ( G H I J K ) , s )")), 0);
-        h.due("RESULT 1", h.x.order(h.x.result(1), h.term("k ( f ( A E E ) , f ( G H I J K ) , s )")), 0);
-        h.due("part", h.x.order(h.x.part(110, 0), h.x.part(h.term(term(54)), 0)), 0);
+        h.due("the handle", h.x().order(kept, h.term(first)), 0);
+        h.due("one of the first round", h.x().order(1, h.term(term(0))), 0);
+        h.due("one of the last round", h.x().order(90, h.term(term(44))), 0);
+        h.due("RESULTS", h.x().count(8), 2);
+        h.due("RESULT 0", h.x().order(h.x().result(0), h.term("k ( f ( D D E ) , f ( G H I J K ) , s )")), 0);
+        h.due("RESULT 1", h.x().order(h.x().result(1), h.term("k ( f ( A E E ) , f ( G H I J K ) , s )")), 0);
+        h.due("part", h.x().order(h.x().part(90, 0), h.x().part(h.term(term(44)), 0)), 0);
         System.exit(House.ending());
     }
 

@@ -57,7 +57,7 @@ final class WildTest {
         int a = NUMBERS[random.nextInt(NUMBERS.length)];
         int b = NUMBERS[random.nextInt(NUMBERS.length)];
         int c = NUMBERS[random.nextInt(NUMBERS.length)];
-        int some = h.x.count(7) == 0 ? a : random.nextInt(h.x.count(7));
+        int some = h.x().count(7) == 0 ? a : random.nextInt(h.x().count(7));
         switch (random.nextInt(34)) {
             case 0: return h.module(wildText(random));
             case 1:
@@ -69,30 +69,30 @@ final class WildTest {
             case 7: return h.term(any(random, TERMS));
             case 8: return h.strategy(some, any(random, PLANS));
             case 9: return h.strategy(a, wildText(random));
-            case 10: return h.x.feed(a, b, c, a, b);
-            case 11: return h.x.end(a);
-            case 12: return h.x.fault(a);
-            case 13: return h.x.count(a);
-            case 14: return h.x.about(some, a);
-            case 15: return h.x.part(some, a);
-            case 16: return h.x.order(some, a);
-            case 17: return h.x.print(some, a);
-            case 18: return h.x.forget();
-            case 19: return h.x.below(a, b);
-            case 20: return h.x.kind(a);
-            case 21: return h.x.operator(a, b);
-            case 22: return h.x.match(some, a, b > 0);
-            case 23: return h.x.bound(a, b);
-            case 24: return h.x.reduce(some);
-            case 25: return h.x.steps(some);
-            case 26: return h.x.result(a);
-            case 27: return h.x.way(a, b);
-            case 28: return h.x.states(some);
-            case 29: return h.x.search(some, a);
-            case 30: return h.x.law(a, some, b);
-            case 31: return h.x.check(a);
-            case 32: return h.x.witness(a, b);
-            default: return random.nextBoolean() ? h.x.pairs(a) : h.x.pair(a, b);
+            case 10: return h.x().feed(a, b, c, a, b);
+            case 11: return h.x().end(a);
+            case 12: return h.x().fault(a);
+            case 13: return h.x().count(a);
+            case 14: return h.x().about(some, a);
+            case 15: return h.x().part(some, a);
+            case 16: return h.x().order(some, a);
+            case 17: return h.x().print(some, a);
+            case 18: return h.x().forget();
+            case 19: return h.x().below(a, b);
+            case 20: return h.x().kind(a);
+            case 21: return h.x().operator(a, b);
+            case 22: return h.x().match(some, a, b > 0);
+            case 23: return h.x().bound(a, b);
+            case 24: return h.x().reduce(some);
+            case 25: return h.x().steps(some);
+            case 26: return h.x().result(a);
+            case 27: return h.x().way(a, b);
+            case 28: return h.x().states(some);
+            case 29: return h.x().search(some, a);
+            case 30: return h.x().law(a, some, b);
+            case 31: return h.x().check(a);
+            case 32: return h.x().witness(a, b);
+            default: return random.nextBoolean() ? h.x().pairs(a) : h.x().pair(a, b);
         }
     }
 }
