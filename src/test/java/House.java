@@ -25,7 +25,7 @@ final class House {
         calls++;
         if (calls == MOST_CALLS + 1) {
             wrong++;
-            System.out.println(name + ": a test with more than " + MOST_CALLS + " calls of one object");
+            System.out.println(name + ": a test with more than " + MOST_CALLS + " calls of one object, " + Thread.currentThread().getStackTrace()[2]);
         }
         return made;
     }
