@@ -30,6 +30,11 @@ final class House {
         return made;
     }
 
+    /** How many calls the object has had. */
+    int calls() {
+        return calls;
+    }
+
     void due(String call, long got, long want) {
         looked++;
         if (got != want) {

@@ -489,6 +489,14 @@ final class JudgeEdgesTest {
         H.due("pair(-1, 0)", H.x().pair(-1, 0), -1);
         H.due("pair(0, 4)", H.x().pair(0, 4), -1);
         H.due("STATES still", H.x().way(0, 2), 0);
+        // behind another STOP it is told anew; pair() may be the first to meet it
+        H.with("sort A . op a : -> A . op f : A -> A . op g : A -> A . var X : A . eq f ( a ) = f ( a ) . eq f ( X ) = a . eq g ( a ) = g ( g ( a ) ) .");
+        int deep = H.term("g ( a )");
+        H.stopped("pair(0, 0)", () -> H.x().pair(0, 0), 1);
+        H.stopped("reduce()", () -> H.x().reduce(deep), 5);
+        H.stopped("pair(0, 3)", () -> H.x().pair(0, 3), 1);
+        H.stopped("reduce()", () -> H.x().reduce(deep), 5);
+        H.stopped("pairs(1)", () -> H.x().pairs(1), 1);
         H.due("another module", H.module("sort A . op a : -> A ."), 1);
         H.due("no STOP since the module", H.x().count(9), 0);
         H.due("PAIRS", H.x().pairs(0), 0);

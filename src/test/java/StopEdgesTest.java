@@ -277,6 +277,17 @@ final class StopEdgesTest {
         H.due("STEPS", H.x().count(10), 60);
         // each call begins anew
         stops("k is not at REST any more", () -> H.x().reduce(four), 5, 0);
+        // "what a call REDUCES .. is 0 deep", whatever call it is
+        H.with(DEEP + "rl r : ok => ok .");
+        int most = H.term(deep(58, "own"));
+        int more = H.term(deep(59, "own"));
+        ends("steps()", H.x().steps(most), 1, 61);
+        ends("states()", H.x().states(most), 1, 61);
+        ends("strategy()", H.strategy(most, "r"), 1, 61);
+        stops("steps()", () -> H.x().steps(more), 5, 0);
+        stops("states()", () -> H.x().states(more), 5, 0);
+        H.feed("r");
+        stops("strategy()", () -> strategyWith(more, "r"), 5, 0);
     }
 
     /** "what a rule makes, is 0 deep .. a T or U in C (of rules, too) each one more". */

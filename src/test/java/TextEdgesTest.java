@@ -20,6 +20,7 @@ final class TextEdgesTest {
         placesOfOneAndTwo();
         emptied();
         faultsTold();
+        calls512();
         System.exit(House.ending());
     }
 
@@ -534,5 +535,25 @@ final class TextEdgesTest {
         h.due("a good one", h.module(""), 0);
         h.due("has none", h.x().fault(0), -2);
         h.due("has none", h.x().fault(1), -2);
+    }
+
+    /** "An object is used for at most 512 calls": the last of them is answered like the first. */
+    private static void calls512() {
+        House h = new House("512 calls");
+        String module = "sort A . op a : -> A . op f : A -> A . var X : A . eq f ( f ( X ) ) = X . rl r : a => f ( a ) . ***" + times("x", 40);
+        for (int round = 0; h.calls() < 480; round++) {
+            h.due("module " + round, h.module(module), 2);
+            h.due("term", h.term("f ( f ( a ) )"), 0);
+            h.due("reduce", h.x().reduce(0), 1);
+            h.due("steps", h.x().steps(0), 1);
+            h.due("states", h.x().states(1), 2);
+            h.due("result", h.x().result(1), 2);
+        }
+        while (h.calls() < 510) {
+            h.due("count(8)", h.x().count(8), 2);
+        }
+        h.due("the 511th", h.x().order(0, 2), 1);
+        h.due("the 512th", h.x().about(2, 0), 2);
+        h.due("calls", h.calls(), 512);
     }
 }
