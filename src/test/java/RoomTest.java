@@ -26,7 +26,22 @@ final class RoomTest {
         h.due("RESULT 0", h.x().order(h.x().result(0), h.term("k ( f ( D D E ) , f ( G H I J K ) , s )")), 0);
         h.due("RESULT 1", h.x().order(h.x().result(1), h.term("k ( f ( A E E ) , f ( G H I J K ) , s )")), 0);
         h.due("part", h.x().order(h.x().part(90, 0), h.x().part(h.term(term(44)), 0)), 0);
+        // terms that are the same are one, however long ago they were made
+        h.due("the same under a pattern", h.x().match(h.x().part(kept, 0), h.x().part(h.term(first), 0), false), 1);
+        printed(text.toString());
         System.exit(House.ending());
+    }
+
+    /** What was printed last is another term's text, even if that has its number by now. */
+    private static void printed(String module) {
+        House h = new House("printed").with(module);
+        h.due("f ( A )", h.shown(h.term("f ( A )")), "f ( A )");
+        h.x().forget();
+        int kept = h.term("f ( D )");
+        for (int round = 0; round < 60; round++) {
+            h.x().reduce(h.term(term(round)));
+        }
+        h.due("f ( D )", h.shown(kept), "f ( D )");
     }
 
     private static String term(int round) {

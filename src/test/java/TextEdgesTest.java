@@ -21,6 +21,8 @@ final class TextEdgesTest {
         emptied();
         faultsTold();
         calls512();
+        cutBytes();
+        anotherModule();
         System.exit(House.ending());
     }
 
@@ -59,6 +61,10 @@ final class TextEdgesTest {
             h.due("feed " + k, h.x().feed(blank, blank, blank, blank, blank), 20 * k);
         }
         h.refused("feed 301", () -> h.x().feed(0x41414141, 0x41414141, 0x41414141, 0x41414141, 0x41414141), -3);
+        h.due("6,000 without nineteen", h.x().end(1), 5981);
+        h.due("6,001 are above 6,000", h.x().feed(0x41414141, 0x41414141, 0x41414141, 0x41414141, 0x41414141), -3);
+        h.due("without one more", h.x().end(19), 5980);
+        h.due("6,000 are not", h.x().feed(blank, blank, blank, blank, blank), 6000);
         h.due("6,000 without the last", h.x().end(19), 5999);
         h.refused("6,019 are above 6,000", () -> h.x().feed(0x41414141, 0x41414141, 0x41414141, 0x41414141, 0x41414141), -3);
         h.due("none of the refused bytes came", h.x().module(), 0);
@@ -97,6 +103,11 @@ final class TextEdgesTest {
             H.due("byte " + b + " in a strategy", H.strategy(0, "r " + c), b == '!' ? 0 : blank || behind ? 1 : -11);
             H.due("its place", H.x().fault(0), blank || behind ? -2 : c == '|' || c == ';' ? 3 : 2);
         }
+        H.with("sort A . op a : -> A . rl r : a => a .");
+        H.due("the first byte of a term", H.term("\001"), -11);
+        H.due("its place", H.x().fault(0), 0);
+        H.due("the first WORD of a term", H.term("aaaaaaaaaaaaaaaaa"), -11);
+        H.due("its place", H.x().fault(0), 0);
         // "at that byte, whatever WORD it is in"; the first one counts
         H.at(1, "fo@\177o A .");
         H.at(1, "@foo \177 A .");
@@ -135,6 +146,8 @@ final class TextEdgesTest {
         H.due("sorts", H.x().count(0), 2);
         H.good("sort B .\n***(" + times("x", 40) + " ) . \n", 0);
         H.at(1, "sort B . @** sort C .");
+        H.good("sort * ** *a* **a a** *a** . op *_*_* : * ** -> *a* .", 1);
+        H.due("sorts", H.x().count(0), 6);
         H.at(1, "sort B . @a*** sort C .\n");
         H.at(1, "sort B . *** sort C . \n @***".replace("@***", "@**"));
         // a WORD that begins with it inside a statement; the 10 that ends it ends a line
@@ -360,7 +373,7 @@ final class TextEdgesTest {
             H.good(base + "op f : A A -> A [ prec " + n + " ] .", 3);
             H.due("STRENGTH", H.x().operator(2, 1), Integer.parseInt(n));
         }
-        for (String n : new String[] {"100", "000", "x", "1x", "x1", "-1", "1.", "gather", "]"}) {
+        for (String n : new String[] {"100", "000", "x", "1x", "x1", "-1", "1.", "1:", "/1", "gather", "]"}) {
             H.at(1, base + "op f : A A -> A [ prec @" + n + " ] .");
         }
         H.good(base + "op f : A A -> A [ prec 3 id e comm gather e & assoc ] .", 3);
@@ -555,5 +568,80 @@ final class TextEdgesTest {
         h.due("the 511th", h.x().order(0, 2), 1);
         h.due("the 512th", h.x().about(2, 0), 2);
         h.due("calls", h.calls(), 512);
+    }
+
+    /** end: what does not stay counts for nothing, whatever it was. */
+    private static void cutBytes() {
+        House h = new House("cut bytes");
+        h.x().feed(0x736f7274, 0x20410a0a, 0x0a0a0a0a, 0x0a0a0a0a, 0x0a0a0a0a);
+        h.due("sort A", h.x().end(6), 6);
+        h.due("unfinished", h.x().module(), -11);
+        h.due("at the end", h.x().fault(0), 6);
+        h.due("in line 1", h.x().fault(1), 1);
+        h.x().feed(0x736f7274, 0x2041202e, 0x202a2a2a, 0x2a2a2a2a, 0x2a2a2a2a);
+        h.due("sort A . **", h.x().end(11), 11);
+        h.due("no remark", h.x().module(), -11);
+        h.due("at the **", h.x().fault(0), 9);
+        h.x().feed(0x736f7274, 0x20616161, 0x61616161, 0x61616161, 0x61616161);
+        h.x().feed(0x61616161, 0x61616161, 0x61616161, 0x61616161, 0x61616161);
+        h.due("sort and 16", h.x().end(1), 21);
+        h.x().feed(0x202e0101, 0x01010101, 0x01010101, 0x01010101, 0x01010101);
+        h.due("a blank and .", h.x().end(2), 23);
+        h.due("16 bytes are no more than 16", h.x().module(), 0);
+        h.due("a sort", h.x().count(0), 1);
+    }
+
+    /** module: "The tape .. is the module": nothing of the one before it is left, whatever was asked of that. */
+    private static void anotherModule() {
+        House other = new House("another module");
+        for (String name : new String[] {"a", "b", "ab"}) {
+            other.due("module", other.module("sort A . op " + name + " : -> A ."), 1);
+            other.due("term", other.term(name), 0);
+            other.due("print", other.shown(0), name);
+        }
+        // as many as there can be of each, more than once
+        String most = numbered("sort ", 1, 20, "S# ") + numbered(". ", 1, 50, "op a# : -> S1 . ") + numbered("var ", 1, 30, "X# ") + ": S1 . ";
+        other.anew();
+        for (int round = 0; round < 4; round++) {
+            other.due("module", other.module(most), 50);
+            other.due("sorts", other.x().count(0), 20);
+            other.due("variables", other.x().count(4), 30);
+        }
+        String statements = "sort A . op a : -> A . " + times("eq a = a . ", 40) + times("rl r : a => a . ", 30);
+        other.anew();
+        for (int round = 0; round < 4; round++) {
+            other.due("module", other.module(statements), 1);
+            other.due("equations", other.x().count(5), 40);
+            other.due("rules", other.x().count(6), 30);
+        }
+        String parts = "sort A . op a : -> A . " + times("eq a = a if a : A /\\ a : A /\\ a : A /\\ a : A /\\ a : A /\\ a : A . ", 27);
+        other.anew();
+        for (int round = 0; round < 4; round++) {
+            other.due("module", other.module(parts), 1);
+            other.due("equations", other.x().count(5), 27);
+        }
+        String[] modules = {"sort A B C . subsort C < A B . op c : -> C . op f : A -> A . op f : B -> B . var X : A . eq f ( X ) = f ( X ) . eq c = c . rl r : c => c .",
+            "sort A . op a : -> A . op b : -> A . op g : A -> A . eq b = a . eq b = g ( a ) . rl q : a => b . rl q : a => g ( a ) .", "sort A", ""};
+        int[][] due = {{2, 3, 1, 2, 3, 1, 2, 1, 0, 1, 0, 0, 0, 0, 0}, {3, 1, 1, 3, 3, 0, 2, 2, 1, -2, 0, -1, 1, 1, 1}, {-11, 0, 0, 0, 0, 0, 0, 0, 1, -2, 1, -2, 0, 0, 0}, {0, 0, 0, 0, 0, 0, 0, 0, 1, -2, 1, -2, 0, 0, 0}};
+        for (int[] order : new int[][] {{0, 1, 0, 2, 1}, {1, 0, 3, 0, 1}, {2, 1, 1, 0, 0}}) {
+            House h = new House("another module");
+            for (int k : order) {
+                h.due("module", h.module(modules[k]), due[k][0]);
+                for (int what = 0; what < 7; what++) {
+                    h.due("count(" + what + ")", h.x().count(what), due[k][1 + what]);
+                }
+                h.due("check(0)", h.x().check(0), k == 0 ? 0 : 1);
+                h.due("witness(0, 0)", h.x().witness(0, 0), k == 0 ? 1 : -2);
+                h.due("check(1)", h.x().check(1), k == 0 || k == 1 ? 0 : 1);
+                h.due("witness(1, 0)", h.x().witness(1, 0), k == 0 ? 0 : k == 1 ? 1 : -2);
+                h.due("pairs(0)", h.x().pairs(0), k == 1 ? 1 : 0);
+                h.due("pair(0, 0)", h.x().pair(0, 0), k == 1 ? 0 : -1);
+                String text = k == 0 ? "c" : k == 1 ? "a" : "";
+                h.due("term", h.term(text), text.isEmpty() ? -11 : 0);
+                h.due("print", text.isEmpty() ? "" : h.shown(0), text);
+                h.due("a LABEL", h.strategy(0, "q"), text.isEmpty() ? -1 : k == 0 ? -11 : 2);
+                h.x().term();
+            }
+        }
     }
 }

@@ -22,7 +22,30 @@ final class WildTest {
             run(new Random(seed), second);
             told.due("run " + seed, first.toString(), second.toString());
         }
+        for (int seed = 0; seed < 600; seed++) {
+            told.due("behind others " + seed, behind(seed, seed + 10000), behind(seed, -1));
+        }
         System.exit(House.ending());
+    }
+
+    /** What calls answer from a module on; ahead of it the object may have had others, of which nothing is left. */
+    private static String behind(int seed, int others) {
+        House h = new House("wild");
+        Random random = new Random(others);
+        for (int n = 0; n < 60 && others >= 0; n++) {
+            call(h, random);
+        }
+        // the tape is empty then, and STEPS are those of this call
+        h.x().module();
+        h.module("sort A . op a : -> A .");
+        h.x().reduce(h.term("a"));
+        StringBuilder answers = new StringBuilder();
+        random = new Random(seed);
+        answers.append(h.module(module(random)));
+        for (int n = 0; n < 40; n++) {
+            answers.append(' ').append(call(h, random));
+        }
+        return answers.toString();
     }
 
     private static void run(Random random, StringBuilder answers) {
