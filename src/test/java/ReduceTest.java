@@ -44,6 +44,11 @@ final class ReduceTest {
     private static void inOrder() {
         House h = new House("in order").with("sort A . op a : -> A . op b : -> A . op c : -> A . op f : A -> A . op g : A A -> A . op m : A A -> A [ comm ] . var X Y : A ."
                 + " oeq f ( X ) = c . eq f ( b ) = a . eq f ( X ) = b if X = a . eq g ( X , Y ) = X . eq g ( X , X ) = c . eq m ( X , Y ) = X .");
+        House o = new House("oeq").with("sort A . op a : -> A . op b : -> A . op c : -> A . op f : A -> A . op g : A -> A . var X : A . eq g ( a ) = b . oeq f ( X ) = a . oeq f ( b ) = b . eq f ( c ) = c . oeq g ( X ) = c . eq g ( b ) = a .");
+        String[][] due = {{"f ( a )", "a"}, {"f ( b )", "a"}, {"f ( c )", "c"}, {"g ( a )", "b"}, {"g ( b )", "a"}, {"g ( c )", "c"}};
+        for (String[] two : due) {
+            o.due(two[0], o.rest(two[0]), two[1]);
+        }
         h.due("eq first, as they are told", h.rest("f ( b )"), "a");
         h.due("then those with C", h.rest("f ( a )"), "b");
         h.due("oeq last", h.rest("f ( c )"), "c");

@@ -10,7 +10,7 @@ final class RoomTest {
             text.append("op ").append(TOKENS.charAt(k)).append(" : -> T . ");
         }
         // each f lists all ways to deal its bag, and none goes
-        text.append("eq f ( B C ) = s if B = n /\\ C = n . rl r : A => D . rl r : D => E .");
+        text.append("eq f ( B C ) = s if B = n /\\ C = n . rl r : A => D . rl r : D => E . op g : B -> S . var t : T . eq g ( t B ) = g ( B ) if t = A . eq g ( n ) = s .");
         House h = new House("room").with(text.toString());
         String first = "k ( f ( A D E ) , f ( G H I J K ) , s )";
         int kept = h.term(first);
@@ -28,6 +28,8 @@ final class RoomTest {
         h.due("part", h.x().order(h.x().part(90, 0), h.x().part(h.term(term(44)), 0)), 0);
         // terms that are the same are one, however long ago they were made
         h.due("the same under a pattern", h.x().match(h.x().part(kept, 0), h.x().part(h.term(first), 0), false), 1);
+        h.due("equations are as they were", h.x().order(h.x().reduce(h.term("g ( A A A )")), h.term("s")), 0);
+        h.due("rules are as they were", h.x().steps(h.term("D D")), 1);
         printed(text.toString());
         System.exit(House.ending());
     }

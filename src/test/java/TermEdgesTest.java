@@ -384,6 +384,15 @@ final class TermEdgesTest {
         H.due("many bytes", H.x().print(got, -1), 2 * 11 * 16 + 1);
         H.due("the last one", H.x().print(got, 2 * 11 * 16), 'a');
         H.due("behind it", H.x().print(got, 2 * 11 * 16 + 1), -1);
+        // 38 deep: as many bytes as a TERM of 40 can have with it
+        H.with("sort A N . op a : -> A . op 0 : -> N . op s_ : N -> N . op t : N N A -> A . op " + form + "_ : A -> A . var X : A . var N M : N . eq t ( N , s M , X ) = t ( N , M , " + form + "X ) ."
+                + " eq t ( s N , 0 , X ) = t ( N , s s s s s s s s s s 0 , X ) . eq t ( 0 , 0 , X ) = X .");
+        H.due("deep", H.x().reduce(H.term("t ( s s s 0 , s s s s s s 0 , a )")), 1);
+        H.due("SIZE", H.x().about(1, 0), 37);
+        H.due("bytes", H.x().print(1, -1), 36 * 11 * 16 + 1);
+        H.due("the last one", H.x().print(1, 36 * 11 * 16), 'a');
+        H.due("one of the middle", H.x().print(1, 20 * 11 * 16 - 2), 'K');
+        H.due("behind it", H.x().print(1, 36 * 11 * 16 + 1), -1);
         // an assoc row "as the first two, with that and the next one, and so on; in ( ) where a HOLE does not take it"
         H.with("sort A . op a : -> A . op _l_ : A A -> A [ assoc ] . op _r_ : A A -> A [ assoc gather E e ] . op c : A A -> A [ assoc ] . op _k_ : A A -> A [ assoc gather E E ] .");
         String[][] texts = {{"a l a", "a l a"}, {"a l a l a l a", "a l a l a l a"}, {"a l ( a r a )", "a l ( a r a )"}, {"a r a", "a r a"}, {"a r a r a", "( a r a ) r a"}, {"a r a r a r a", "( ( a r a ) r a ) r a"},
@@ -476,6 +485,26 @@ final class TermEdgesTest {
         for (int what : new int[] {-1, 11, Integer.MIN_VALUE, Integer.MAX_VALUE}) {
             H.due("count(" + what + ")", H.x().count(what), -1);
         }
+        // "Rows of one FORM with the same KINDS of SORTS are one OPERATOR": a FORM that begins like another, or is another's end
+        H.good("sort A . op a b : -> A . op a : -> A . op b : -> A . op a b c : -> A . op b c : -> A . op _ a : A -> A . op a _ : A -> A . op _ a _ : A A -> A . op a a : -> A .", 9);
+        H.good("sort A . op f : A -> A . op f : A A -> A . op f : A A A -> A . op f : -> A . op f ( : -> A .", 5);
+        String kinds = "sort A B C D . subsort A < B . subsort C < D . ";
+        H.good(kinds + "op g : A C -> A . op g : B D -> B . op g : B C -> B .", 1);
+        H.due("rows", H.x().operator(0, 5), 3);
+        H.good(kinds + "op g : A C -> A . op g : C A -> A . op g : A A -> C . op g : D D -> C .", 4);
+        H.good(kinds + "op g : A A C -> A . op g : B B D -> A . op g : A C A -> A . op g : C A A -> A .", 3);
+        // ATTRIBUTES of many rows, each with another number
+        StringBuilder text = new StringBuilder("sort A . ");
+        for (int k = 0; k < 50; k++) {
+            text.append("op p").append(k).append(" : A A -> A [ prec ").append(k).append(k % 3 == 0 ? " comm" : "").append(" ] . ");
+        }
+        H.with(text.toString());
+        for (int k = 0; k < 50; k++) {
+            H.due("STRENGTH", H.x().operator(k, 1), k);
+            H.due("assoc", H.x().operator(k, 2), 0);
+            H.due("comm", H.x().operator(k, 3), k % 3 == 0 ? 1 : 0);
+            H.due("id", H.x().operator(k, 4), -2);
+        }
     }
 
     /** LEAST SORT: "the one SORT that is below all others; NONE, if there is none such, or a TERM has none". */
@@ -490,6 +519,23 @@ final class TermEdgesTest {
             H.due("least sort of " + two[0], H.x().about(H.term(two[0]), 1), Integer.parseInt(two[1]));
             H.x().forget();
             H.spare(30);
+        }
+        // each of three HOLES counts, wherever the TERM without one stands
+        H.with("sort A B C D . subsort A < B < C < D . op a : -> A . op b : -> B . op c : -> C . op d : -> D . op k : A B C -> A . op k : B C A -> B . op k : C A B -> C . op no : A -> A .");
+        String[] letters = {"a", "b", "c", "d", "no ( d )"};
+        int[][] rows = {{0, 1, 2}, {1, 2, 0}, {2, 0, 1}};
+        for (int x = 0; x < 5; x++) {
+            for (int y = 0; y < 5; y++) {
+                for (int z = 0; z < 5; z++) {
+                    int least = -2;
+                    for (int r = 2; r >= 0; r--) {
+                        least = x <= rows[r][0] && y <= rows[r][1] && z <= rows[r][2] ? r : least;
+                    }
+                    H.due("k of " + x + y + z, H.x().about(H.term("k ( " + letters[x] + " , " + letters[y] + " , " + letters[z] + " )"), 1), least);
+                    H.x().forget();
+                    H.spare(30);
+                }
+            }
         }
     }
 }

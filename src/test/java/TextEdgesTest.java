@@ -599,6 +599,19 @@ final class TextEdgesTest {
             other.due("term", other.term(name), 0);
             other.due("print", other.shown(0), name);
         }
+        // other WORDS each time, as many as a text can have
+        other.anew();
+        for (int round = 0; round < 2; round++) {
+            StringBuilder many = new StringBuilder();
+            for (int k = 0; k < 900; k++) {
+                many.append((char) ('a' + round)).append((char) ('A' + k % 26)).append((char) ('a' + k / 26 % 26)).append(k < 676 ? " " : "x ");
+            }
+            other.due("another WORD than can stand there", other.module(many.toString()), -11);
+        }
+        other.due("a module", other.module("sort New . op new : -> New . var Other : New . rl next : new => new ."), 1);
+        other.due("a term", other.term("new"), 0);
+        other.due("a variable", other.term("Other"), 1);
+        other.due("a LABEL", other.strategy(0, "next"), 1);
         // as many as there can be of each, more than once
         String most = numbered("sort ", 1, 20, "S# ") + numbered(". ", 1, 50, "op a# : -> S1 . ") + numbered("var ", 1, 30, "X# ") + ": S1 . ";
         other.anew();
