@@ -71,6 +71,14 @@ final class ReduceTest {
         h.due("the first that goes", h.rest("g ( p ( a , a ) )"), "a");
         h.due("none of T := U goes", h.rest("g ( p ( c , b ) )"), "g ( p ( b , c ) )");
         h.due("known variables stand for theirs", h.rest("h ( p ( c , b ) )"), "b");
+        h.with("sort A . op a : -> A . op b : -> A . op ok : -> A . op k : A A -> A . op h : A A -> A . op g : A -> A . op n : A A A -> A . var X Y Z : A . eq h ( X , Y ) = ok if k ( Y , Z ) := X ."
+                + " eq g ( X ) = n ( X , Y , Z ) if k ( Y , a ) := X /\\ k ( Y , Z ) := X . rl r : n ( X , Y , Z ) => ok if k ( Y , Z ) := X .");
+        h.due("that of the left side", h.rest("h ( k ( a , b ) , a )"), "ok");
+        h.due("another one", h.rest("h ( k ( a , b ) , b )"), "h ( k ( a , b ) , b )");
+        h.due("that of an earlier part", h.rest("g ( k ( b , a ) )"), "n ( k ( b , a ) , b , a )");
+        h.due("of a rule", h.x().steps(h.term("n ( k ( a , b ) , a , b )")), 1);
+        h.due("another one", h.x().steps(h.term("n ( k ( a , b ) , a , a )")), 0);
+        h.due("another one", h.x().steps(h.term("n ( k ( a , b ) , b , b )")), 0);
     }
 
     private static void rows() {

@@ -31,7 +31,32 @@ final class RoomTest {
         h.due("equations are as they were", h.x().order(h.x().reduce(h.term("g ( A A A )")), h.term("s")), 0);
         h.due("rules are as they were", h.x().steps(h.term("D D")), 1);
         printed(text.toString());
+        manyInOneCall();
         System.exit(House.ending());
+    }
+
+    /** 120 STATES, for each of which a rule asks for a bag of six that no other has, and all that can be taken of it. */
+    private static void manyInOneCall() {
+        StringBuilder text = new StringBuilder("sort C D P T B S . subsort T < B . op n : C D -> P . op _ _ : B B -> B [ assoc comm ] . op bag : P -> B . op f : B -> S . op st : P -> S . op no : -> S . var P : P . var B : B . ");
+        for (String token : new String[] {"u", "v", "w", "x", "y", "z"}) {
+            text.append("op ").append(token).append(" : P -> T . ");
+        }
+        for (int k = 0; k < 12; k++) {
+            text.append(k < 10 ? "op c" + k + " : -> C . " : "").append("op d").append(k).append(" : -> D . ");
+            text.append(k < 9 ? "rl r : c" + k + " => c" + (k + 1) + " . " : "").append(k < 11 ? "rl r : d" + k + " => d" + (k + 1) + " . " : "");
+        }
+        text.append("eq bag ( P ) = u ( P ) v ( P ) w ( P ) x ( P ) y ( P ) z ( P ) . eq f ( B B ) = no . rl chk : st ( P ) => no if no = f ( bag ( P ) ) .");
+        House h = new House("many in one call").with(text.toString());
+        int first = h.term("st ( n ( c0 , d0 ) )");
+        for (int round = 0; round < 3; round++) {
+            h.due("STATES", h.x().states(first), 120);
+            h.due("STEPS", h.x().count(10), 9 * 12 + 10 * 11 + 120);
+            h.dueTerm("the last one", h.x().result(119), "st ( n ( c9 , d11 ) )");
+            h.due("the middle", h.x().search(h.term("st ( n ( c5 , d5 ) )"), 0) > 0 ? 1 : 0, 1);
+int bag = h.x().part(h.x().reduce(h.term("f ( bag ( n ( c5 , d5 ) ) )")), 0);
+            h.due("a bag of six", h.x().about(bag, 4), 6);
+            h.dueTerm("its last", h.x().part(bag, 5), "z ( n ( c5 , d5 ) )");
+        }
     }
 
     /** What was printed last is another term's text, even if that has its number by now. */

@@ -6,6 +6,8 @@ final class TermEdgesTest {
     public static void main(String[] args) {
         noReading();
         twoReadings();
+        oneReading();
+        manyReadings();
         unknownVariables();
         statementOrder();
         sizes();
@@ -70,6 +72,70 @@ final class TermEdgesTest {
         H.due("the same", H.x().order(1, H.term("a + ( a + a )")), 0);
         H.due("two in brackets", H.term("( a + a + a )"), -4);
         H.due("very many", H.term("a + a + a + a + a + a + a + a + a + a + a + a + a + a + a + a"), -4);
+    }
+
+    /** What the one READING is, where some of its words could be read in other ways. */
+    private static void oneReading() {
+        H.with("sort A C . op a : -> A . var a : C . op f : A -> A . op h : C -> C . op c : -> C . op k_k : A -> A [ prec 5 ] . op k_k : C -> C [ prec 6 ] . op l_l : C -> C [ prec 3 gather e ] . op m_m : A -> A [ prec 7 gather e ] .");
+        int[][] due = {{-2, 0}, {0, -2}};
+        String[] texts = {"f ( a )", "h ( a )", "f ( ( ( a ) ) )", "h ( ( a ) )", "m k a k m", "l ( k a k ) l", "m ( k ( a ) k ) m"};
+        int[] kinds = {0, 1, 0, 1, 0, 1, 0};
+        for (int k = 0; k < texts.length; k++) {
+            int t = H.term(texts[k]);
+            H.due(texts[k], H.x().about(t, 5), kinds[k]);
+            int inner = H.x().part(t, 0);
+            inner = H.x().about(inner, 4) > 0 ? H.x().part(inner, 0) : inner;
+            H.due("the variable in " + texts[k], H.x().about(inner, 3), due[kinds[k]][0] == -2 ? -2 : 0);
+            H.due("the OPERATOR in " + texts[k], H.x().about(inner, 2), due[kinds[k]][1]);
+        }
+        H.due("in brackets, of the second KIND", H.x().about(H.term("( c )"), 2), 3);
+        H.due("of both", H.term("( a )"), -4);
+        // a HOLE ends where what is in it can be read, too
+        H.with("sort A . op a : -> A . op b : -> A . op s_ : A -> A [ prec 1 ] . op _ _ : A A -> A [ gather & & ] . op p q r _ : A -> A [ prec 1 ] . op _ x y z _ : A A -> A [ prec 50 gather & & ] . op u v w t : -> A .");
+        H.due("s a, then b", H.shown(H.term("s a b")), "s a b");
+        H.due("two", H.x().about(0, 4), 2);
+        H.dueTerm("the first", H.x().part(0, 0), "s a");
+        // each of the PARTS stands in it
+        String[][] parts = {{"p", "q", "r", "a"}, {"a", "x", "y", "z", "b"}, {"u", "v", "w", "t"}};
+        for (String[] row : parts) {
+            H.due(String.join(" ", row), H.term(String.join(" ", row)) >= 0 ? 1 : 0, 1);
+            for (int k = 0; k < row.length; k++) {
+                String[] other = row.clone();
+                other[k] = "zz";
+                H.due(String.join(" ", other), H.term(String.join(" ", other)), -16);
+                boolean hole = row[k].equals("a") || row[k].equals("b");
+                other[k] = hole ? "x" : row[(k + 1) % row.length];
+                H.due(String.join(" ", other), H.term(String.join(" ", other)), -16);
+                H.spare(60);
+            }
+        }
+    }
+
+    /** 32 WORDS of which each row can be read as many OPERATORS: those of another KIND than it has to have are none. */
+    private static void manyReadings() {
+        StringBuilder text = new StringBuilder("sort A C . op a : -> A . op z : -> A . op _ _ : A A -> A [ assoc ] . ");
+        int operators = 3;
+        for (int bits = 0; bits < 64 && operators < 48; bits++) {
+            int size = 32 - Integer.numberOfLeadingZeros(bits);
+            int holes = Integer.bitCount(bits) - 1;
+            if (size < 4 || holes < 1 || holes > 3) {
+                continue;
+            }
+            text.append("op");
+            for (int k = size - 2; k >= 0; k--) {
+                text.append((bits >> k & 1) != 0 ? " _" : " a");
+            }
+            text.append(" : ").append("A ".repeat(holes)).append("-> C [ gather").append(" &".repeat(holes)).append(" ] . ");
+            operators++;
+        }
+        String row = "a ".repeat(31) + "a";
+        H.with(text + "eq z = " + row + " .");
+        H.due("OPERATORS", H.x().count(2), operators);
+        H.due("more than twenty", operators > 20 ? 1 : 0, 1);
+        H.due("of any KIND", H.term(row), -4);
+        H.term("z");
+        H.due("of the KIND of the left side", H.x().reduce(0), 1);
+        H.due("a row of 32", H.x().about(1, 4), 32);
     }
 
     /** "8 a variable that is not known (at its T's first WORD), and the left side of eq, rl is a variable". */
@@ -144,6 +210,12 @@ final class TermEdgesTest {
         H.due("its row", H.x().about(2, 4), 16);
         H.due("the id has no SIZE in a row", H.term("e | a | e | e | a | e | u e"), 3);
         H.due("SIZE", H.x().about(3, 0), 5);
+        H.dueTerm("40, left alone", H.term("e | u " + twenty + " | e"), "u " + twenty);
+        H.x().forget();
+        H.with(s);
+        for (int k = 0; k < 4; k++) {
+            H.term("a");
+        }
         H.due("29 and 10 in a row: 40", H.term("( " + "a ".repeat(15) + ") | " + "u ".repeat(9) + "a"), 4);
         H.due("29 and 11 in a row: 41", H.term("( " + "a ".repeat(15) + ") | " + "u ".repeat(10) + "a"), -16);
         for (String side : new String[] {"eq # = p .", "eq p = # .", "eq p = p if # = p .", "eq p = p if p = # .", "eq p = p if # := p .", "eq p = p if X := # .", "eq p = p if # : A .", "rl r : # => p .", "rl r : p => # ."}) {

@@ -99,6 +99,18 @@ final class WayEdgesTest {
         H.with(text + "rl r : n ( X , Y ) => f ( n ( f ( X ) , Y ) ) .");
         H.due("in a row: the second is another way to the same", H.x().steps(H.term("f ( X )")), 3);
         H.due("STEPS", H.x().count(10), 4);
+        // the deepest place that there is
+        H.with("sort A . op a : -> A . op b : -> A . op x : -> A . op s_ : A -> A . eq x = " + "s ".repeat(20) + "a . rl r : a => b .");
+        int whole = H.x().reduce(H.term("s ".repeat(19) + "x"));
+        H.due("SIZE", H.x().about(whole, 0), 40);
+        H.due("39 deep", H.x().steps(whole), 1);
+        H.due("STATES", H.x().states(whole), 2);
+        int step = H.x().result(1);
+        H.due("SIZE", H.x().about(step, 0), 40);
+        for (int k = 0; k < 39; k++) {
+            step = H.x().part(step, 0);
+        }
+        H.dueTerm("there", step, "b");
         // rules as they are told, then matchers in their order
         H.with(text + "rl q : m ( X , Y ) => X . rl r : m ( X , b ) => f ( X ) . rl s : m ( a , Y ) => e .");
         H.x().steps(H.term("m ( b , a )"));
