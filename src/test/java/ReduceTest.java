@@ -102,6 +102,12 @@ final class ReduceTest {
         h.term("g ( f ( a ) , f ( b ) )");
         h.x().reduce(4);
         h.due("others are", h.x().count(10), 2);
+        // what a row became came to REST, too; so did what the row was ahead of that
+        h.with("sort A . op a : -> A . op b : -> A . op f : A -> A . op h : A -> A . op g : A A A -> A . var X : A . eq f ( X ) = X . eq h ( a ) = b .");
+        h.x().reduce(h.term("g ( h ( f ( a ) ) , h ( a ) , h ( f ( a ) ) )"));
+        h.due("f ( a ), h ( a )", h.x().count(10), 2);
+        h.x().reduce(h.term("g ( h ( a ) , h ( f ( a ) ) , f ( h ( a ) ) )"));
+        h.due("h ( a ), f ( a ), f ( b )", h.x().count(10), 3);
     }
 
     /** A counter of three digits: it takes as many STEPS as it tells. */

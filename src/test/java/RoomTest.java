@@ -31,6 +31,7 @@ final class RoomTest {
         h.due("equations are as they were", h.x().order(h.x().reduce(h.term("g ( A A A )")), h.term("s")), 0);
         h.due("rules are as they were", h.x().steps(h.term("D D")), 1);
         printed(text.toString());
+        keptResults();
         manyInOneCall();
         System.exit(House.ending());
     }
@@ -56,6 +57,37 @@ final class RoomTest {
 int bag = h.x().part(h.x().reduce(h.term("f ( bag ( n ( c5 , d5 ) ) )")), 0);
             h.due("a bag of six", h.x().about(bag, 4), 6);
             h.dueTerm("its last", h.x().part(bag, 5), "z ( n ( c5 , d5 ) )");
+        }
+    }
+
+    /** RESULTS of each call stay, when others make room: bags that are others with each of 441 STEPS, and what can be taken of them. */
+    private static void keptResults() {
+        String module = "sort N T B S . subsort T < B . op 0 : -> N . op s_ : N -> N . op q : N N N -> T . op a : -> T . op b : -> T . op c : -> T . op _ _ : B B -> B [ assoc comm ] . op f : B -> S . op no : -> S ."
+                + " var N M K : N . var B C : B . eq f ( B B ) = no . eq f ( q ( N , M , s K ) B ) = f ( q ( N , M , K ) B ) . eq f ( q ( N , s M , 0 ) B ) = f ( q ( N , M , s s s s s s 0 ) B ) . eq f ( q ( s N , 0 , 0 ) B ) = f ( q ( N , s s s s s s 0 , s s s s s s 0 ) B ) ."
+                + " rl r : a => b . rl r : b => c .";
+        for (int what = 0; what < 4; what++) {
+            House h = new House("kept results").with(module);
+            int t = h.term("a b");
+            int due = what == 0 ? h.x().match(h.term("B C"), h.term("a b c"), false) : what == 1 ? h.x().states(t) : what == 2 ? h.strategy(t, "r *") : h.x().steps(t);
+            String[] texts = what == 0 ? new String[] {"a", "b", "c", "a b", "a c", "b c"} : what == 3 ? new String[] {"b b", "a c"} : new String[] {"a b", "b b", "a c", "b c", "c c"};
+            h.due("RESULTS", due, texts.length);
+            h.x().forget();
+            for (String others : new String[] {"a b c", "a a b", "b b c", "c c a"}) {
+                int got = h.x().reduce(h.term("f ( q ( s s s s s s s s s 0 , 0 , 0 ) " + others + " )"));
+                h.due("STEPS", h.x().count(10), 441);
+                h.dueTerm("at REST", got, "f ( q ( 0 , 0 , 0 ) " + others + " )");
+            }
+            h.x().forget();
+            int found = 0;
+            for (String text : texts) {
+                int wanted = h.term(text);
+                for (int i = 0; i < due; i++) {
+                    int got = what == 0 ? h.x().bound(i, 3) : h.x().result(i);
+                    found += h.x().order(got, wanted) == 0 ? 1 : 0;
+                }
+                h.x().forget();
+            }
+            h.due("each once", found, texts.length);
         }
     }
 

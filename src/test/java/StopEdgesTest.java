@@ -22,6 +22,8 @@ final class StopEdgesTest {
         whichFirst();
         nothingMade();
         begunAnew();
+        behindStops();
+        listsInLists();
         System.exit(House.ending());
     }
 
@@ -277,6 +279,13 @@ final class StopEdgesTest {
         H.due("STEPS", H.x().count(10), 60);
         // each call begins anew
         stops("k is not at REST any more", () -> H.x().reduce(four), 5, 0);
+        // g ( w ) is not at REST, but it came to REST: it is not REDUCED anew
+        H.with(DEEP.replace("if f ( k ) = ok", "if f ( g ( w ) ) = ok") + "op w : -> Q . op g : Q -> Q . eq w = k .");
+        int came = H.term("p ( g ( w ) , " + deep(58, "own") + " )");
+        ends0("g ( w ) is 61 deep, but came to REST", H.x().reduce(came));
+        int other = H.term("p ( w , " + deep(58, "own") + " )");
+        stops("g ( w ) is 61 deep", () -> H.x().reduce(other), 5, 1);
+        ends0("g ( w ) is 60 deep, w came to REST", H.x().reduce(H.term("p ( w , " + deep(57, "own") + " )")));
         // "what a call REDUCES .. is 0 deep", whatever call it is
         H.with(DEEP + "rl r : ok => ok .");
         int most = H.term(deep(58, "own"));
@@ -298,6 +307,9 @@ final class StopEdgesTest {
                 int go = H.term("go");
                 int got = H.x().steps(go);
                 H.due(c + " " + many, got, many <= 57 ? 1 : -25);
+                // behind a way that another rule has
+                H.with(DEEP + "op fine : -> T . rl q : go => fine . rl r : go => ok if " + deep(many, "own") + " = ok .");
+                H.due("behind another rule " + many, H.x().steps(H.term("go")), many <= 57 ? 2 : -25);
             }
             H.with(DEEP + "rl r : go => " + deep(many, "own") + " .");
             H.due("what a rule makes " + many, H.x().steps(H.term("go")), many <= 58 ? 1 : -25);
@@ -503,5 +515,40 @@ final class StopEdgesTest {
         for (int round = 0; round < 3; round++) {
             ends("4,000 MATCHERS", H.x().reduce(0), round + 1, 20);
         }
+    }
+
+    /** However many calls were stopped in the middle of something: the next one is answered as if there had been none. */
+    private static void behindStops() {
+        H.with("sort A . op a : -> A . op b : -> A . op k : A A A -> A . op f : A -> A . op g : A A -> A . var X : A . eq k ( a , X , X ) = k ( b , b , k ( a , X , X ) ) . eq f ( X ) = X .");
+        int t = H.term("k ( a , b , b )");
+        for (int round = 0; round < 150; round++) {
+            H.due("stopped " + round, H.x().reduce(t), -25);
+        }
+        ends3("not stopped", H.x().reduce(H.term("g ( f ( f ( a ) ) , f ( a ) )")), 1);
+        H.dueTerm("at REST", H.x().count(7) - 1, "g ( a , a )");
+        H.with(COUNTER + "op g : T T -> T . eq p ( T ) = T .");
+        int more = H.term(counter(601));
+        for (int round = 0; round < 20; round++) {
+            H.due("stopped " + round, H.x().reduce(more), -21);
+        }
+        ends3("not stopped", H.x().reduce(H.term("g ( p ( p ( ok ) ) , p ( ok ) )")), 1);
+        H.dueTerm("at REST", H.x().count(7) - 1, "g ( ok , ok )");
+    }
+
+    private static void ends3(String call, int got, int steps) {
+        H.due(call, got >= 0 ? 1 : got, 1);
+        H.due(call + ": STEPS", H.x().count(10), steps);
+    }
+
+    /** 200 MATCHERS are kept for each of 19 conditions in one another. */
+    private static void listsInLists() {
+        H.with(FREE + "op ok : -> S . op y : N K -> S . eq y ( s N , " + TWO_HUNDRED + " ) = ok if y ( N , k ( a , b , c ) ) = ok . eq y ( 0 , K ) = ok .");
+        ends("19 times 200", H.x().reduce(H.term("y ( " + times("s ", 19) + "0 , k ( a , b , c ) )")), 1, 20);
+        H.dueTerm("it holds", 1, "ok");
+        // the last one does not hold: all 200 are tried, but each asks for what is at REST already
+        H.with(FREE + "op ok : -> S . op y : N K -> S . eq y ( s N , " + TWO_HUNDRED + " ) = ok if y ( N , k ( a , b , c ) ) = ok .");
+        int t = H.term("y ( s s 0 , k ( a , b , c ) )");
+        H.dueTerm("none goes", H.x().reduce(t), "y ( s s 0 , k ( a , b , c ) )");
+        H.due("STEPS", H.x().count(10), 0);
     }
 }

@@ -417,9 +417,14 @@ final class WayEdgesTest {
         H.due("no MATCHERS any more", H.x().bound(0, 0), -1);
         H.due("how many", H.x().count(8), 0);
         H.due("STATES", H.x().states(t), 4);
-        H.module("sort A .");
+        H.module("sort A . op a : -> A .");
         H.due("a module has none", H.x().count(8), 0);
         H.due("no STATES any more", H.x().way(0, 2), -1);
+        int a = H.term("a");
+        for (int law = 0; law < 4; law++) {
+            H.due("the RESULTS are no STATES", H.x().law(law, a, a), -1);
+        }
+        H.due("the RESULTS are no STATES", H.x().search(a, 0), -1);
     }
 
     /** count(10): "STEPS of the latest reduce(), steps(), states(), strategy() that came to REDUCING (stopped ones, too)"; count(9): "the latest STOP (0: none since the module)". */
