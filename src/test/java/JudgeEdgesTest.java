@@ -75,6 +75,13 @@ final class JudgeEdgesTest {
         least(sorts + "op f : A D -> A . op f : D B -> B .", 0, 0, 1);
         least(sorts + "op f : D A D -> A . op f : A D D -> B .", 0, 0, 0, 0);
         least("sort A B X . subsort X < A B . sort E . op f : E A -> A . op f : E B -> B .", 0, 3, 2);
+        // HOLES of other KINDS, each in its place
+        String kinds = "sort A B X . subsort X < A B . sort E . ";
+        least(kinds + "op f : A E -> A . op f : B E -> B .", 0, 2, 3);
+        least(kinds + "op f : E E A -> A . op f : E E B -> B .", 0, 3, 3, 2);
+        least(kinds + "op f : A A E -> A . op f : B B E -> B .", 0, 2, 2, 3);
+        least(kinds + "op f : A E B -> A . op f : B E A -> B .", 0, 2, 3, 2);
+        least(kinds + "op f : A E A -> A . op f : B E B -> B . op f : X E X -> X .");
         // by sorts as they are told
         least("sort C2 A B C . subsort C C2 < A B . op f : A -> A . op f : B -> B .", 0, 0);
         least("sort A C2 B C . subsort C C2 < A B . op f : A A -> A . op f : B B -> B .", 0, 1, 1);
@@ -170,6 +177,10 @@ final class JudgeEdgesTest {
             falls(m, "s X + 0", "X + s 0", false);
             falls(m, "s X + 1", "X + 0", true);
             falls(m, "s X + s X", "X + X", true);
+            falls(m, "s X + X", "X + X", true);
+            falls(m, "s X + Y", "s X + X", false);
+            falls(m, "s s X + s X", "s X + X", true);
+            falls(m, "s X + Y", "s X + Y", false);
             falls(m, "s X + s X", "s X + X", true);
             falls(m, "h ( X ) + Y", "s ( X + Y )", true);
             falls(m, "s X + Y", "h ( X )", false);
@@ -252,6 +263,10 @@ final class JudgeEdgesTest {
         int apart = H.x().pairs(1);
         H.due("the last that does not meet", H.x().pair(apart - 1, 0) >= 0 ? 1 : 0, 1);
         H.due("none behind it", H.x().pair(apart, 0), -1);
+        H.dueTerm("its first", H.x().pair(apart - 1, 2), "a");
+        H.dueTerm("its second", H.x().pair(apart - 1, 3), "f f f f a");
+        H.dueTerm("that of the first", H.x().pair(0, 3), "f a");
+        H.due("4,000 still", H.x().pairs(0), 4000);
         H.with(most + "eq c = a . eq c = a .");
         for (int what = 0; what < 3; what++) {
             H.due("4,001", H.x().pairs(what), -22);
@@ -354,6 +369,9 @@ final class JudgeEdgesTest {
         pairsOf(m + "eq q ( X , k ( X , u X ) ) = a . eq q ( " + nineteen + ", k ( Y , Z ) ) = a .", 1, 0, 0);
         H.with(m + "eq q ( X , k ( X , X ) ) = a . eq q ( u " + nineteen + ", k ( Y , Z ) ) = a .");
         H.due("41", H.x().pairs(0), -26);
+        H.with(m + "eq q ( u " + nineteen + ", k ( Y , Z ) ) = a . eq q ( X , k ( X , X ) ) = a .");
+        H.due("41 of the second", H.x().pairs(0), -26);
+        pairsOf(m + "eq q ( " + nineteen + ", k ( Y , Z ) ) = a . eq q ( X , k ( X , u X ) ) = a .", 1, 0, 0);
         // in another order k is made ahead of what is too big
         pairsOf(m + "eq q ( k ( X , X ) , X ) = a . eq q ( k ( Y , Z ) , u " + nineteen + ") = a .", 1, 0, 0);
         // 30 places inside the first, of both; the whole of the second
@@ -396,6 +414,18 @@ final class JudgeEdgesTest {
         pairsOf(m + "eq k ( m ( X , Y ) , X ) = a .", 2, 0, 0);
         pairsOf(m + "eq k ( m ( X , Y ) , X ) = X .", 2, 0, 0);
         pairsOf(m + "eq k ( m ( X , Y ) , Z ) = X .", 2, 1, 0);
+        // of the second way nothing stands for what it stood for in the first
+        String n = "sort A . op a : -> A . op b : -> A . op c : -> A . op m : A A -> A [ comm ] . op k : A A A -> A . op l : A A -> A . var O P Q X Y Z : A . ";
+        H.with(n + "eq m ( X , l ( Y , Z ) ) = k ( X , Y , Z ) . eq m ( l ( P , Q ) , O ) = k ( O , P , Q ) .");
+        String[][] due = {{"0", "0", "k ( l ( Y' , Z' ) , Y , Z )", "k ( l ( Y , Z ) , Y' , Z' )"}, {"0", "1", "k ( l ( Y' , Z' ) , P , Q )", "k ( l ( P , Q ) , Y' , Z' )"}, {"1", "1", "k ( l ( P' , Q' ) , P , Q )", "k ( l ( P , Q ) , P' , Q' )"}};
+        H.due("ways", H.x().pairs(0), 6);
+        H.due("do not meet", H.x().pairs(1), 3);
+        for (int i = 0; i < 3; i++) {
+            H.due("i", H.x().pair(i, 0), Integer.parseInt(due[i][0]));
+            H.due("j", H.x().pair(i, 1), Integer.parseInt(due[i][1]));
+            H.due("the first of " + i, H.shown(H.x().pair(i, 2)), due[i][2]);
+            H.due("the second of " + i, H.shown(H.x().pair(i, 3)), due[i][3]);
+        }
     }
 
     /** "i's variables put apart from j's (30 more each; behind the others in ORDER; PRINTED with ' behind; in patterns they are variables like others)". */
