@@ -300,6 +300,16 @@ final class JudgeEdgesTest {
         H.due("41", H.x().pairs(0), -26);
         H.with(CHAIN + big.replace("l ( k ( " + "t a ".repeat(6) + "a ) )", "k ( " + "t a ".repeat(6) + "a )"));
         H.due("40", H.x().pairs(0), 1);
+        // too big ahead of being changed; j's right side too big; both of 40
+        String t = "t a ".repeat(15);
+        for (int more = 8; more <= 9; more++) {
+            H.with(CHAIN + "op t__ : A A -> A . op k : A -> A . op l_ : A -> A . eq k ( X ) = l " + t + "a . eq " + "l ".repeat(more) + "k ( a ) = a .");
+            H.due("32 and " + more, H.x().pairs(0), more == 8 ? 1 : -26);
+        }
+        H.with(CHAIN + "op t__ : A A -> A . op k : A -> A . op n : A A A -> A . eq k ( " + "t a ".repeat(6) + "a ) = a . eq k ( X ) = n ( X , X , X ) .");
+        H.due("40 of j's right side", H.x().pairs(0), 1);
+        H.with(CHAIN + "op t__ : A A -> A . op k : A -> A . op n : A A A -> A . eq k ( f " + "t a ".repeat(6) + "a ) = a . eq k ( X ) = n ( X , X , X ) .");
+        H.due("43 of j's right side", H.x().pairs(0), -26);
         H.with(CHAIN + chain(21, 5) + chain(10, 4) + big);
         H.due("the 4,000th", H.x().pairs(0), -26);
         H.with(CHAIN + chain(24, 7) + chain(1, 5) + big);
