@@ -132,7 +132,9 @@ final class TermEdgesTest {
         H.with(text + "eq z = " + row + " .");
         H.due("OPERATORS", H.x().count(2), operators);
         H.due("more than twenty", operators > 20 ? 1 : 0, 1);
-        H.due("of any KIND", H.term(row), -4);
+        for (int round = 0; round < 8; round++) {
+            H.due("of any KIND", H.term(row), -4);
+        }
         H.term("z");
         H.due("of the KIND of the left side", H.x().reduce(0), 1);
         H.due("a row of 32", H.x().about(1, 4), 32);

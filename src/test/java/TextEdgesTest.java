@@ -612,6 +612,15 @@ final class TextEdgesTest {
         other.due("a term", other.term("new"), 0);
         other.due("a variable", other.term("Other"), 1);
         other.due("a LABEL", other.strategy(0, "next"), 1);
+        // rows of one OPERATOR without ATTRIBUTES where other rows had some
+        other.anew();
+        for (int round = 0; round < 3; round++) {
+            other.due("module", other.module("sort A B . subsort A < B . op e : -> A . op d : -> A . op f : A A -> A [ prec 5 id e gather e & assoc ] . op g : A A -> A [ prec 7 id d gather & e comm ] ."), 4);
+            other.due("STRENGTH", other.x().operator(2, 1), 5);
+            other.due("module", other.module("sort A B . subsort A < B . op e : -> A . op d : -> A . op f : A A -> A . op f : B B -> B . op h : A B -> B . op h : B A -> B ."), 4);
+            other.due("STRENGTH", other.x().operator(2, 1), 0);
+            other.due("id", other.x().operator(2, 4), -2);
+        }
         // as many as there can be of each, more than once
         String most = numbered("sort ", 1, 20, "S# ") + numbered(". ", 1, 50, "op a# : -> S1 . ") + numbered("var ", 1, 30, "X# ") + ": S1 . ";
         other.anew();
