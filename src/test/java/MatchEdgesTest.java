@@ -101,6 +101,14 @@ final class MatchEdgesTest {
         H.due("the latest STOP", H.x().count(9), 4);
         H.due("50,000 twice for P, 100,000 twice for Q", H.x().law(3, H.term("o | o | o | K | k ( A B C D )"), most), 1);
         H.due("200,000 twice", H.x().law(1, H.term("K | o | o | o | o | K | k ( A B C D )"), 0), -1004);
+        // "of another KIND none is, and nothing is listed"
+        int other = H.term("( A B C D A B C D ) + A + B + C + D");
+        int same = H.term("k ( ( A B C D A B C D ) + A + B + C + D )");
+        H.due("354,294 of its KIND", H.x().search(same, 0), -24);
+        H.due("search()", H.x().search(other, 0), -2);
+        H.due("always", H.x().law(0, other, 0), -10);
+        H.due("never", H.x().law(1, other, 0), 1);
+        H.due("leads", H.x().law(3, half, other), 1);
         int twice = H.term("K | o | o | o | o | K | k ( A B C D )");
         H.due("search() asks 200,000 for each that is not so", H.x().search(twice, 0), -24);
         H.due("from the last on", H.x().search(twice, 1), -2);

@@ -452,6 +452,10 @@ final class TextEdgesTest {
         H.at(1, BASE + "eq b @=> " + times("s ", 32) + "b .");
         H.at(2, BASE + "eq @" + times("s ", 40) + "\001 = b .");
         H.at(2, BASE + "eq @" + times("s ", 40));
+        H.at(1, BASE + "eq " + times("s ", 32) + "@\001 = b .");
+        H.at(2, BASE + "eq @" + times("s ", 33) + "\001 = b .");
+        H.at(1, BASE + "eq " + times("s ", 32) + "@");
+        H.at(2, BASE + "eq @" + times("s ", 33));
         H.at(1, BASE + "eq " + times("s ", 31) + "b@");
         // 2 is ahead of 3 and 4, wherever these are
         H.at(2, "sort A A . var X : C . sort B " + numbered("", 1, 17, "S# ") + "@S18 .");
