@@ -281,6 +281,15 @@ final class JudgeEdgesTest {
     private static void openPairs() {
         String less = CHAIN + chain(21, 5) + chain(10, 4);
         pairsOf(OPEN, 0, 0, 1);
+        // of each module anew
+        H.anew();
+        for (int round = 0; round < 3; round++) {
+            H.module(OPEN + "op c : -> B . op d : -> B . eq c = b . eq c = d .");
+            H.due("OPEN", H.x().pairs(2), 1);
+            H.dueTerm("the one that does not meet", H.x().pair(0, 2), "d");
+            H.due("OPEN still", H.x().pairs(2), 1);
+            H.due("PAIRS", H.x().pairs(0), 1);
+        }
         H.with(less + OPEN);
         H.due("3,999 and one OPEN", H.x().pairs(0), 3999);
         H.due("OPEN", H.x().pairs(2), 1);

@@ -12,6 +12,7 @@ final class MatchEdgesTest {
         longest();
         wide();
         deals();
+        dealsAnew();
         whichFirst();
         refused();
         bounds();
@@ -112,6 +113,20 @@ final class MatchEdgesTest {
         int twice = H.term("K | o | o | o | o | K | k ( A B C D )");
         H.due("search() asks 200,000 for each that is not so", H.x().search(twice, 0), -24);
         H.due("from the last on", H.x().search(twice, 1), -2);
+    }
+
+    /** What is counted is that of this T, whatever T an earlier module had in its place. */
+    private static void dealsAnew() {
+        House h = new House("deals anew");
+        for (int round = 0; round < 3; round++) {
+            h.module(BAG);
+            int p = h.term("T T T T T T T T");
+            h.due("six", h.x().match(p, h.term("a a a a a a"), false), -24);
+            h.module(BAG);
+            h.due("the same pattern", h.term("T T T T T T T T"), p);
+            h.term("w ( w ( w ( w ( a ) ) ) )");
+            h.due("two", h.x().match(p, h.term("a a"), false), 0);
+        }
     }
 
     private static void whichFirst() {
