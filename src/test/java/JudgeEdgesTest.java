@@ -14,6 +14,7 @@ final class JudgeEdgesTest {
         openPairs();
         countedFirst();
         eachAnew();
+        deepPairs();
         bothTogether();
         mostDeals();
         sizesOfWays();
@@ -193,6 +194,9 @@ final class JudgeEdgesTest {
                 falls(m, "X + X + 0", "0 + 0 + X", false);
             }
         }
+        // what was in both rows of one equation is in those of the next
+        H.with("sort N . op s_ : N -> N [ prec 1 ] . op _+_ : N N -> N [ comm prec 2 ] . var X Y Z : N . eq Z + s X = Z + X . eq s X + s Y = X + Y . eq s X + s s X = X + s X . eq s Y + s X = Y + X .");
+        H.due("all fall", H.x().check(1), 1);
         // the + is told behind s, h behind +: what is put into h falls, what is put into s does not
         falls("sort N . op s_ : N -> N . op _+_ : N N -> N [ comm ] . op h : N -> N . var X Y : N .", "h ( X ) + Y", "h ( X + Y )", false);
         falls("sort N . op s_ : N -> N . op h : N -> N . op _+_ : N N -> N [ comm ] . var X Y : N .", "h ( X ) + Y", "h ( X + Y )", true);
@@ -346,6 +350,20 @@ final class JudgeEdgesTest {
         H.due("601 STEPS", H.x().pairs(0), -21);
     }
 
+    /** Both TERMS of a PAIR are 0 deep: of g each number less is one deeper. */
+    private static void deepPairs() {
+        for (int many = 59; many <= 62; many++) {
+            String g = "g ( " + "s ".repeat(many / 10) + "0 , " + "s ".repeat(many % 10) + "0 )";
+            String text = "sort N T . op 0 : -> N . op s_ : N -> N . op g : N N -> T . op k : T -> T . op ok : -> T . op c : -> T . var N M : N . eq g ( N , s M ) = k ( g ( N , M ) ) . eq g ( s N , 0 ) = k ( g ( N , s s s s s s s s s 0 ) ) ."
+                    + " eq g ( 0 , 0 ) = ok . eq k ( ok ) = ok . ";
+            H.with(text + "eq c = " + g + " . eq c = ok .");
+            H.due("the second, " + many, H.x().pairs(0), many <= 60 ? 1 : -25);
+            H.with(text + "eq c = ok . eq c = " + g + " .");
+            H.due("the first, " + many, H.x().pairs(1), many <= 60 ? 0 : -25);
+            H.due("as in a call", H.x().reduce(H.term(g)), many <= 60 ? 1 : -25);
+        }
+    }
+
     /** Both TERMS of a PAIR are REDUCED in one count. */
     private static void bothTogether() {
         H.with(COUNTERS + "eq c = " + counter("t", 300) + " . eq c = " + counter("w", 300) + " . eq c = " + counter("t", 300) + " .");
@@ -417,6 +435,10 @@ final class JudgeEdgesTest {
         pairsOf(m.replace("C < A B < D", "A B < D").replace("op g : C -> C . ", "") + "eq f ( A ) = a . eq f ( B ) = d .", 0, 0, 0);
         pairsOf(m + "eq f ( A ) = A . eq f ( D ) = h ( D ) .", 1, 1, 0);
         H.due("the lower one, the first", H.shown(H.x().pair(0, 3)), "A'");
+        // the first sort is below both; the first row of op has the SORT
+        pairsOf("sort C A B . subsort C < A B . op f : A -> A . op f : B -> A . op d : -> A . var A : A . var B : B . eq f ( A ) = d . eq f ( B ) = d .", 0, 0, 1);
+        pairsOf("op h : C -> C . op h : A -> A . sort C A . subsort C < A . op f : A -> A . op d : -> A . var C : C . var A : A . eq f ( C ) = d . eq f ( h ( A ) ) = d .", 0, 0, 1);
+        pairsOf("op h : A -> A . sort C A . subsort C < A . op f : A -> A . op d : -> A . var C : C . var A : A . eq f ( C ) = d . eq f ( h ( A ) ) = d .", 0, 0, 0);
         // a variable in the TERM, ahead of sorts
         pairsOf(m + "eq k ( D , D ) = a . eq k ( F , h ( F ) ) = d .", 0, 0, 0);
         pairsOf(m + "eq k ( A , A ) = a . eq k ( F , h ( F ) ) = d .", 0, 0, 0);

@@ -275,9 +275,12 @@ final class TermEdgesTest {
             H.due("in brackets", H.term("l ( t a t ) l"), 0);
             H.due("printed", H.shown(0), n < 5 ? "l t a t l" : "l ( t a t ) l");
         }
-        H.with("sort A . op a : -> A . op z_z : A -> A [ prec 99 gather & ] . op o_o : A -> A [ prec 0 gather e ] . op O_O : A -> A [ prec 0 gather E ] .");
+        H.with("sort A . op a : -> A . op z_z : A -> A [ prec 99 gather & ] . op o_o : A -> A [ prec 0 gather e ] . op O_O : A -> A [ prec 0 gather E ] . var X : A .");
         H.due("& takes 99", H.term("z z a z z"), 0);
         H.due("0 is 0 at most", H.term("o a o"), 1);
+        H.due("( ) has 0", H.shown(H.term("o ( z a z ) o")), "o ( z a z ) o");
+        H.due("a variable has 0", H.shown(H.term("o X o")), "o X o");
+        H.due("so has one in ( )", H.shown(H.term("o ( X ) o")), "o X o");
         H.due("nothing is less than 0", H.term("O a O"), -16);
         H.due("nor in brackets", H.term("O ( a ) O"), -16);
         String[] forms = {"_p", "p_", "_p_", "p_p", "_p_p", "p_p_", "p", "f"};

@@ -350,6 +350,25 @@ final class TextEdgesTest {
             H.good("sort A . op " + sign + " : -> A .", 1);
             H.good("sort A . op " + sign + " _ : A -> A .", 1);
         }
+        // a text may begin with any statement; what it needs may be told behind it
+        H.good("op a : -> A . sort A .", 1);
+        H.good("var X : A . sort A .", 0);
+        H.due("variables", H.x().count(4), 1);
+        H.good("subsort A < B . sort A B .", 0);
+        H.due("below", H.x().below(0, 1), 1);
+        H.good("eq a = a . sort A . op a : -> A .", 1);
+        H.due("equations", H.x().count(5), 1);
+        H.good("rl r : a => a . sort A . op a : -> A .", 1);
+        H.due("rules", H.x().count(6), 1);
+        H.at(3, "@op _ : A -> A . sort A .");
+        H.at(4, "op f : @B -> A . sort A .");
+        H.at(4, "var X : @B . sort A .");
+        H.at(4, "subsort A @< A . sort A .");
+        H.at(4, "subsort @C < A . sort A .");
+        H.at(4, "eq a = a if a : @B . sort A . op a : -> A .");
+        H.at(5, "@op f : A -> A [ comm ] . sort A .");
+        H.at(6, "eq @zz = a . sort A . op a : -> A .");
+        H.at(8, "rl r : a => @X . sort A . op a : -> A . var X : A .");
         // 3 and 4: "the least place counts, of one place the least number"
         H.at(3, "sort A . @op _ : B -> A .");
         H.at(4, "sort A . op f : @B -> A . op _ : A -> A .");
