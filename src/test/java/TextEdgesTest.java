@@ -114,6 +114,12 @@ final class TextEdgesTest {
         H.at(1, "sort .@\001 .");
         H.at(1, "sort A@\001\002 .");
         H.at(1, "sort @\377 .");
+        H.at(1, "a@\001 b\002 c");
+        H.at(1, "a@\001 aaaaaaaaaaaaaaaaa");
+        H.at(1, "@aaaaaaaaaaaaaaaaa a\001");
+        H.with("sort A . op a : -> A .");
+        H.due("two of a term", H.term("a\001 a\002"), -11);
+        H.due("the first", H.x().fault(0), 1);
     }
 
     /** "at most 16"; "a WORD too long (at its first byte, ahead of bytes in it)". */
