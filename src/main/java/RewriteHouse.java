@@ -1255,7 +1255,9 @@ public final class RewriteHouse {
     /** What texts say: makes a module of a text, a term of a row of words, and a text of a term. */
     static final class Language {
         static final int ANY_KIND = -1, NO_READING = 6, DOUBTFUL = 7;
-        private static final int SIDE = Syntax.LONGEST_ROW + 1, FIRST_ENTRIES = 2048, MOST_ENTRIES = 65536, MOST_PRINTED = 12000;
+        private static final int SIDE = Syntax.LONGEST_ROW + 1, FIRST_ENTRIES = 2048, MOST_ENTRIES = 65536;
+        /** A row of 39 that are PRINTED as 12 WORDS each, with 10 between, all in brackets, has 14,719 bytes: none has more. */
+        private static final int FIRST_PRINTED = 1024, MOST_PRINTED = 1048576;
         /** Readings are told by operator, or, if they are a variable or in brackets, by KIND from here on. */
         private static final int ATOM = Theory.MOST_ROWS;
         /** An entry has how many readings there are (one, or two for more), their KIND, STRENGTH, and what they are. */
@@ -1276,7 +1278,7 @@ public final class RewriteHouse {
         private int[] entries = new int[FIRST_ENTRIES];
         private int entryTop;
         private final int[] ofKind = new int[Theory.MOST_SORTS];
-        final byte[] printed = new byte[MOST_PRINTED];
+        byte[] printed = new byte[FIRST_PRINTED];
         int printedSize;
         private int printedTerm = -1;
         private final int[] form = new int[Theory.MOST_FORM + 1];
@@ -1961,7 +1963,10 @@ public final class RewriteHouse {
         }
 
         private void putByte(int b) {
-            if (printedSize < MOST_PRINTED) {
+            if (printedSize >= printed.length && printed.length < MOST_PRINTED) {
+                printed = Arrays.copyOf(printed, printed.length * 2);
+            }
+            if (printedSize < printed.length) {
                 printed[printedSize] = (byte) b;
                 printedSize++;
             }
@@ -4192,8 +4197,8 @@ public final class RewriteHouse {
                 case Words.IDLE: return syntax.take() ? newNode(IDLE, 0, 0) : FAULTY;
                 case Words.FAIL: return syntax.take() ? newNode(FAIL, 0, 0) : FAULTY;
                 case Words.ALL: return syntax.take() ? newNode(STEPS, 0, 0) : FAULTY;
-                case Words.NOT: return syntax.take() && syntax.takeWord(Words.OPEN) ? openBracket(NOT) : FAULTY;
-                case Words.ONE: return syntax.take() && syntax.takeWord(Words.OPEN) ? openBracket(ONE) : FAULTY;
+                case Words.NOT: return readAhead(word, NOT);
+                case Words.ONE: return readAhead(word, ONE);
                 case Words.OPEN: return syntax.take() ? openBracket(PLAIN) : FAULTY;
                 default: break;
             }
@@ -4201,6 +4206,17 @@ public final class RewriteHouse {
                 return faulty();
             }
             return syntax.take() ? newNode(STEPS, word + 1, 0) : FAULTY;
+        }
+
+        /** The WORD not or one opens the bracket behind it; without one it is a LABEL, if a rule has it. */
+        private int readAhead(int word, int what) {
+            if (!syntax.take()) {
+                return FAULTY;
+            }
+            if (syntax.word != Words.OPEN && isLabel(word)) {
+                return newNode(STEPS, word + 1, 0);
+            }
+            return syntax.takeWord(Words.OPEN) ? openBracket(what) : FAULTY;
         }
 
         /** What a node is with the WORD behind it; or AWAITED: another one has to come. */

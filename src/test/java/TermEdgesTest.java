@@ -18,6 +18,7 @@ final class TermEdgesTest {
         parts();
         orders();
         printed();
+        printedMost();
         forgotten();
         sorts();
         operators();
@@ -461,7 +462,7 @@ final class TermEdgesTest {
         H.due("many bytes", H.x().print(got, -1), 2 * 11 * 16 + 1);
         H.due("the last one", H.x().print(got, 2 * 11 * 16), 'a');
         H.due("behind it", H.x().print(got, 2 * 11 * 16 + 1), -1);
-        // 38 deep: as many bytes as a TERM of 40 can have with it
+        // 36 deep
         H.with("sort A N . op a : -> A . op 0 : -> N . op s_ : N -> N . op t : N N A -> A . op " + form + "_ : A -> A . var X : A . var N M : N . eq t ( N , s M , X ) = t ( N , M , " + form + "X ) ."
                 + " eq t ( s N , 0 , X ) = t ( N , s s s s s s s s s s 0 , X ) . eq t ( 0 , 0 , X ) = X .");
         H.due("deep", H.x().reduce(H.term("t ( s s s 0 , s s s s s s 0 , a )")), 1);
@@ -479,6 +480,44 @@ final class TermEdgesTest {
             H.due(two[0], H.shown(H.term(two[0])), two[1]);
             H.spare(60);
         }
+    }
+
+    /** As many bytes as a TERM of SIZE 40 can be PRINTED as: a row of 39, all FORMS of 12 and WORDS of 16, all in ( ). */
+    private static void printedMost() {
+        String leaf = longWords('c', 12);
+        String between = longWords('j', 10);
+        String module = "sort S . op " + leaf + " : -> S [ prec 50 ] . op _ " + between + " _ : S S -> S [ assoc gather E E ] ."
+                + " op k : -> S . op t : S -> S . op d : S -> S . op p : S -> S . var X : S . eq k = " + leaf + " . eq d ( X ) = X " + between + " X ."
+                + " eq t ( X ) = X " + between + " ( X " + between + " X ) . eq p ( X ) = X " + between + " k .";
+        String due = "( " + leaf + " )";
+        for (int k = 1; k < 39; k++) {
+            due = (k == 1 ? due : "( " + due + " )") + " " + between + " ( " + leaf + " )";
+        }
+        for (int from = 0; from < due.length(); from += 400) {
+            H.with(module);
+            H.due("reduce", H.x().reduce(H.term("t ( p ( t ( d ( d ( k ) ) ) ) )")), 1);
+            H.due("SIZE", H.x().about(1, 0), 40);
+            H.due("bytes", H.x().print(1, -1), 14719);
+            int to = Math.min(from + 400, due.length());
+            StringBuilder got = new StringBuilder();
+            for (int i = from; i < to; i++) {
+                got.append((char) H.x().print(1, i));
+            }
+            H.due("bytes from " + from, got.toString(), due.substring(from, to));
+        }
+        H.due("the last one", H.x().print(1, 14718), ')');
+        H.refused("behind it", () -> H.x().print(1, 14719), -1);
+        H.due("a short one then", H.shown(H.term("k")), "k");
+        H.due("the long one again", H.x().print(1, -1), 14719);
+    }
+
+    /** WORDS of 16 bytes, all other ones, with a blank between. */
+    private static String longWords(char letter, int many) {
+        StringBuilder all = new StringBuilder();
+        for (int k = 0; k < many; k++) {
+            all.append(k == 0 ? "" : " ").append(letter).append((char) ('A' + k)).append("x".repeat(14));
+        }
+        return all.toString();
     }
 
     /** forget: "All handles go: how many there were." */
