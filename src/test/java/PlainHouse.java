@@ -1863,26 +1863,36 @@ final class PlainHouse {
             take();
             return new Plan(w, null, null);
         }
-        if (Set.of("(", "not", "one").contains(w)) {
+        if (w.equals("(")) {
             take();
-            if (!w.equals("(")) {
-                need("(");
-            }
-            Plan inside = planOr();
-            need(")");
-            return w.equals("(") ? inside : new Plan(w, inside, null);
+            return planInside();
         }
+        if (!isLabel(w) && !Set.of("not", "one").contains(w)) {
+            throw wrong();
+        }
+        take();
+        boolean bracket = Set.of("not", "one").contains(w) && "(".equals(word());
+        if (bracket || !isLabel(w)) {
+            need("(");
+            return new Plan(w, planInside(), null);
+        }
+        Plan plan = new Plan("label", null, null);
+        plan.label = w;
+        return plan;
+    }
+
+    private Plan planInside() {
+        Plan inside = planOr();
+        need(")");
+        return inside;
+    }
+
+    private boolean isLabel(String w) {
         boolean known = false;
         for (Law rule : rules) {
             known |= rule.label.equals(w);
         }
-        if (!known) {
-            throw wrong();
-        }
-        take();
-        Plan plan = new Plan("label", null, null);
-        plan.label = w;
-        return plan;
+        return known;
     }
 
     private static void join(List<Term> list, Term t) {

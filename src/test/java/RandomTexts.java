@@ -10,6 +10,8 @@ final class RandomTexts {
     private static final String[] SPOILERS = {".", ":", "->", "=", "=>", ":=", "if", "/\\", "(", ")", "[", "]", "{", "}", ",", "sort", "subsort", "var",
         "op", "eq", "oeq", "rl", "<", "assoc", "comm", "id", "prec", "gather", "&", "e", "E", "7", "41", "100", "_", "_ _", "__", "_a_", "a", "b", "c",
         "X0", "X1", "A", "B", "C", "f", "s_", "+", "x", "***", "***x\n", "abcdefghijklmnop", "abcdefghijklmnopq", "\1", "x\177y", "\351", "\n", "\t"};
+    /** WORDS that mean something in a STRATEGY, and can be LABELS besides. */
+    private static final String[] LABELS = {"not", "one", "not", "one", "idle", "fail", "all", "*", "!", ";", "|"};
     private static final String[] CONSTANTS = {"a", "b", "c", "0", "n"};
     private static final String[] FORMS = {"s_", "f", "_ + _", "_ _", "_ ; _", "g", "h", "k", "_ !", "[ _ ]", "_ * _", "l", "i_t_e_"};
 
@@ -211,7 +213,7 @@ final class RandomTexts {
 
     private void tellRules(int many) {
         for (int k = 0; k < many; k++) {
-            tellLaw("rl " + "xyz".charAt(any(3)) + " :", "=>", 30);
+            tellLaw("rl " + label() + " :", "=>", 30);
         }
     }
 
@@ -344,13 +346,17 @@ final class RandomTexts {
         return mixed.toString();
     }
 
+    private String label() {
+        return often(80) ? "" + "xyz".charAt(any(3)) : LABELS[any(LABELS.length)];
+    }
+
     String strategy(int depth) {
         String a = depth > 0 ? strategy(depth - 1) : "";
         switch (any(depth > 0 ? 10 : 4)) {
             case 0: return "idle";
             case 1: return often(30) ? "fail" : "all";
             case 2:
-            case 3: return "" + "xyz".charAt(any(3));
+            case 3: return label();
             case 4: return a + " | " + strategy(depth - 1);
             case 5: return a + " ; " + strategy(depth - 1);
             case 6: return "( " + a + " ) *";

@@ -19,6 +19,7 @@ final class WayEdgesTest {
         lawsOfOne();
         strategiesRefused();
         strategyWords();
+        strategyLabels();
         answersListed();
         latestResults();
         stepsCounted();
@@ -353,6 +354,42 @@ final class WayEdgesTest {
         H.due("at it", H.x().fault(0), 4 + 4 * 29);
         H.due("200", H.strategy(t, "r " + "| r ".repeat(100)), -12);
         H.due("at the 61st", H.x().fault(0), 2 + 4 * 29 + 2);
+    }
+
+    /** "C is idle, fail, all, a LABEL, ( S ), not ( S ), one ( S )": not and one without ( behind them are LABELS like others. */
+    private static void strategyLabels() {
+        String sorts = "sort S . op a : -> S . op b : -> S . op c : -> S . op d : -> S . ";
+        String both = sorts + "rl not : a => b . rl one : b => c . rl one : a => c . rl not : a => d . rl x : d => a . ";
+        String[][] texts = {{"not", "b; d"}, {"one", "c"}, {"not ; one", "c"}, {"one ; not", ""}, {"not | one", "b; d; c"}, {"one | not", "c; b; d"}, {"( not )", "b; d"}, {"( one ) ; idle", "c"},
+            {"not *", "a; b; d"}, {"one *", "a; c"}, {"not !", "b; d"}, {"not ; one !", "c; d"}, {"not ( not )", ""}, {"not ( one ; one )", "a"}, {"one ( not )", "b"}, {"one ( one )", "c"}, {"not ( not ( one ) )", "a"},
+            {"one ( not ( not ) | not )", "b"}, {"( not ; x ) * ; not", "b; d"}, {"x | not", "b; d"}, {"not\n*** (\n", "b; d"}};
+        for (String[] two : texts) {
+            H.with(both);
+            String text = two[0].replace("\\n", "\n");
+            H.due(text, H.strategy(H.term("a"), text), two[1].isEmpty() ? 0 : two[1].split(";").length);
+            H.due(text + " place", H.x().fault(0), -2);
+            H.due(text, H.results(), two[1]);
+        }
+        H.with(both);
+        int t = H.term("a");
+        for (String text : new String[] {"not @not", "not @idle", "one @not ( x )", "not ( @)", "( not @", "one * @one", "not ; @", "not @. x", "not @x", "not ( not @one )", "one @[ x ]"}) {
+            H.due(text, H.strategy(t, text.replace("@", "")), -11);
+            H.due(text + " place", H.x().fault(0), text.indexOf('@'));
+        }
+        H.due("60 WORDS", H.strategy(t, "one ; " + "not | ".repeat(28) + "not *"), 3);
+        H.due("the 60th and one more", H.strategy(t, "one * ; " + "not | ".repeat(28) + "not *"), -12);
+        H.due("at the 61st", H.x().fault(0), 8 + 6 * 28 + 4);
+        H.due("a LABEL as the 61st", H.strategy(t, "x | ".repeat(30) + "not"), -12);
+        H.due("at it", H.x().fault(0), 120);
+        // what no rule has is no LABEL: ( has to stand behind it
+        H.with(sorts + "rl not : a => b .");
+        t = H.term("a");
+        H.due("not", H.strategy(t, "not"), 1);
+        for (String text : new String[] {"one @", "one @; not", "not | one @*", "one @not", "( one @)", "one @one ( not )"}) {
+            H.due(text, H.strategy(t, text.replace("@", "")), -11);
+            H.due(text + " place", H.x().fault(0), text.indexOf('@'));
+        }
+        H.due("not ( one ( not ) )", H.strategy(t, "not ( one ( not ) )"), 0);
     }
 
     /** "60 at most in each list (else STOP 2)", whatever is made of it. */
