@@ -288,16 +288,11 @@ public final class RewriteHouse {
             return BAD;
         }
         begin();
-        for (int k = i; k < results.size; k++) {
-            int found = ways.matchers(handles[p], results.term[k]);
-            if (found < 0) {
-                return stopped();
-            }
-            if (found > 0) {
-                return k;
-            }
+        int found = ways.markStates(results, handles[p], i, false, results.isFirst);
+        if (found < 0) {
+            return stopped();
         }
-        return NONE;
+        return found < results.size ? found : NONE;
     }
 
     public int law(int kind, int p, int q) {
@@ -305,11 +300,11 @@ public final class RewriteHouse {
             return BAD;
         }
         begin();
-        boolean done = ways.markStates(results, handles[p], results.isFirst);
-        if (done && kind == 3) {
-            done = ways.markStates(results, handles[q], results.isSecond);
+        int done = ways.markStates(results, handles[p], 0, true, results.isFirst);
+        if (done >= 0 && kind == 3) {
+            done = ways.markStates(results, handles[q], 0, true, results.isSecond);
         }
-        if (!done) {
+        if (done < 0) {
             latestStop = counts.stop;
             return -1000 - latestStop;
         }
@@ -2107,6 +2102,12 @@ public final class RewriteHouse {
             return info[term] >> COMM_SHIFT & SIZE;
         }
 
+        /** How many choices a pattern leaves: variables, and what has none, the fewest; rows of assoc operators the most. */
+        int rankOf(int term) {
+            boolean settled = head[term] < OPERATOR || vars[term] == 0L;
+            return settled ? 0 : (info[term] >> ASSOC_SHIFT & SIZE) == 0 ? 1 : 2;
+        }
+
         int kindOf(int term) {
             if (isVariable(term)) {
                 return theory.kindOf[theory.variableSort[head[term] % Theory.MOST_VARIABLES]];
@@ -2675,6 +2676,9 @@ public final class RewriteHouse {
                 } else {
                     next = advance(goal, alternative);
                 }
+                if (more >= 0 && work >= LONG_WORK) {
+                    outlook.open(pattern, term);
+                }
                 if (alternative > 0) {
                     keepUntried();
                 } else if (more >= 0 && work >= LONG_WORK && isHopeless(goal)) {
@@ -2820,17 +2824,12 @@ public final class RewriteHouse {
             return rowGoals(p, t, next);
         }
 
-        /** What leaves fewer choices comes first: variables, and what has none; rows of assoc operators come last. */
-        private int rankOf(int pattern) {
-            return terms.isVariable(pattern) || terms.vars[pattern] == 0L ? 0 : terms.assocRows(pattern) == 0 ? 1 : 2;
-        }
-
-        /** The terms in a pattern's row are to become those in a row of a term. */
+        /** The terms in a pattern's row are to become those in a row of a term; what leaves fewer choices comes first. */
         private int rowGoals(int p, int t, int next) {
             int list = next;
             for (int rank = 2; rank >= 0; rank--) {
                 for (int k = terms.rowSize(p) - 1; k >= 0 && list != FAILS; k--) {
-                    if (rankOf(terms.rowAt(p, k)) == rank) {
+                    if (terms.rankOf(terms.rowAt(p, k)) == rank) {
                         list = newGoal(terms.rowAt(p, k), terms.rowAt(t, k), WHOLE, 0, list);
                     }
                 }
@@ -2853,7 +2852,7 @@ public final class RewriteHouse {
         }
 
         private int twoGoals(int p, int first, int second, int next) {
-            int ahead = rankOf(terms.rowAt(p, 0)) <= rankOf(terms.rowAt(p, 1)) ? 0 : 1;
+            int ahead = terms.rankOf(terms.rowAt(p, 0)) <= terms.rankOf(terms.rowAt(p, 1)) ? 0 : 1;
             int list = newGoal(terms.rowAt(p, 1 - ahead), ahead == 0 ? second : first, WHOLE, 0, next);
             return list == FAILS ? FAILS : newGoal(terms.rowAt(p, ahead), ahead == 0 ? first : second, WHOLE, 0, list);
         }
@@ -3078,7 +3077,6 @@ public final class RewriteHouse {
             if (outlook.isDeadEnd()) {
                 return true;
             }
-            outlook.open(root, goals[TERM]);
             outlook.tell(bind);
             for (int g = goal, n = 0; g != NIL && n < MOST_GOALS; g = goals[g + NEXT], n++) {
                 if (!couldBeMet(g)) {
@@ -3327,10 +3325,13 @@ public final class RewriteHouse {
                 return;
             }
             boolean any = theory.isComm(terms.operatorOf(term));
+            int unit = theory.unit(terms.operatorOf(term));
             for (int part = 0; part < PARTS; part++) {
                 // of a row in order only what stands side by side is a part
                 boolean there = part < 1 << many && (any || (part & part + (part & -part)) == 0);
-                int made = there ? partOf(term, part) : -1;
+                int n = loadPart(term, part);
+                int top = n > 0 ? terms.head[term] : unit + Terms.OPERATOR;
+                int made = !there || (n == 0 && unit < 0) ? -1 : n == 1 ? terms.row[0] : terms.intern(top, n);
                 parts[rowCount * PARTS + part] = made;
                 partAt[rowCount * PARTS + part] = made < 0 ? -1 : Terms.indexOf(targets, targetCount, made);
             }
@@ -3347,7 +3348,8 @@ public final class RewriteHouse {
             return false;
         }
 
-        private int partOf(int term, int part) {
+        /** Some of a row, as bits, stand in the row of the term that is being made then: how many. */
+        private int loadPart(int term, int part) {
             int n = 0;
             for (int k = 0; k < terms.rowSize(term); k++) {
                 if ((part >> k & 1) != 0) {
@@ -3355,11 +3357,7 @@ public final class RewriteHouse {
                     n++;
                 }
             }
-            if (n > 0) {
-                return n == 1 ? terms.row[0] : terms.intern(terms.head[term], n);
-            }
-            int unit = theory.unit(terms.operatorOf(term));
-            return unit < 0 ? -1 : terms.intern(unit + Terms.OPERATOR, 0);
+            return n;
         }
 
         /** A variable that stands for nothing could be all that its sort takes. */
@@ -3414,11 +3412,12 @@ public final class RewriteHouse {
             int term = list[k];
             int at = k * WIDTH;
             boolean assoc = theory.isAssoc(terms.operatorOf(term));
-            may[at] = assoc ? 0L : sameRows(k);
+            boolean comm = theory.isComm(terms.operatorOf(term));
+            may[at] = assoc ? 0L : sameRows(k, comm);
             for (int r = 0; r < rowCount; r++) {
                 int row = targets[rows[r]];
                 boolean joined = assoc && terms.head[row] == terms.head[term];
-                long bits = joined ? partsJoined(k, r, innerAt[k], innerAt[k + 1]) : 0L;
+                long bits = joined ? partsJoined(r, comm, innerAt[k], innerAt[k + 1]) : 0L;
                 may[at + 1 + r] = bits;
                 may[at] |= (bits >>> (1 << terms.rowSize(row)) - 1 & 1L) << rows[r];
             }
@@ -3434,10 +3433,9 @@ public final class RewriteHouse {
         }
 
         /** The targets of the same operator, which is not assoc, whose rows the terms in a row could be. */
-        private long sameRows(int k) {
+        private long sameRows(int k, boolean comm) {
             int head = terms.head[list[k]];
             int many = Math.min(innerAt[k + 1] - innerAt[k], HOLES);
-            boolean comm = theory.isComm(terms.operatorOf(list[k]));
             long bits = 0L;
             for (int i = 0; i < targetCount; i++) {
                 boolean straight = terms.head[targets[i]] == head;
@@ -3452,9 +3450,9 @@ public final class RewriteHouse {
             return bits;
         }
 
-        /** The parts of a row that some of the terms in a row of the pattern, all side by side, could be together. */
-        private long partsJoined(int k, int r, int from, int to) {
-            int order = theory.isComm(terms.operatorOf(list[k])) ? 0 : PARTS;
+        /** The parts of a row (any, if it is comm) that terms side by side in a row of the pattern could be together. */
+        private long partsJoined(int r, boolean any, int from, int to) {
+            int order = any ? 0 : PARTS;
             long all = 1L;
             for (int j = from; j < to && all != 0L; j++) {
                 long bits = may[inner[j] * WIDTH + 1 + r];
@@ -3527,7 +3525,7 @@ public final class RewriteHouse {
             boolean any = theory.isComm(terms.operatorOf(pattern));
             int left = any ? rest : (1 << terms.rowSize(term)) - (1 << rest);
             int from = any ? innerAt[k] : innerAt[k + 1] - items;
-            long bits = partsJoined(k, r, from, from + items);
+            long bits = partsJoined(r, any, from, from + items);
             if (!some) {
                 return (bits >>> left & 1L) != 0L;
             }
@@ -4136,24 +4134,22 @@ public final class RewriteHouse {
 
         // states
 
-        /** How many matchers a pattern has with a state; none with one of another KIND; -1: stopped. */
-        int matchers(int pattern, int state) {
-            if (terms.kindOf(pattern) != terms.kindOf(state)) {
-                return 0;
-            }
-            matcher.top = 0;
-            return matcher.list(pattern, state, false, 0L, runner.values, 0);
-        }
-
-        boolean markStates(Results states, int pattern, boolean[] marks) {
-            for (int k = 0; k < states.size; k++) {
-                int found = matchers(pattern, states.term[k]);
+        /** Marks which states from one on are a pattern, all or up to the first that is: where it ended; -1: stopped. */
+        int markStates(Results states, int pattern, int from, boolean all, boolean[] marks) {
+            int kind = terms.kindOf(pattern);
+            for (int k = from; k < states.size; k++) {
+                int state = states.term[k];
+                matcher.top = 0;
+                int found = terms.kindOf(state) == kind ? matcher.list(pattern, state, false, 0L, runner.values, 0) : 0;
                 if (found < 0) {
-                    return false;
+                    return -1;
                 }
                 marks[k] = found > 0;
+                if (found > 0 && !all) {
+                    return k;
+                }
             }
-            return true;
+            return states.size;
         }
 
         // strategies as texts
